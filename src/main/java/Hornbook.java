@@ -1,0 +1,1078 @@
+import java.util.ArrayList;
+
+/** A checker of types for a small language. */
+public final class Hornbook {
+
+    private static final int MOST_SORTS = 12;
+    private static final int MOST_TYPES = 60;
+    private static final int MOST_METHODS = 30;
+    private static final int MOST_EXPRESSIONS = 40;
+    private static final int MOST_PARENTS = 2;
+    private static final int MOST_PARAMETERS = 2;
+    private static final int NAMES = 10;
+    private static final int DEEPEST_TOLD = 4;
+
+    /** How a PARAMETER is; a place in a TYPE stands OUTWARD as OUT, INWARD as IN. */
+    private static final int FIXED = 0;
+    private static final int OUT = 1;
+    private static final int IN = 2;
+
+    private static final int ANY = -1;
+    private static final int NOTHING = -2;
+    private static final int OWN_TYPE = -3;
+    private static final int FIRST_PARAMETER = -4;
+    private static final int SECOND_PARAMETER = -5;
+
+    /** What stands in a TYPE that is not CLOSED, one bit each. */
+    private static final int HAS_FIRST = 1;
+    private static final int HAS_SECOND = 2;
+    private static final int HAS_OWN = 4;
+
+    private static final int NONE = -1;
+    private static final int NO_PLACE = -9;
+
+    private static final int VALUE = 0;
+    private static final int EITHER = 1;
+    private static final int AS = 2;
+    private static final int CALL = 3;
+
+    private static final int NONE_SEEN = 1;
+    private static final int NONE_TAKES = 2;
+    private static final int NONE_BEST = 3;
+    private static final int NOT_UNDER = 4;
+
+    private static final int BAD_PARENT = 1;
+    private static final int MIXED_ROAD = 2;
+    private static final int BAD_METHOD = 3;
+
+    private static final int BUCKETS = 256;
+    private static final int SLOTS = 512;
+    private static final int MOST_KEPT = 100000;
+    private static final int MOST_STEPS = 1000000;
+
+    /** Told TYPES are at most 4 deep; a guard for what goes down in one. */
+    private static final int MOST_LEVELS = 20;
+    /** Two calls stand open for each level of a JOIN. */
+    private static final int MOST_JOIN_LEVELS = 120;
+
+    private static final long DIGEST_START = 58064L;
+    private static final int DIGEST_FACTOR = 31;
+
+    private final ArrayList<Sort> sorts = new ArrayList<>();
+    private final ArrayList<Type> types = new ArrayList<>();
+    private final ArrayList<Expression> expressions = new ArrayList<>();
+    private final Chooser chooser = new Chooser();
+    private final ArrayList<Method> methods = chooser.methods;
+    private final Room room = chooser.room;
+    private final Road road = new Road();
+    private final Flaws noted = new Flaws();
+    /** The EXPRESSIONS with smaller numbers have their TYPES as all that was told has it. */
+    private int judged = 0;
+    private boolean isNoted = true;
+
+    public Hornbook() {
+        types.add(room.any);
+        types.add(room.nothing);
+        types.add(room.ownType);
+    }
+
+    // ---- what is told: each call that adds something tells its number
+
+    public int sort(int many, int first, int second) throws IllegalArgumentException, IllegalStateException {
+        boolean isGood = many >= 0 && many <= MOST_PARAMETERS
+                && (many < 1 || isHow(first)) && (many < 2 || isHow(second));
+        if (!isGood) throw new IllegalArgumentException("no such PARAMETERS");
+        if (sorts.size() >= MOST_SORTS) throw new IllegalStateException("no more SORTS");
+        Sort told = new Sort();
+        told.number = sorts.size();
+        told.many = many;
+        told.howOne = many < 1 ? FIXED : first;
+        told.howOther = many < 2 ? FIXED : second;
+        told.above = 1 << told.number;
+        sorts.add(told);
+        isNoted = false;
+        return told.number;
+    }
+
+    public int parent(int sort, int type)
+            throws IndexOutOfBoundsException, IllegalArgumentException, IllegalStateException {
+        needSort(sort);
+        needType(type);
+        Sort child = sorts.get(sort);
+        Type told = types.get(type);
+        int allowed = marksOf(child, false);
+        boolean isGood = told.of != null && told.greatest < sort && (told.marks & ~allowed) == 0;
+        if (!isGood) throw new IllegalArgumentException("no PARENT for this SORT");
+        if (child.second != null) throw new IllegalStateException("no more PARENTS");
+        boolean isFirst = child.first == null;
+        if (isFirst) child.first = told;
+        else child.second = told;
+        lookUp();
+        room.forgetJoins();
+        judged = 0;
+        isNoted = false;
+        return isFirst ? 1 : MOST_PARENTS;
+    }
+
+    public int type(int sort, int one, int other)
+            throws IndexOutOfBoundsException, IllegalArgumentException, IllegalStateException {
+        needSort(sort);
+        needTypeOrNone(one);
+        needTypeOrNone(other);
+        Sort of = sorts.get(sort);
+        needInOrder(one, other);
+        int many = (one == NONE ? 0 : 1) + (other == NONE ? 0 : 1);
+        if (many != of.many) throw new IllegalArgumentException("not as many as the PARAMETERS");
+        Type first = typeOrNone(one);
+        Type second = typeOrNone(other);
+        if (depthOf(first) >= DEEPEST_TOLD || depthOf(second) >= DEEPEST_TOLD) throw new IllegalArgumentException("too deep");
+        needSpaceForType();
+        types.add(room.make(of, first, second));
+        return types.size() - 1;
+    }
+
+    public int parameter(int which) throws IllegalArgumentException, IllegalStateException {
+        if (which != 0 && which != 1) throw new IllegalArgumentException("no such PARAMETER");
+        needSpaceForType();
+        types.add(which == 0 ? room.firstParameter : room.secondParameter);
+        return types.size() - 1;
+    }
+
+    public int method(int sort, int name, int one, int other, int result, boolean isGeneral)
+            throws IndexOutOfBoundsException, IllegalArgumentException, IllegalStateException {
+        needSort(sort);
+        needTypeOrNone(one);
+        needTypeOrNone(other);
+        needType(result);
+        needName(name);
+        needInOrder(one, other);
+        Method told = new Method();
+        told.sort = sorts.get(sort);
+        told.one = typeOrNone(one);
+        told.other = typeOrNone(other);
+        told.result = types.get(result);
+        int marks = told.result.marks;
+        if (told.one != null) marks |= told.one.marks;
+        if (told.other != null) marks |= told.other.marks;
+        if ((marks & ~marksOf(told.sort, isGeneral)) != 0) throw new IllegalArgumentException("not the METHOD's to use");
+        if (methods.size() >= MOST_METHODS) throw new IllegalStateException("no more METHODS");
+        told.number = methods.size();
+        told.name = name;
+        told.isGeneral = isGeneral;
+        methods.add(told);
+        judged = 0;
+        isNoted = false;
+        return told.number;
+    }
+
+    public int value(int type) throws IndexOutOfBoundsException, IllegalArgumentException, IllegalStateException {
+        needType(type);
+        needClosed(type);
+        return addExpression(VALUE, null, null, null, 0, types.get(type));
+    }
+
+    public int either(int a, int b) throws IndexOutOfBoundsException, IllegalStateException {
+        needExpression(a);
+        needExpression(b);
+        return addExpression(EITHER, expressions.get(a), expressions.get(b), null, 0, null);
+    }
+
+    public int as(int expression, int type)
+            throws IndexOutOfBoundsException, IllegalArgumentException, IllegalStateException {
+        needExpression(expression);
+        needType(type);
+        needClosed(type);
+        return addExpression(AS, expressions.get(expression), null, null, 0, types.get(type));
+    }
+
+    public int call(int expression, int name, int one, int other)
+            throws IndexOutOfBoundsException, IllegalArgumentException, IllegalStateException {
+        needExpression(expression);
+        if (one != NONE) needExpression(one);
+        if (other != NONE) needExpression(other);
+        needName(name);
+        needInOrder(one, other);
+        Expression first = one == NONE ? null : expressions.get(one);
+        Expression second = other == NONE ? null : expressions.get(other);
+        return addExpression(CALL, expressions.get(expression), first, second, name, null);
+    }
+
+    public int many(int what) throws IllegalArgumentException {
+        if (what < 0 || what > 3) throw new IllegalArgumentException("no such thing to count");
+        return countOf(what);
+    }
+
+    // ---- types
+
+    public int depth(int type) throws IndexOutOfBoundsException {
+        needType(type);
+        return types.get(type).depth;
+    }
+
+    public boolean isSame(int a, int b) throws IndexOutOfBoundsException {
+        needType(a);
+        needType(b);
+        return types.get(a) == types.get(b);
+    }
+
+    public boolean isUnder(int a, int b) throws IndexOutOfBoundsException {
+        needType(a);
+        needType(b);
+        return room.goesUnder(types.get(a), types.get(b));
+    }
+
+    public int road(int type, int place, int k) throws IndexOutOfBoundsException {
+        needType(type);
+        return lineAt(roadAt(types.get(type), place), k);
+    }
+
+    public int join(int a, int b, int k) throws IndexOutOfBoundsException {
+        needType(a);
+        needType(b);
+        return lineAt(room.joined(types.get(a), types.get(b), 0), k);
+    }
+
+    // ---- expressions
+
+    public int line(int expression, int k) throws IndexOutOfBoundsException {
+        needExpression(expression);
+        freshen();
+        return lineAt(expressions.get(expression).result, k);
+    }
+
+    public int seen(int expression) throws IndexOutOfBoundsException {
+        needExpression(expression);
+        freshen();
+        return expressions.get(expression).seen;
+    }
+
+    public int taking(int expression) throws IndexOutOfBoundsException {
+        needExpression(expression);
+        freshen();
+        return expressions.get(expression).taking;
+    }
+
+    public int chosen(int expression) throws IndexOutOfBoundsException {
+        needExpression(expression);
+        freshen();
+        return expressions.get(expression).chosen;
+    }
+
+    public int own(int expression, int k) throws IndexOutOfBoundsException {
+        needExpression(expression);
+        freshen();
+        return lineAt(expressions.get(expression).own, k);
+    }
+
+    // ---- faults and flaws
+
+    public int faults() {
+        freshen();
+        return countFaults();
+    }
+
+    public int ofFault(int fault, int what) throws IndexOutOfBoundsException, IllegalArgumentException {
+        freshen();
+        Expression faulty = faultAt(fault);
+        if (faulty == null) throw new IndexOutOfBoundsException("no such FAULT");
+        if (what != 0 && what != 1) throw new IllegalArgumentException("nothing to tell of a FAULT");
+        return what == 0 ? faulty.number : faulty.fault;
+    }
+
+    public boolean isFaulty(int expression) throws IndexOutOfBoundsException {
+        needExpression(expression);
+        freshen();
+        return expressions.get(expression).hasFault;
+    }
+
+    public int flaws() {
+        noteFlaws();
+        return noted.count;
+    }
+
+    public int ofFlaw(int flaw, int what) throws IndexOutOfBoundsException, IllegalArgumentException {
+        noteFlaws();
+        if (flaw < 0 || flaw >= noted.count) throw new IndexOutOfBoundsException("no such FLAW");
+        if (what < 0 || what > 2) throw new IllegalArgumentException("nothing to tell of a FLAW");
+        return noted.tell(flaw, what);
+    }
+
+    // ---- what would be (nothing is changed)
+
+    public int wouldChoose(int type, int name, int one, int other)
+            throws IndexOutOfBoundsException, IllegalArgumentException {
+        needType(type);
+        needTypeOrNone(one);
+        needTypeOrNone(other);
+        needName(name);
+        needInOrder(one, other);
+        needClosed(type);
+        if (one != NONE) needClosed(one);
+        if (other != NONE) needClosed(other);
+        int fault = chooser.choose(types.get(type), name, typeOrNone(one), typeOrNone(other));
+        if (fault != 0 || chooser.best == null) return -fault;
+        return chooser.best.method;
+    }
+
+    public int faultsWithout(int method) throws IndexOutOfBoundsException {
+        if (method < 0 || method >= methods.size()) throw new IndexOutOfBoundsException("no such METHOD");
+        chooser.without = method;
+        judged = 0;
+        freshen();
+        int count = countFaults();
+        chooser.without = NONE;
+        judged = 0;
+        return count;
+    }
+
+    public int faultsWith(int sort, int parameter, int how) throws IndexOutOfBoundsException, IllegalArgumentException {
+        needParameter(sort, parameter);
+        needHow(how);
+        Sort told = sorts.get(sort);
+        int before = told.howAt(parameter);
+        putHow(told, parameter, how);
+        freshen();
+        int count = countFaults();
+        putHow(told, parameter, before);
+        return count;
+    }
+
+    public int flawsWith(int sort, int parameter, int how) throws IndexOutOfBoundsException, IllegalArgumentException {
+        needParameter(sort, parameter);
+        needHow(how);
+        Sort told = sorts.get(sort);
+        int before = told.howAt(parameter);
+        putHow(told, parameter, how);
+        noteFlaws();
+        int count = noted.count;
+        putHow(told, parameter, before);
+        return count;
+    }
+
+    public double meanDepth() {
+        freshen();
+        int count = expressions.size();
+        if (count == 0) return 0.0;
+        int sum = 0;
+        for (int i = 0; i < count; i++) sum += depthOf(expressions.get(i).result);
+        return (double) sum / (double) count;
+    }
+
+    public long digest() {
+        freshen();
+        noteFlaws();
+        long d = DIGEST_START;
+        for (int what = 0; what <= 3; what++) d = mixed(d, countOf(what));
+        d = mixed(d, countFaults());
+        d = mixed(d, noted.count);
+        for (int i = 0; i < types.size(); i++) {
+            d = mixed(d, types.get(i).depth);
+            Type second = roadAt(types.get(i), 1);
+            for (int k = 0; k <= 3; k++) d = mixed(d, lineAt(second, k));
+        }
+        for (int i = 0; i < expressions.size(); i++) d = mixedExpression(d, expressions.get(i));
+        for (int i = 0; i < expressions.size(); i++) {
+            Expression at = expressions.get(i);
+            if (at.fault == 0) continue;
+            d = mixed(d, at.number);
+            d = mixed(d, at.fault);
+        }
+        for (int i = 0; i < noted.count; i++) {
+            for (int what = 0; what <= 2; what++) d = mixed(d, noted.tell(i, what));
+        }
+        return d;
+    }
+
+    // ---- what a call needs
+
+    private void needSort(int sort) {
+        if (sort < 0 || sort >= sorts.size()) throw new IndexOutOfBoundsException("no such SORT");
+    }
+
+    private void needType(int type) {
+        if (type < 0 || type >= types.size()) throw new IndexOutOfBoundsException("no such TYPE");
+    }
+
+    private void needTypeOrNone(int type) {
+        if (type != NONE) needType(type);
+    }
+
+    private void needExpression(int expression) {
+        if (expression < 0 || expression >= expressions.size()) throw new IndexOutOfBoundsException("no such EXPRESSION");
+    }
+
+    private void needParameter(int sort, int parameter) {
+        needSort(sort);
+        if (parameter < 0 || parameter >= sorts.get(sort).many) throw new IndexOutOfBoundsException("no such PARAMETER");
+    }
+
+    private void needClosed(int type) {
+        if (types.get(type).marks != 0) throw new IllegalArgumentException("not CLOSED");
+    }
+
+    private void needSpaceForType() {
+        if (types.size() >= MOST_TYPES) throw new IllegalStateException("no more TYPES");
+    }
+
+    private static void needName(int name) {
+        if (name < 0 || name >= NAMES) throw new IllegalArgumentException("no NAME");
+    }
+
+    private static void needInOrder(int one, int other) {
+        if (one == NONE && other != NONE) throw new IllegalArgumentException("the second one without the first one");
+    }
+
+    private static void needHow(int how) {
+        if (!isHow(how)) throw new IllegalArgumentException("no PARAMETER is so");
+    }
+
+    private static boolean isHow(int how) {
+        return how == FIXED || how == OUT || how == IN;
+    }
+
+    // ---- helpers of the calls
+
+    /** What may stand in the TYPES that are told for a SORT. */
+    private static int marksOf(Sort sort, boolean isGeneral) {
+        int marks = isGeneral ? HAS_OWN : 0;
+        if (sort.many > 0) marks |= HAS_FIRST;
+        if (sort.many > 1) marks |= HAS_SECOND;
+        return marks;
+    }
+
+    private Type typeOrNone(int type) {
+        return type < 0 || type >= types.size() ? null : types.get(type);
+    }
+
+    private static int depthOf(Type type) {
+        return type == null ? 0 : type.depth;
+    }
+
+    private int addExpression(int kind, Expression a, Expression b, Expression c, int name, Type told) {
+        if (expressions.size() >= MOST_EXPRESSIONS) throw new IllegalStateException("no more EXPRESSIONS");
+        Expression added = new Expression();
+        added.number = expressions.size();
+        added.kind = kind;
+        added.a = a;
+        added.b = b;
+        added.c = c;
+        added.name = name;
+        added.told = told;
+        expressions.add(added);
+        return added.number;
+    }
+
+    private int countOf(int what) {
+        switch (what) {
+            case 0: return sorts.size();
+            case 1: return types.size();
+            case 2: return methods.size();
+            default: return expressions.size();
+        }
+    }
+
+    /** Parents have smaller numbers, so one way through the SORTS is enough. */
+    private void lookUp() {
+        for (int i = 0; i < sorts.size(); i++) {
+            Sort at = sorts.get(i);
+            at.above = 1 << i;
+            if (at.first != null && at.first.of != null) at.above |= at.first.of.above;
+            if (at.second != null && at.second.of != null) at.above |= at.second.of.above;
+        }
+    }
+
+    private void putHow(Sort sort, int parameter, int how) {
+        if (parameter == 0) sort.howOne = how;
+        else sort.howOther = how;
+        room.forgetJoins();
+        judged = 0;
+        isNoted = false;
+    }
+
+    private Type roadAt(Type type, int place) {
+        road.clear();
+        room.climb(type, road, 0);
+        return road.at(place);
+    }
+
+    private static int lineAt(Type type, int k) {
+        Type at = type;
+        int left = k;
+        while (at != null && left > 0) {
+            left--;
+            if (at.one == null || left < at.one.size) {
+                at = at.one;
+            } else {
+                left -= at.one.size;
+                at = at.other;
+            }
+        }
+        return at == null || left < 0 ? NO_PLACE : at.code;
+    }
+
+    private void freshen() {
+        for (int i = judged; i < expressions.size(); i++) {
+            Expression at = expressions.get(i);
+            at.clear();
+            switch (at.kind) {
+                case VALUE:
+                    at.result = at.told;
+                    break;
+                case EITHER:
+                    at.result = room.joined(resultOf(at.a), resultOf(at.b), 0);
+                    break;
+                case AS:
+                    at.result = at.told;
+                    if (!room.goesUnder(resultOf(at.a), at.told)) at.fault = NOT_UNDER;
+                    break;
+                default:
+                    at.result = room.nothing;
+                    if (at.hasFault) break;
+                    at.fault = chooser.choose(resultOf(at.a), at.name, resultOf(at.b), resultOf(at.c));
+                    at.take(chooser);
+            }
+            if (at.fault != 0) at.hasFault = true;
+        }
+        judged = expressions.size();
+    }
+
+    private static Type resultOf(Expression expression) {
+        return expression == null ? null : expression.result;
+    }
+
+    private int countFaults() {
+        int count = 0;
+        for (int i = 0; i < expressions.size(); i++) {
+            if (expressions.get(i).fault != 0) count++;
+        }
+        return count;
+    }
+
+    private Expression faultAt(int fault) {
+        int left = fault;
+        for (int i = 0; i < expressions.size() && left >= 0; i++) {
+            Expression at = expressions.get(i);
+            if (at.fault == 0) continue;
+            if (left == 0) return at;
+            left--;
+        }
+        return null;
+    }
+
+    private void noteFlaws() {
+        if (isNoted) return;
+        noted.count = 0;
+        for (int i = 0; i < sorts.size(); i++) noteFlawsOf(sorts.get(i));
+        isNoted = true;
+    }
+
+    private void noteFlawsOf(Sort sort) {
+        if (room.standsBadly(sort.first, OUT, sort, 0)) noted.note(sort.number, BAD_PARENT, 0);
+        if (room.standsBadly(sort.second, OUT, sort, 0)) noted.note(sort.number, BAD_PARENT, 1);
+        Type one = sort.many > 0 ? room.firstParameter : null;
+        Type other = sort.many > 1 ? room.secondParameter : null;
+        road.clear();
+        room.climb(room.make(sort, one, other), road, 0);
+        if (road.isMixed) noted.note(sort.number, MIXED_ROAD, NONE);
+        for (int i = 0; i < methods.size(); i++) {
+            Method at = methods.get(i);
+            if (at.sort != sort) continue;
+            boolean isBad = room.standsBadly(at.one, IN, sort, 0) || room.standsBadly(at.other, IN, sort, 0)
+                    || room.standsBadly(at.result, OUT, sort, 0);
+            if (isBad) noted.note(sort.number, BAD_METHOD, at.number);
+        }
+    }
+
+    private static long mixed(long d, long x) {
+        return d * DIGEST_FACTOR + x;
+    }
+
+    private static long mixedExpression(long before, Expression at) {
+        long d = before;
+        for (int k = 0; k <= 5; k++) d = mixed(d, lineAt(at.result, k));
+        d = mixed(d, at.seen);
+        d = mixed(d, at.taking);
+        d = mixed(d, at.chosen);
+        d = mixed(d, lineAt(at.own, 0));
+        return mixed(d, at.hasFault ? 1 : 0);
+    }
+
+    private static final class Sort {
+        int number;
+        int many;
+        /** FIXED, if it has no such PARAMETER. */
+        int howOne;
+        int howOther;
+        Type first;
+        Type second;
+        /** The SORTS that come on its ROAD, one bit each. */
+        int above;
+
+        int howAt(int parameter) {
+            return parameter == 0 ? howOne : howOther;
+        }
+    }
+
+    /** TYPES that are the SAME are one object of a Room. */
+    private static final class Type {
+        /** null for all that is no TYPE of a SORT. */
+        Sort of;
+        int code;
+        Type one;
+        Type other;
+        int depth;
+        /** The length of its LINE; the greatest int for all that is longer. */
+        int size;
+        int marks;
+        /** The greatest number of a SORT in it. */
+        int greatest;
+        int number;
+        Type next;
+        /** It as the PARENTS of its SORT; null for what nobody has asked for yet. */
+        Type first;
+        Type second;
+    }
+
+    /** A ROAD, in a row that is used again and again. */
+    private static final class Road {
+        final Type[] row = new Type[MOST_SORTS];
+        int count = 0;
+        /** Whether a SORT came a second time, and not the SAME. */
+        boolean isMixed = false;
+
+        void clear() {
+            count = 0;
+            isMixed = false;
+        }
+
+        Type at(int place) {
+            return place < 0 || place >= count || place >= row.length ? null : row[place];
+        }
+
+        int placeOf(Sort sort) {
+            for (int i = 0; i < count && i < row.length; i++) {
+                if (row[i] != null && row[i].of == sort) return i;
+            }
+            return NONE;
+        }
+    }
+
+    /** Pairs of TYPES with a TYPE for each; a pair may push out an older one. */
+    private static final class Pairs {
+        final long[] keys = new long[SLOTS];
+        final int[] stamps = new int[SLOTS];
+        final Type[] kept = new Type[SLOTS];
+        int stamp = 1;
+
+        void forget() {
+            stamp++;
+        }
+
+        Type find(Type a, Type b) {
+            long key = keyOf(a, b);
+            int slot = slotOf(key);
+            return stamps[slot] == stamp && keys[slot] == key ? kept[slot] : null;
+        }
+
+        void keep(Type a, Type b, Type what) {
+            long key = keyOf(a, b);
+            int slot = slotOf(key);
+            keys[slot] = key;
+            stamps[slot] = stamp;
+            kept[slot] = what;
+        }
+
+        private static long keyOf(Type a, Type b) {
+            return ((long) a.number << 32) | b.number;
+        }
+
+        private static int slotOf(long key) {
+            int mixed = (int) (key >>> 32) * 40503 + (int) key * 31;
+            return (mixed ^ (mixed >>> 9)) & (SLOTS - 1);
+        }
+    }
+
+    /** All TYPES that there are, and how they lie to one another. */
+    private static final class Room {
+        final Type any = leaf(ANY, 0, 0);
+        final Type nothing = leaf(NOTHING, 1, 0);
+        final Type ownType = leaf(OWN_TYPE, 2, HAS_OWN);
+        final Type firstParameter = leaf(FIRST_PARAMETER, 3, HAS_FIRST);
+        final Type secondParameter = leaf(SECOND_PARAMETER, 4, HAS_SECOND);
+        private final Type[] heads = new Type[BUCKETS];
+        private int made = 5;
+        private final Pairs asked = new Pairs();
+        private final Pairs joins = new Pairs();
+        private final ArrayList<Type> pending = new ArrayList<>();
+        private final ArrayList<Road> roads = new ArrayList<>();
+        private int joinsLeft = 0;
+
+        private static Type leaf(int code, int number, int marks) {
+            Type made = new Type();
+            made.code = code;
+            made.size = 1;
+            made.marks = marks;
+            made.greatest = NONE;
+            made.number = number;
+            return made;
+        }
+
+        Type make(Sort of, Type one, Type other) {
+            int first = one == null ? NONE : one.number;
+            int second = other == null ? NONE : other.number;
+            int head = ((of.number * 31 + first) * 37 + second) & (BUCKETS - 1);
+            for (Type at = heads[head]; at != null; at = at.next) {
+                if (at.of == of && at.one == one && at.other == other) return at;
+            }
+            if (made >= MOST_KEPT) return any;
+            Type added = new Type();
+            added.of = of;
+            added.code = of.number;
+            added.one = one;
+            added.other = other;
+            added.greatest = of.number;
+            long size = 1;
+            for (int i = 0; i < 2; i++) {
+                Type in = i == 0 ? one : other;
+                if (in == null) continue;
+                added.depth = Math.max(added.depth, in.depth + 1);
+                added.marks |= in.marks;
+                added.greatest = Math.max(added.greatest, in.greatest);
+                size += in.size;
+            }
+            added.size = (int) Math.min(size, (long) Integer.MAX_VALUE);
+            added.number = made;
+            added.next = heads[head];
+            heads[head] = added;
+            made++;
+            return added;
+        }
+
+        /** Puts TYPES in the place of the PARAMETERS and of the OWN TYPE; null leaves one as it is. */
+        Type put(Type in, Type one, Type other, Type own, int level) {
+            int wanted = (one == null ? 0 : HAS_FIRST) | (other == null ? 0 : HAS_SECOND) | (own == null ? 0 : HAS_OWN);
+            if (in == null || (in.marks & wanted) == 0 || level > MOST_LEVELS) return in;
+            if (in == firstParameter) return one;
+            if (in == secondParameter) return other;
+            if (in.of == null) return own;
+            Type first = put(in.one, one, other, own, level + 1);
+            Type second = put(in.other, one, other, own, level + 1);
+            if (first != null && first.depth >= DEEPEST_TOLD) first = any;
+            if (second != null && second.depth >= DEEPEST_TOLD) second = any;
+            return make(in.of, first, second);
+        }
+
+        void climb(Type from, Road road, int level) {
+            if (from == null || from.of == null || level > MOST_SORTS) return;
+            int place = road.placeOf(from.of);
+            if (place >= 0) {
+                // what is the SAME has the same way up, so only the first one need be climbed
+                if (road.at(place) != from) road.isMixed = true;
+                return;
+            }
+            if (road.count >= road.row.length) return;
+            road.row[road.count] = from;
+            road.count++;
+            if (from.first == null) from.first = put(from.of.first, from.one, from.other, null, 0);
+            climb(from.first, road, level + 1);
+            if (from.second == null) from.second = put(from.of.second, from.one, from.other, null, 0);
+            climb(from.second, road, level + 1);
+        }
+
+        /** The TYPE of a SORT on the ROAD of one; null if there is none. */
+        Type onRoad(Type from, Sort sort) {
+            Type at = from;
+            for (int step = 0; step <= MOST_SORTS; step++) {
+                if (at == null || at.of == null || at.of == sort) break;
+                Sort of = at.of;
+                if (isAbove(of.first, sort)) {
+                    if (at.first == null) at.first = put(of.first, at.one, at.other, null, 0);
+                    at = at.first;
+                } else if (isAbove(of.second, sort)) {
+                    if (at.second == null) at.second = put(of.second, at.one, at.other, null, 0);
+                    at = at.second;
+                } else {
+                    at = null;
+                }
+            }
+            return at == null || at.of != sort ? null : at;
+        }
+
+        private static boolean isAbove(Type from, Sort sort) {
+            return from != null && from.of != null && (from.of.above >> sort.number & 1) == 1;
+        }
+
+        /** Whether a is UNDER b; also if there is neither. */
+        boolean goesUnder(Type a, Type b) {
+            if (a == b) return true;
+            if (a == null || b == null) return false;
+            asked.forget();
+            pending.clear();
+            pending.add(a);
+            pending.add(b);
+            for (int step = 0; step < MOST_STEPS; step++) {
+                int left = pending.size();
+                if (left < 2) return true;
+                Type high = pending.remove(left - 1);
+                Type low = pending.remove(left - 2);
+                if (low == high || low == nothing || high == any || asked.find(low, high) != null) continue;
+                asked.keep(low, high, low);
+                Type at = high.of == null ? null : onRoad(low, high.of);
+                if (at == null) return false;
+                if (!mayGo(at.one, high.one, high.of.howOne) || !mayGo(at.other, high.other, high.of.howOther)) return false;
+            }
+            return false;
+        }
+
+        /** What is not known at once is left pending. */
+        private boolean mayGo(Type a, Type b, int how) {
+            if (a == b) return true;
+            if (how == FIXED || a == null || b == null) return false;
+            pending.add(how == OUT ? a : b);
+            pending.add(how == OUT ? b : a);
+            return true;
+        }
+
+        void forgetJoins() {
+            joins.forget();
+        }
+
+        Type joined(Type a, Type b, int level) {
+            if (level == 0) joinsLeft = MOST_STEPS;
+            joinsLeft--;
+            if (a == null || b == null || level > MOST_JOIN_LEVELS || joinsLeft < 0) return any;
+            if (goesUnder(a, b)) return b;
+            if (goesUnder(b, a)) return a;
+            Type found = joins.find(a, b);
+            if (found != null) return found;
+            found = any;
+            Road road = roadFor(level);
+            climb(a, road, 0);
+            for (int i = 0; i < road.count; i++) {
+                Type x = road.at(i);
+                Type y = x == null ? null : onRoad(b, x.of);
+                if (y == null) continue;
+                Type one = together(x.one, y.one, x.of.howOne, level);
+                Type other = together(x.other, y.other, x.of.howOther, level);
+                if (one == null && x.one != null || other == null && x.other != null) continue;
+                found = make(x.of, one, other);
+                break;
+            }
+            joins.keep(a, b, found);
+            return found;
+        }
+
+        /** What two TYPES at one place of a SORT go together to; null if they don't. */
+        private Type together(Type x, Type y, int how, int level) {
+            if (x == y) return x;
+            if (how == FIXED || x == null || y == null) return null;
+            if (how == OUT) return joined(x, y, level + 1);
+            if (goesUnder(x, y)) return x;
+            return goesUnder(y, x) ? y : null;
+        }
+
+        /** One for each level of a JOIN, as all of these are gone along at once. */
+        private Road roadFor(int level) {
+            for (int i = roads.size(); i <= level; i++) roads.add(new Road());
+            Road road = roads.get(level);
+            road.clear();
+            return road;
+        }
+
+        /** Whether a PARAMETER of the SORT stands where it must not, in what itself stands this way. */
+        boolean standsBadly(Type in, int way, Sort sort, int level) {
+            if (in == null || (in.marks & (HAS_FIRST | HAS_SECOND)) == 0 || level > MOST_LEVELS) return false;
+            if (in.of == null) {
+                int how = sort.howAt(in == firstParameter ? 0 : 1);
+                return how != FIXED && how != way;
+            }
+            return standsBadly(in.one, turned(way, in.of.howOne), sort, level + 1)
+                    || standsBadly(in.other, turned(way, in.of.howOther), sort, level + 1);
+        }
+
+        private static int turned(int way, int how) {
+            if (way == FIXED || how == FIXED) return FIXED;
+            return how == OUT ? way : OUT + IN - way;
+        }
+    }
+
+    private static final class Method {
+        int number;
+        Sort sort;
+        int name;
+        Type one;
+        Type other;
+        Type result;
+        boolean isGeneral;
+    }
+
+    /** A METHOD as it is SEEN. */
+    private static final class Candidate {
+        int method;
+        int place;
+        boolean isGeneral;
+        Type one;
+        Type other;
+        Type result;
+        /** The OWN TYPE that was found; null if it is not GENERAL. */
+        Type own;
+        boolean takes;
+    }
+
+    /** Finds the METHOD for a CALL, and tells what came on the way. */
+    private static final class Chooser {
+        final Room room = new Room();
+        final ArrayList<Method> methods = new ArrayList<>();
+        private final Road road = new Road();
+        private final Candidate[] candidates = new Candidate[MOST_METHODS];
+        private final ArrayList<Type> hints = new ArrayList<>();
+        /** A METHOD that counts as not told. */
+        int without = NONE;
+        int seen = 0;
+        int taking = 0;
+        Candidate best = null;
+
+        Chooser() {
+            for (int i = 0; i < candidates.length; i++) candidates[i] = new Candidate();
+        }
+
+        /** The code of the FAULT; 0 without one. */
+        int choose(Type from, int name, Type one, Type other) {
+            lookAround(from, name);
+            taking = 0;
+            for (int i = 0; i < seen; i++) {
+                Candidate at = candidates[i];
+                at.takes = (at.one == null) == (one == null) && (at.other == null) == (other == null);
+                if (!at.takes) continue;
+                if (at.isGeneral) settleOwn(at, one, other);
+                at.takes = room.goesUnder(one, at.one) && room.goesUnder(other, at.other);
+                if (at.takes) taking++;
+            }
+            best = null;
+            for (int i = 0; i < seen && best == null; i++) {
+                if (candidates[i].takes && isBest(candidates[i])) best = candidates[i];
+            }
+            if (seen == 0) return NONE_SEEN;
+            if (taking == 0) return NONE_TAKES;
+            return best == null ? NONE_BEST : 0;
+        }
+
+        private void lookAround(Type from, int name) {
+            seen = 0;
+            road.clear();
+            room.climb(from, road, 0);
+            for (int i = 0; i < methods.size() && seen < candidates.length; i++) {
+                Method at = methods.get(i);
+                if (at.name != name || at.number == without) continue;
+                int place = road.placeOf(at.sort);
+                Type there = road.at(place);
+                if (there == null) continue;
+                Candidate added = candidates[seen];
+                seen++;
+                added.method = at.number;
+                added.place = place;
+                added.isGeneral = at.isGeneral;
+                added.one = room.put(at.one, there.one, there.other, null, 0);
+                added.other = room.put(at.other, there.one, there.other, null, 0);
+                added.result = room.put(at.result, there.one, there.other, null, 0);
+                added.own = null;
+            }
+        }
+
+        private void settleOwn(Candidate at, Type one, Type other) {
+            hints.clear();
+            gatherHints(at.one, one, 0);
+            gatherHints(at.other, other, 0);
+            at.own = null;
+            for (int i = 0; i < hints.size() && at.own == null; i++) {
+                boolean isAbove = true;
+                for (int j = 0; j < hints.size() && isAbove; j++) isAbove = room.goesUnder(hints.get(j), hints.get(i));
+                if (isAbove) at.own = hints.get(i);
+            }
+            if (at.own == null) at.own = room.any;
+            at.one = room.put(at.one, null, null, at.own, 0);
+            at.other = room.put(at.other, null, null, at.own, 0);
+            at.result = room.put(at.result, null, null, at.own, 0);
+        }
+
+        private void gatherHints(Type given, Type taken, int level) {
+            if (given == null || taken == null || (given.marks & HAS_OWN) == 0 || level > MOST_LEVELS) return;
+            if (given.of == null) {
+                hints.add(taken);
+                return;
+            }
+            Type at = room.onRoad(taken, given.of);
+            if (at == null) return;
+            gatherHints(given.one, at.one, level + 1);
+            gatherHints(given.other, at.other, level + 1);
+        }
+
+        private boolean isBest(Candidate c) {
+            for (int i = 0; i < seen; i++) {
+                Candidate d = candidates[i];
+                if (d == c || !d.takes) continue;
+                if (!room.goesUnder(c.one, d.one) || !room.goesUnder(c.other, d.other)) return false;
+                boolean isBack = room.goesUnder(d.one, c.one) && room.goesUnder(d.other, c.other);
+                if (isBack && c.place >= d.place) return false;
+            }
+            return true;
+        }
+    }
+
+    private static final class Expression {
+        int number;
+        int kind;
+        Expression a;
+        Expression b;
+        Expression c;
+        int name;
+        Type told;
+        Type result;
+        Type own;
+        int seen;
+        int taking;
+        int chosen;
+        int fault;
+        boolean hasFault;
+
+        /** As it is before it is judged: it has in it what those have that are named in it. */
+        void clear() {
+            own = null;
+            seen = 0;
+            taking = 0;
+            chosen = NONE;
+            fault = 0;
+            hasFault = a != null && a.hasFault || b != null && b.hasFault || c != null && c.hasFault;
+        }
+
+        void take(Chooser from) {
+            seen = from.seen;
+            taking = from.taking;
+            if (fault != 0 || from.best == null) return;
+            result = from.best.result;
+            own = from.best.own;
+            chosen = from.best.method;
+        }
+    }
+
+    private static final class Flaws {
+        private final int[] sorts = new int[MOST_SORTS * 3 + MOST_METHODS];
+        private final int[] codes = new int[MOST_SORTS * 3 + MOST_METHODS];
+        private final int[] places = new int[MOST_SORTS * 3 + MOST_METHODS];
+        int count = 0;
+
+        void note(int sort, int code, int place) {
+            if (count >= sorts.length) return;
+            sorts[count] = sort;
+            codes[count] = code;
+            places[count] = place;
+            count++;
+        }
+
+        int tell(int flaw, int what) {
+            if (flaw < 0 || flaw >= count) return NONE;
+            if (what == 0) return sorts[flaw];
+            return what == 1 ? codes[flaw] : places[flaw];
+        }
+    }
+}
