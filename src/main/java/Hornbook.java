@@ -30,6 +30,7 @@ public final class Hornbook {
 
     private static final int NONE = -1;
     private static final int NO_PLACE = -9;
+    private static final int GREATEST_INT = 0x7fffffff;
 
     private static final int VALUE = 0;
     private static final int EITHER = 1;
@@ -100,8 +101,7 @@ public final class Hornbook {
         needType(type);
         Sort child = sorts.get(sort);
         Type told = types.get(type);
-        int allowed = marksOf(child, false);
-        boolean isGood = told.of != null && told.greatest < sort && (told.marks & ~allowed) == 0;
+        boolean isGood = told.of != null && told.greatest < sort && !has(told, ~allowedIn(child, false));
         if (!isGood) throw new IllegalArgumentException("no PARENT for this SORT");
         if (child.second != null) throw new IllegalStateException("no more PARENTS");
         boolean isFirst = child.first == null;
@@ -125,7 +125,8 @@ public final class Hornbook {
         if (many != of.many) throw new IllegalArgumentException("not as many as the PARAMETERS");
         Type first = typeOrNone(one);
         Type second = typeOrNone(other);
-        if (depthOf(first) >= DEEPEST_TOLD || depthOf(second) >= DEEPEST_TOLD) throw new IllegalArgumentException("too deep");
+        boolean isTooDeep = depthOf(first) >= DEEPEST_TOLD || depthOf(second) >= DEEPEST_TOLD;
+        if (isTooDeep) throw new IllegalArgumentException("too deep");
         needSpaceForType();
         types.add(room.make(of, first, second));
         return types.size() - 1;
@@ -146,18 +147,21 @@ public final class Hornbook {
         needType(result);
         needName(name);
         needInOrder(one, other);
-        Method told = new Method();
-        told.sort = sorts.get(sort);
-        told.one = typeOrNone(one);
-        told.other = typeOrNone(other);
-        told.result = types.get(result);
-        int marks = told.result.marks;
-        if (told.one != null) marks |= told.one.marks;
-        if (told.other != null) marks |= told.other.marks;
-        if ((marks & ~marksOf(told.sort, isGeneral)) != 0) throw new IllegalArgumentException("not the METHOD's to use");
+        Sort of = sorts.get(sort);
+        Type first = typeOrNone(one);
+        Type second = typeOrNone(other);
+        Type last = types.get(result);
+        int barred = ~allowedIn(of, isGeneral);
+        boolean isBarred = has(first, barred) || has(second, barred) || has(last, barred);
+        if (isBarred) throw new IllegalArgumentException("in one is what the METHOD must not use");
         if (methods.size() >= MOST_METHODS) throw new IllegalStateException("no more METHODS");
+        Method told = new Method();
         told.number = methods.size();
+        told.sort = of;
         told.name = name;
+        told.one = first;
+        told.other = second;
+        told.result = last;
         told.isGeneral = isGeneral;
         methods.add(told);
         judged = 0;
@@ -398,12 +402,14 @@ public final class Hornbook {
     }
 
     private void needExpression(int expression) {
-        if (expression < 0 || expression >= expressions.size()) throw new IndexOutOfBoundsException("no such EXPRESSION");
+        boolean isThere = expression >= 0 && expression < expressions.size();
+        if (!isThere) throw new IndexOutOfBoundsException("no such EXPRESSION");
     }
 
     private void needParameter(int sort, int parameter) {
         needSort(sort);
-        if (parameter < 0 || parameter >= sorts.get(sort).many) throw new IndexOutOfBoundsException("no such PARAMETER");
+        boolean isThere = parameter >= 0 && parameter < sorts.get(sort).many;
+        if (!isThere) throw new IndexOutOfBoundsException("no such PARAMETER");
     }
 
     private void needClosed(int type) {
@@ -433,11 +439,15 @@ public final class Hornbook {
     // ---- helpers of the calls
 
     /** What may stand in the TYPES that are told for a SORT. */
-    private static int marksOf(Sort sort, boolean isGeneral) {
+    private static int allowedIn(Sort sort, boolean isGeneral) {
         int marks = isGeneral ? HAS_OWN : 0;
         if (sort.many > 0) marks |= HAS_FIRST;
         if (sort.many > 1) marks |= HAS_SECOND;
         return marks;
+    }
+
+    private static boolean has(Type type, int marks) {
+        return type != null && (type.marks & marks) != 0;
     }
 
     private Type typeOrNone(int type) {
@@ -740,7 +750,7 @@ public final class Hornbook {
                 added.greatest = Math.max(added.greatest, in.greatest);
                 size += in.size;
             }
-            added.size = (int) Math.min(size, (long) Integer.MAX_VALUE);
+            added.size = (int) Math.min(size, (long) GREATEST_INT);
             added.number = made;
             added.next = heads[head];
             heads[head] = added;
@@ -749,7 +759,7 @@ public final class Hornbook {
         }
 
         /** Puts TYPES in the place of the PARAMETERS and of the OWN TYPE; null leaves one as it is. */
-        Type put(Type in, Type one, Type other, Type own, int level) {
+        private Type put(Type in, Type one, Type other, Type own, int level) {
             int wanted = (one == null ? 0 : HAS_FIRST) | (other == null ? 0 : HAS_SECOND) | (own == null ? 0 : HAS_OWN);
             if (in == null || (in.marks & wanted) == 0 || level > MOST_LEVELS) return in;
             if (in == firstParameter) return one;
@@ -762,7 +772,7 @@ public final class Hornbook {
             return make(in.of, first, second);
         }
 
-        void climb(Type from, Road road, int level) {
+        private void climb(Type from, Road road, int level) {
             if (from == null || from.of == null || level > MOST_SORTS) return;
             int place = road.placeOf(from.of);
             if (place >= 0) {
@@ -819,7 +829,8 @@ public final class Hornbook {
                 asked.keep(low, high, low);
                 Type at = high.of == null ? null : onRoad(low, high.of);
                 if (at == null) return false;
-                if (!mayGo(at.one, high.one, high.of.howOne) || !mayGo(at.other, high.other, high.of.howOther)) return false;
+                boolean mayBe = mayGo(at.one, high.one, high.of.howOne) && mayGo(at.other, high.other, high.of.howOther);
+                if (!mayBe) return false;
             }
             return false;
         }
@@ -837,7 +848,7 @@ public final class Hornbook {
             joins.forget();
         }
 
-        Type joined(Type a, Type b, int level) {
+        private Type joined(Type a, Type b, int level) {
             if (level == 0) joinsLeft = MOST_STEPS;
             joinsLeft--;
             if (a == null || b == null || level > MOST_JOIN_LEVELS || joinsLeft < 0) return any;
@@ -880,7 +891,7 @@ public final class Hornbook {
         }
 
         /** Whether a PARAMETER of the SORT stands where it must not, in what itself stands this way. */
-        boolean standsBadly(Type in, int way, Sort sort, int level) {
+        private boolean standsBadly(Type in, int way, Sort sort, int level) {
             if (in == null || (in.marks & (HAS_FIRST | HAS_SECOND)) == 0 || level > MOST_LEVELS) return false;
             if (in.of == null) {
                 int how = sort.howAt(in == firstParameter ? 0 : 1);
