@@ -994,7 +994,6 @@ public final class Hornbook {
             hints.clear();
             gatherHints(at.one, one, 0);
             gatherHints(at.other, other, 0);
-            at.own = null;
             for (int i = 0; i < hints.size() && at.own == null; i++) {
                 boolean isAbove = true;
                 for (int j = 0; j < hints.size() && isAbove; j++) isAbove = room.goesUnder(hints.get(j), hints.get(i));

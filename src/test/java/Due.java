@@ -30,7 +30,7 @@ final class Due {
         if (!gotText.equals(dueText)) tell(call + " answered " + gotText + ", due is " + dueText);
     }
 
-    /** The call throws just this exception, and changes nothing. */
+    /** The call throws just this exception, by the class itself and not by the library, and changes nothing. */
     void fails(Hornbook x, String call, Class<?> due, Runnable run) {
         long before = x.digest();
         Class<?> got = null;
@@ -38,6 +38,8 @@ final class Due {
             run.run();
         } catch (RuntimeException e) {
             got = e.getClass();
+            String thrower = e.getStackTrace()[0].getClassName();
+            if (!thrower.equals("Hornbook")) tell(call + " threw by " + thrower);
         }
         if (got != due) tell(call + " threw " + got + ", due is " + due);
         if (x.digest() != before) tell(call + " threw, but changed something");

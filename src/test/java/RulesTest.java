@@ -1,0 +1,118 @@
+import java.io.IOException;
+import java.lang.reflect.Constructor;
+import java.lang.reflect.Field;
+import java.lang.reflect.Method;
+import java.lang.reflect.Modifier;
+import java.nio.charset.StandardCharsets;
+import java.nio.file.Files;
+import java.nio.file.Path;
+import java.util.Arrays;
+import java.util.List;
+import java.util.TreeSet;
+import java.util.regex.Matcher;
+import java.util.regex.Pattern;
+
+/** What ../shared/LANGUAGE.md asks of the source, as far as a test can see it; run from the project's directory. */
+public final class RulesTest {
+    private static final Due due = new Due();
+    private static final List<String> FACE = List.of("sort", "parent", "type", "parameter", "method", "value", "either",
+            "as", "call", "many", "depth", "isSame", "isUnder", "road", "join", "line", "seen", "taking", "chosen", "own",
+            "faults", "ofFault", "isFaulty", "flaws", "ofFlaw", "wouldChoose", "faultsWithout", "faultsWith", "flawsWith",
+            "meanDepth", "digest");
+
+    public static void main(String[] args) throws IOException {
+        String source = Files.readString(Path.of("src/main/java/Hornbook.java"), StandardCharsets.UTF_8);
+        String code = source.replaceAll("(?s)/\\*.*?\\*/", " ").replaceAll("//[^\n]*", " ");
+        String bare = code.replaceAll("\"[^\"\n]*\"", "\"\"");
+        face();
+        inside();
+        words(source, bare);
+        exceptions(bare);
+        methods(bare);
+        due.end();
+    }
+
+    private static void face() {
+        due.part("rule 1, the face");
+        TreeSet<String> names = new TreeSet<>();
+        for (Method m : Hornbook.class.getDeclaredMethods()) {
+            if (m.isSynthetic()) continue;
+            if (Modifier.isPublic(m.getModifiers())) {
+                names.add(m.getName());
+                continue;
+            }
+            due.is(m.getName() + " is private", Modifier.isPrivate(m.getModifiers()), true);
+            due.is(m.getName() + " bears a public name", FACE.contains(m.getName()), false);
+        }
+        due.is("the public methods " + names, names.equals(new TreeSet<>(FACE)), true);
+        for (Field f : Hornbook.class.getDeclaredFields()) {
+            due.is(f.getName() + " is private", Modifier.isPrivate(f.getModifiers()), true);
+        }
+        Constructor<?>[] made = Hornbook.class.getDeclaredConstructors();
+        due.is("constructors", made.length, 1);
+        due.is("Hornbook is final", Modifier.isFinal(Hornbook.class.getModifiers()), true);
+    }
+
+    private static void inside() {
+        due.part("rules 1, 5 and 11, the classes inside");
+        Class<?>[] inner = Hornbook.class.getDeclaredClasses();
+        due.is("at most twelve classes", inner.length < 12, true);
+        for (Class<?> c : inner) {
+            due.is(c + " is static", Modifier.isStatic(c.getModifiers()), true);
+            due.is(c + " is public or protected", (c.getModifiers() & (Modifier.PUBLIC | Modifier.PROTECTED)) != 0, false);
+            due.is(c + " has at most twenty fields", c.getDeclaredFields().length <= 20, true);
+            for (Method m : c.getDeclaredMethods()) {
+                due.is(c + "." + m.getName() + " bears a public name", FACE.contains(m.getName()), false);
+                due.is(c + "." + m.getName() + " has at most seven parameters", m.getParameterCount() <= 7, true);
+            }
+        }
+        Class<?>[] all = Arrays.copyOf(inner, inner.length + 1);
+        all[inner.length] = Hornbook.class;
+        for (Class<?> c : all) {
+            for (Field f : c.getDeclaredFields()) {
+                if (!Modifier.isStatic(f.getModifiers())) continue;
+                due.is(c + "." + f.getName() + " is a final constant",
+                        Modifier.isFinal(f.getModifiers()) && f.getType().isPrimitive(), true);
+            }
+        }
+    }
+
+    private static void words(String source, String bare) {
+        due.part("rules 2 to 6, words");
+        due.is("only signs of ASCII", source.chars().allMatch(c -> c == '\n' || c >= 32 && c < 127), true);
+        Matcher imports = Pattern.compile("\\bimport\\s+([^;]+);").matcher(bare);
+        while (imports.find()) due.is("import " + imports.group(1), imports.group(1).equals("java.util.ArrayList"), true);
+        String[] barred = {"->", "::", "\\bsynchronized\\b", "\\bassert\\b", "\\bfinally\\b", "\\btry\\b", "\\bcatch\\b",
+            "\\bSystem\\b", "\\bThread\\b", "\\bprotected\\b", "\\bstatic\\s*\\{", "Exact\\b", "\\bhashCode\\b",
+            "\\btoString\\b", "\\bfloat\\b", "\\bObject\\b", "\\binstanceof\\b", "\\bpackage\\b", "\\bInteger\\b",
+            "\\bString\\b", "@", "\\bvar\\b", "\\bvolatile\\b", "\\bnative\\b", "\"\" *\\+", "\\+ *\"\""};
+        for (String b : barred) due.is(b + " is in it", Pattern.compile(b).matcher(bare).find(), false);
+    }
+
+    private static void exceptions(String bare) {
+        due.part("rule 6, exceptions");
+        Matcher thrown = Pattern.compile("\\bthrow\\b([^;]*);").matcher(bare);
+        Pattern form = Pattern.compile("\\s+new (IllegalState|IllegalArgument|IndexOutOfBounds)Exception\\(\"\"\\)");
+        int count = 0;
+        while (thrown.find()) {
+            count++;
+            due.is("throw" + thrown.group(1) + " has its form", form.matcher(thrown.group(1)).matches(), true);
+        }
+        due.is("there are some", count > 10, true);
+    }
+
+    private static void methods(String bare) {
+        due.part("rule 11, short methods");
+        int level = 0;
+        int begun = 0;
+        String[] lines = bare.split("\n");
+        for (int i = 0; i < lines.length; i++) {
+            boolean isHead = lines[i].matches("\\s+(private |public |static |final )*[\\w<>\\[\\]]+ \\w+\\(.*")
+                    && !lines[i].contains("return ") && !lines[i].contains("else ") && !lines[i].contains(" = ");
+            if (isHead) begun = i;
+            for (char c : lines[i].toCharArray()) level += c == '{' ? 1 : c == '}' ? -1 : 0;
+            due.is("line " + (i + 1) + " is within sixty lines of its method", i - begun > 60 && level > 2, false);
+        }
+        due.is("what is opened is closed", level, 0);
+    }
+}
