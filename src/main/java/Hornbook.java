@@ -1,4 +1,5 @@
 import java.util.ArrayList;
+import java.util.Arrays;
 
 /** A checker of types for a small language. */
 public final class Hornbook {
@@ -46,25 +47,35 @@ public final class Hornbook {
     private static final int MIXED_ROAD = 2;
     private static final int BAD_METHOD = 3;
 
-    private static final int BUCKETS = 256;
-    private static final int SLOTS = 512;
-    private static final int MOST_KEPT = 100000;
-    private static final int MOST_STEPS = 1000000;
+    private static final int NO = 0;
+    private static final int YES = 1;
+
+    private static final int LEAVES = 5;
+    private static final int FIRST_LIMIT = 8192;
+    private static final int TYPES_A_HEAD = 4;
+    private static final int MOST_KEPT = 280000;
+    private static final int FIRST_SLOTS = 256;
+    private static final int MOST_SLOTS = 1 << 18;
+    private static final int MOST_STEPS = 1000000000;
+
+    /** How many bits the number of a TYPE has at most. */
+    private static final int NUMBER_BITS = 20;
+    private static final long SPREAD = 0x9E3779B97F4A7C15L;
+    private static final int SPREAD_FIRST = 0x85EBCA6B;
+    private static final int SPREAD_SECOND = 0xC2B2AE35;
 
     /** Told TYPES are at most 4 deep; a guard for what goes down in one. */
     private static final int MOST_LEVELS = 20;
-    /** Two calls stand open for each level of a JOIN. */
-    private static final int MOST_JOIN_LEVELS = 120;
 
     private static final long DIGEST_START = 58064L;
     private static final int DIGEST_FACTOR = 31;
 
     private final ArrayList<Sort> sorts = new ArrayList<>();
-    private final ArrayList<Type> types = new ArrayList<>();
     private final ArrayList<Expression> expressions = new ArrayList<>();
     private final Chooser chooser = new Chooser();
     private final ArrayList<Method> methods = chooser.methods;
     private final Room room = chooser.room;
+    private final ArrayList<Type> types = room.told;
     private final Road road = new Road();
     private final Flaws noted = new Flaws();
     /** The EXPRESSIONS with smaller numbers have their TYPES as all that was told has it. */
@@ -108,8 +119,8 @@ public final class Hornbook {
         if (isFirst) child.first = told;
         else child.second = told;
         lookUp();
-        room.forgetJoins();
-        judged = 0;
+        room.forget();
+        unjudge();
         isNoted = false;
         return isFirst ? 1 : MOST_PARENTS;
     }
@@ -128,6 +139,7 @@ public final class Hornbook {
         boolean isTooDeep = depthOf(first) >= DEEPEST_TOLD || depthOf(second) >= DEEPEST_TOLD;
         if (isTooDeep) throw new IllegalArgumentException("too deep");
         needSpaceForType();
+        room.tidy();
         types.add(room.make(of, first, second));
         return types.size() - 1;
     }
@@ -164,7 +176,7 @@ public final class Hornbook {
         told.result = last;
         told.isGeneral = isGeneral;
         methods.add(told);
-        judged = 0;
+        unjudge();
         isNoted = false;
         return told.number;
     }
@@ -233,7 +245,7 @@ public final class Hornbook {
     public int join(int a, int b, int k) throws IndexOutOfBoundsException {
         needType(a);
         needType(b);
-        return lineAt(room.joined(types.get(a), types.get(b), 0), k);
+        return lineAt(room.joined(types.get(a), types.get(b)), k);
     }
 
     // ---- expressions
@@ -321,11 +333,11 @@ public final class Hornbook {
     public int faultsWithout(int method) throws IndexOutOfBoundsException {
         if (method < 0 || method >= methods.size()) throw new IndexOutOfBoundsException("no such METHOD");
         chooser.without = method;
-        judged = 0;
+        unjudge();
         freshen();
         int count = countFaults();
         chooser.without = NONE;
-        judged = 0;
+        unjudge();
         return count;
     }
 
@@ -494,12 +506,13 @@ public final class Hornbook {
     private void putHow(Sort sort, int parameter, int how) {
         if (parameter == 0) sort.howOne = how;
         else sort.howOther = how;
-        room.forgetJoins();
-        judged = 0;
+        room.forget();
+        unjudge();
         isNoted = false;
     }
 
     private Type roadAt(Type type, int place) {
+        room.tidy();
         road.clear();
         room.climb(type, road, 0);
         return road.at(place);
@@ -520,6 +533,11 @@ public final class Hornbook {
         return at == null || left < 0 ? NO_PLACE : at.code;
     }
 
+    private void unjudge() {
+        judged = 0;
+        room.letGo(0);
+    }
+
     private void freshen() {
         for (int i = judged; i < expressions.size(); i++) {
             Expression at = expressions.get(i);
@@ -529,7 +547,7 @@ public final class Hornbook {
                     at.result = at.told;
                     break;
                 case EITHER:
-                    at.result = room.joined(resultOf(at.a), resultOf(at.b), 0);
+                    at.result = room.joined(resultOf(at.a), resultOf(at.b));
                     break;
                 case AS:
                     at.result = at.told;
@@ -542,6 +560,8 @@ public final class Hornbook {
                     at.take(chooser);
             }
             if (at.fault != 0) at.hasFault = true;
+            room.hold(at.result);
+            room.hold(at.own);
         }
         judged = expressions.size();
     }
@@ -581,6 +601,7 @@ public final class Hornbook {
         if (room.standsBadly(sort.second, OUT, sort, 0)) noted.note(sort.number, BAD_PARENT, 1);
         Type one = sort.many > 0 ? room.firstParameter : null;
         Type other = sort.many > 1 ? room.secondParameter : null;
+        room.tidy();
         road.clear();
         room.climb(room.make(sort, one, other), road, 0);
         if (road.isMixed) noted.note(sort.number, MIXED_ROAD, NONE);
@@ -623,7 +644,7 @@ public final class Hornbook {
         }
     }
 
-    /** TYPES that are the SAME are one object of a Room. */
+    /** TYPES that are the SAME are one object of a Room, as long as it is in use. */
     private static final class Type {
         /** null for all that is no TYPE of a SORT. */
         Sort of;
@@ -636,11 +657,14 @@ public final class Hornbook {
         int marks;
         /** The greatest number of a SORT in it. */
         int greatest;
+        /** Its place in the Room, as long as that isn't tidied. */
         int number;
+        int hash;
         Type next;
         /** It as the PARENTS of its SORT; null for what nobody has asked for yet. */
         Type first;
         Type second;
+        boolean isNeeded;
     }
 
     /** A ROAD, in a row that is used again and again. */
@@ -667,55 +691,142 @@ public final class Hornbook {
         }
     }
 
-    /** Pairs of TYPES with a TYPE for each; a pair may push out an older one. */
+    /** Pairs of TYPES with a number for each; all are forgotten at once, if there are too many. */
     private static final class Pairs {
-        final long[] keys = new long[SLOTS];
-        final int[] stamps = new int[SLOTS];
-        final Type[] kept = new Type[SLOTS];
-        int stamp = 1;
+        /** 0 where nothing is; else the numbers of both TYPES, that for the pair, and a bit that is 1. */
+        private long[] slots = new long[FIRST_SLOTS];
+        private int count = 0;
 
         void forget() {
-            stamp++;
+            if (count > 0) Arrays.fill(slots, 0L);
+            count = 0;
         }
 
-        Type find(Type a, Type b) {
-            long key = keyOf(a, b);
-            int slot = slotOf(key);
-            return stamps[slot] == stamp && keys[slot] == key ? kept[slot] : null;
+        /** NONE, if there is no such pair. */
+        int find(Type a, Type b) {
+            long key = ((long) a.number << NUMBER_BITS) | b.number;
+            int slot = (int) (key * SPREAD >>> 40) & (slots.length - 1);
+            for (int i = 0; i < slots.length && slots[slot] != 0; i++) {
+                if (slots[slot] >>> (NUMBER_BITS + 1) == key) {
+                    return (int) (slots[slot] >>> 1) & ((1 << NUMBER_BITS) - 1);
+                }
+                slot = (slot + 1) & (slots.length - 1);
+            }
+            return NONE;
         }
 
-        void keep(Type a, Type b, Type what) {
-            long key = keyOf(a, b);
-            int slot = slotOf(key);
-            keys[slot] = key;
-            stamps[slot] = stamp;
-            kept[slot] = what;
+        void keep(Type a, Type b, int number) {
+            if (count * 2 >= slots.length) makeSpace();
+            long key = ((long) a.number << NUMBER_BITS) | b.number;
+            add((key << NUMBER_BITS | number) << 1 | 1);
         }
 
-        private static long keyOf(Type a, Type b) {
-            return ((long) a.number << 32) | b.number;
+        private void makeSpace() {
+            if (slots.length >= MOST_SLOTS) {
+                forget();
+                return;
+            }
+            long[] old = slots;
+            slots = new long[old.length * 2];
+            count = 0;
+            for (int i = 0; i < old.length; i++) {
+                if (old[i] != 0) add(old[i]);
+            }
         }
 
-        private static int slotOf(long key) {
-            int mixed = (int) (key >>> 32) * 40503 + (int) key * 31;
-            return (mixed ^ (mixed >>> 9)) & (SLOTS - 1);
+        private void add(long entry) {
+            long key = entry >>> (NUMBER_BITS + 1);
+            int slot = (int) (key * SPREAD >>> 40) & (slots.length - 1);
+            for (int i = 0; i < slots.length && slots[slot] != 0; i++) slot = (slot + 1) & (slots.length - 1);
+            slots[slot] = entry;
+            count++;
         }
     }
 
-    /** All TYPES that there are, and how they lie to one another. */
+    /** A question that stands open: whether a is UNDER b, or what both come to be together. */
+    private static final class Step {
+        Type a;
+        Type b;
+        /** Those on their ROADS that are of one SORT, whose TYPES are gone along. */
+        Type x;
+        Type y;
+        /** How many of these have been asked for. */
+        int turn;
+        /** What they come to be together. */
+        Type one;
+        Type other;
+
+        void open(Type low, Type high) {
+            a = low;
+            b = high;
+            x = null;
+            y = null;
+            turn = 0;
+            one = null;
+            other = null;
+        }
+
+        boolean isWhole() {
+            return x == null || x.of == null || turn >= x.of.many;
+        }
+
+        Type partOfX() {
+            if (x == null) return null;
+            return turn == 0 ? x.one : x.other;
+        }
+
+        Type partOfY() {
+            if (y == null) return null;
+            return turn == 0 ? y.one : y.other;
+        }
+
+        int how() {
+            return x == null || x.of == null ? FIXED : x.of.howAt(turn);
+        }
+
+        void take(Type part) {
+            if (turn == 0) one = part;
+            else other = part;
+            turn++;
+        }
+    }
+
+    /** All TYPES that are in use, and how they lie to one another. */
     private static final class Room {
         final Type any = leaf(ANY, 0, 0);
         final Type nothing = leaf(NOTHING, 1, 0);
         final Type ownType = leaf(OWN_TYPE, 2, HAS_OWN);
         final Type firstParameter = leaf(FIRST_PARAMETER, 3, HAS_FIRST);
         final Type secondParameter = leaf(SECOND_PARAMETER, 4, HAS_SECOND);
-        private final Type[] heads = new Type[BUCKETS];
-        private int made = 5;
-        private final Pairs asked = new Pairs();
+        final ArrayList<Type> told = new ArrayList<>();
+        /** What else must stay, if it is tidied, the latest last. */
+        final ArrayList<Type> held = new ArrayList<>();
+        /** Those that are in use, by their numbers, and behind them those that may be used again. */
+        private final ArrayList<Type> kept = new ArrayList<>();
+        private int used = LEAVES;
+        private int limit = FIRST_LIMIT;
+        private Type[] heads = new Type[FIRST_LIMIT / TYPES_A_HEAD];
+        /** The first one of those that are marked, and whose inner ones are not yet. */
+        private Type marked = null;
+        /** Whether it was tidied since the last question was asked. */
+        private boolean isTidied = false;
+        /** For a pair whether one is UNDER the other. */
+        private final Pairs orders = new Pairs();
+        /** For a pair the number of its JOIN. */
         private final Pairs joins = new Pairs();
-        private final ArrayList<Type> pending = new ArrayList<>();
-        private final ArrayList<Road> roads = new ArrayList<>();
-        private int joinsLeft = 0;
+        private final ArrayList<Step> asked = new ArrayList<>();
+        private int asking = 0;
+        private final ArrayList<Step> met = new ArrayList<>();
+        private int meeting = 0;
+        private final Road way = new Road();
+
+        Room() {
+            kept.add(any);
+            kept.add(nothing);
+            kept.add(ownType);
+            kept.add(firstParameter);
+            kept.add(secondParameter);
+        }
 
         private static Type leaf(int code, int number, int marks) {
             Type made = new Type();
@@ -724,22 +835,122 @@ public final class Hornbook {
             made.marks = marks;
             made.greatest = NONE;
             made.number = number;
+            made.hash = (number + 1) * SPREAD_FIRST;
             return made;
         }
 
+        void hold(Type type) {
+            if (type != null) held.add(type);
+        }
+
+        void letGo(int from) {
+            for (int i = held.size() - 1; i >= from && i >= 0; i--) held.remove(i);
+        }
+
+        /** To be called only between two questions, when all that is still wanted is told or held. */
+        void tidy() {
+            isTidied = false;
+            if (used >= limit) giveBack();
+        }
+
+        /** What is given back while a question stands open is asked for again: the second time the room grows. */
+        private void giveBack() {
+            boolean mayGrow = limit < MOST_KEPT / 2;
+            if (!isTidied || !mayGrow) {
+                needAll(told);
+                needAll(held);
+                needSteps(asked, asking);
+                needSteps(met, meeting);
+                for (int i = 0; i < way.count; i++) need(way.at(i));
+                needInner();
+                sortOut();
+                forget();
+            }
+            if (mayGrow && (isTidied || used > limit / 2)) {
+                limit *= 2;
+                heads = new Type[limit / TYPES_A_HEAD];
+            }
+            isTidied = true;
+            link();
+        }
+
+        private void needAll(ArrayList<Type> row) {
+            for (int i = 0; i < row.size(); i++) need(row.get(i));
+        }
+
+        private void needSteps(ArrayList<Step> row, int count) {
+            for (int i = 0; i < count && i < row.size(); i++) {
+                Step at = row.get(i);
+                need(at.a);
+                need(at.b);
+                need(at.x);
+                need(at.y);
+                need(at.one);
+                need(at.other);
+            }
+        }
+
+        private void needInner() {
+            for (int n = 0; n < MOST_KEPT && marked != null; n++) {
+                Type at = marked;
+                marked = at.next;
+                need(at.one);
+                need(at.other);
+            }
+        }
+
+        /** A TYPE is marked once only; the chains of next are made anew afterwards. */
+        private void need(Type type) {
+            if (type == null || type.of == null || type.isNeeded) return;
+            type.isNeeded = true;
+            type.next = marked;
+            marked = type;
+        }
+
+        private void sortOut() {
+            int left = LEAVES;
+            for (int i = LEAVES; i < used && i < kept.size(); i++) {
+                Type at = kept.get(i);
+                if (!at.isNeeded) continue;
+                kept.set(i, kept.get(left));
+                kept.set(left, at);
+                at.number = left;
+                at.isNeeded = false;
+                at.first = null;
+                at.second = null;
+                left++;
+            }
+            used = left;
+        }
+
+        private void link() {
+            for (int i = 0; i < heads.length; i++) heads[i] = null;
+            for (int i = LEAVES; i < used && i < kept.size(); i++) {
+                Type at = kept.get(i);
+                int head = at.hash & (heads.length - 1);
+                at.next = heads[head];
+                heads[head] = at;
+            }
+        }
+
         Type make(Sort of, Type one, Type other) {
-            int first = one == null ? NONE : one.number;
-            int second = other == null ? NONE : other.number;
-            int head = ((of.number * 31 + first) * 37 + second) & (BUCKETS - 1);
+            int hash = of.number + 1;
+            if (one != null) hash = (hash ^ one.hash) * SPREAD_FIRST;
+            if (other != null) hash = (hash ^ (hash >>> 15) ^ other.hash) * SPREAD_SECOND;
+            hash ^= hash >>> 16;
+            int head = hash & (heads.length - 1);
             for (Type at = heads[head]; at != null; at = at.next) {
                 if (at.of == of && at.one == one && at.other == other) return at;
             }
-            if (made >= MOST_KEPT) return any;
-            Type added = new Type();
+            if (used >= MOST_KEPT) return any;
+            if (used >= kept.size()) kept.add(new Type());
+            Type added = kept.get(used);
             added.of = of;
             added.code = of.number;
             added.one = one;
             added.other = other;
+            added.depth = 0;
+            added.marks = 0;
             added.greatest = of.number;
             long size = 1;
             for (int i = 0; i < 2; i++) {
@@ -751,10 +962,14 @@ public final class Hornbook {
                 size += in.size;
             }
             added.size = (int) Math.min(size, (long) GREATEST_INT);
-            added.number = made;
+            added.number = used;
+            added.hash = hash;
+            added.first = null;
+            added.second = null;
+            added.isNeeded = false;
             added.next = heads[head];
             heads[head] = added;
-            made++;
+            used++;
             return added;
         }
 
@@ -812,82 +1027,136 @@ public final class Hornbook {
             return from != null && from.of != null && (from.of.above >> sort.number & 1) == 1;
         }
 
-        /** Whether a is UNDER b; also if there is neither. */
-        boolean goesUnder(Type a, Type b) {
-            if (a == b) return true;
-            if (a == null || b == null) return false;
-            asked.forget();
-            pending.clear();
-            pending.add(a);
-            pending.add(b);
-            for (int step = 0; step < MOST_STEPS; step++) {
-                int left = pending.size();
-                if (left < 2) return true;
-                Type high = pending.remove(left - 1);
-                Type low = pending.remove(left - 2);
-                if (low == high || low == nothing || high == any || asked.find(low, high) != null) continue;
-                asked.keep(low, high, low);
-                Type at = high.of == null ? null : onRoad(low, high.of);
-                if (at == null) return false;
-                boolean mayBe = mayGo(at.one, high.one, high.of.howOne) && mayGo(at.other, high.other, high.of.howOther);
-                if (!mayBe) return false;
-            }
-            return false;
-        }
-
-        /** What is not known at once is left pending. */
-        private boolean mayGo(Type a, Type b, int how) {
-            if (a == b) return true;
-            if (how == FIXED || a == null || b == null) return false;
-            pending.add(how == OUT ? a : b);
-            pending.add(how == OUT ? b : a);
-            return true;
-        }
-
-        void forgetJoins() {
+        /** What was found out may hold no longer. */
+        void forget() {
+            orders.forget();
             joins.forget();
         }
 
-        private Type joined(Type a, Type b, int level) {
-            if (level == 0) joinsLeft = MOST_STEPS;
-            joinsLeft--;
-            if (a == null || b == null || level > MOST_JOIN_LEVELS || joinsLeft < 0) return any;
-            if (goesUnder(a, b)) return b;
-            if (goesUnder(b, a)) return a;
-            Type found = joins.find(a, b);
-            if (found != null) return found;
-            found = any;
-            Road road = roadFor(level);
-            climb(a, road, 0);
-            for (int i = 0; i < road.count; i++) {
-                Type x = road.at(i);
-                Type y = x == null ? null : onRoad(b, x.of);
-                if (y == null) continue;
-                Type one = together(x.one, y.one, x.of.howOne, level);
-                Type other = together(x.other, y.other, x.of.howOther, level);
-                if (one == null && x.one != null || other == null && x.other != null) continue;
-                found = make(x.of, one, other);
-                break;
+        /**
+         * Whether a is UNDER b; also if there is neither. Each step goes down in one TYPE and along the ROAD of the
+         * other, to SORTS with smaller numbers, so none comes again while it stands open.
+         */
+        boolean goesUnder(Type a, Type b) {
+            int answer = known(a, b);
+            if (answer != NONE) return answer == YES;
+            if (meeting == 0) isTidied = false;
+            asking = 0;
+            ask(a, b);
+            for (int n = 0; n < MOST_STEPS && asking > 0 && answer != NO; n++) {
+                if (used >= limit) giveBack();
+                Step top = asked.get(asking - 1);
+                if (top.x == null) top.x = onRoad(top.a, top.b.of);
+                if (top.x == null) {
+                    answer = NO;
+                } else if (top.isWhole()) {
+                    orders.keep(top.a, top.b, YES);
+                    asking--;
+                } else {
+                    answer = askPart(top);
+                }
             }
-            joins.keep(a, b, found);
-            return found;
+            boolean isUnder = asking == 0;
+            for (; asking > 0; asking--) {
+                Step top = asked.get(asking - 1);
+                orders.keep(top.a, top.b, NO);
+            }
+            return isUnder;
         }
 
-        /** What two TYPES at one place of a SORT go together to; null if they don't. */
-        private Type together(Type x, Type y, int how, int level) {
-            if (x == y) return x;
-            if (how == FIXED || x == null || y == null) return null;
-            if (how == OUT) return joined(x, y, level + 1);
-            if (goesUnder(x, y)) return x;
-            return goesUnder(y, x) ? y : null;
+        /** Whether a is UNDER b, as far as it is known at once; NONE if it isn't. */
+        private int known(Type a, Type b) {
+            if (a == b) return YES;
+            if (a == null || b == null) return NO;
+            if (a == nothing || b == any) return YES;
+            if (b.of == null || !isAbove(a, b.of)) return NO;
+            return orders.find(a, b);
         }
 
-        /** One for each level of a JOIN, as all of these are gone along at once. */
-        private Road roadFor(int level) {
-            for (int i = roads.size(); i <= level; i++) roads.add(new Road());
-            Road road = roads.get(level);
-            road.clear();
-            return road;
+        private void ask(Type low, Type high) {
+            Step added = stepAt(asked, asking);
+            added.open(low, high);
+            added.y = high;
+            asking++;
+        }
+
+        private int askPart(Step top) {
+            Type x = top.partOfX();
+            Type y = top.partOfY();
+            int how = top.how();
+            top.turn++;
+            if (how == FIXED) return x == y ? YES : NO;
+            Type low = how == OUT ? x : y;
+            Type high = how == OUT ? y : x;
+            int answer = known(low, high);
+            if (answer == NONE) ask(low, high);
+            return answer;
+        }
+
+        private static Step stepAt(ArrayList<Step> row, int place) {
+            for (int i = row.size(); i <= place; i++) row.add(new Step());
+            return row.get(place);
+        }
+
+        Type joined(Type a, Type b) {
+            isTidied = false;
+            meeting = 0;
+            Type last = meet(a, b);
+            for (int n = 0; n < MOST_STEPS && meeting > 0; n++) {
+                Step top = met.get(meeting - 1);
+                if (last != null) top.take(last);
+                if (used >= limit) giveBack();
+                if (top.isWhole()) {
+                    last = top.x == null ? any : make(top.x.of, top.one, top.other);
+                    joins.keep(top.a, top.b, last.number);
+                    meeting--;
+                    continue;
+                }
+                Type x = top.partOfX();
+                Type y = top.partOfY();
+                switch (top.how()) {
+                    case FIXED:
+                        last = x;
+                        break;
+                    case OUT:
+                        last = meet(x, y);
+                        break;
+                    default:
+                        last = goesUnder(x, y) ? x : y;
+                }
+            }
+            meeting = 0;
+            return last == null ? any : last;
+        }
+
+        /** The JOIN, if it is known at once; null if not, and then one step more stands open for it. */
+        private Type meet(Type a, Type b) {
+            if (a == null || b == null) return any;
+            int number = joins.find(a, b);
+            if (number >= 0 && number < used && number < kept.size()) return kept.get(number);
+            Step added = stepAt(met, meeting);
+            added.open(a, b);
+            meeting++;
+            Type found = goesUnder(a, b) ? b : goesUnder(b, a) ? a : null;
+            boolean isOpen = false;
+            way.clear();
+            if (found == null) climb(a, way, 0);
+            for (int i = 0; i < way.count && !isOpen; i++) {
+                added.x = way.at(i);
+                added.y = added.x == null ? null : onRoad(b, added.x.of);
+                isOpen = added.y != null;
+                for (added.turn = 0; isOpen && !added.isWhole(); added.turn++) {
+                    Type x = added.partOfX();
+                    Type y = added.partOfY();
+                    if (added.how() == FIXED) isOpen = x == y;
+                    if (added.how() == IN) isOpen = goesUnder(x, y) || goesUnder(y, x);
+                }
+                added.turn = 0;
+            }
+            way.clear();
+            if (isOpen) return null;
+            meeting--;
+            return found == null ? any : found;
         }
 
         /** Whether a PARAMETER of the SORT stands where it must not, in what itself stands this way. */
@@ -949,10 +1218,12 @@ public final class Hornbook {
 
         /** The code of the FAULT; 0 without one. */
         int choose(Type from, int name, Type one, Type other) {
+            int before = room.held.size();
             lookAround(from, name);
             taking = 0;
             for (int i = 0; i < seen; i++) {
                 Candidate at = candidates[i];
+                room.tidy();
                 at.takes = (at.one == null) == (one == null) && (at.other == null) == (other == null);
                 if (!at.takes) continue;
                 if (at.isGeneral) settleOwn(at, one, other);
@@ -963,6 +1234,7 @@ public final class Hornbook {
             for (int i = 0; i < seen && best == null; i++) {
                 if (candidates[i].takes && isBest(candidates[i])) best = candidates[i];
             }
+            room.letGo(before);
             if (seen == 0) return NONE_SEEN;
             if (taking == 0) return NONE_TAKES;
             return best == null ? NONE_BEST : 0;
@@ -970,6 +1242,7 @@ public final class Hornbook {
 
         private void lookAround(Type from, int name) {
             seen = 0;
+            room.tidy();
             road.clear();
             room.climb(from, road, 0);
             for (int i = 0; i < methods.size() && seen < candidates.length; i++) {
@@ -987,7 +1260,15 @@ public final class Hornbook {
                 added.other = room.put(at.other, there.one, there.other, null, 0);
                 added.result = room.put(at.result, there.one, there.other, null, 0);
                 added.own = null;
+                holdAll(added);
             }
+        }
+
+        private void holdAll(Candidate at) {
+            room.hold(at.one);
+            room.hold(at.other);
+            room.hold(at.result);
+            room.hold(at.own);
         }
 
         private void settleOwn(Candidate at, Type one, Type other) {
@@ -1003,12 +1284,14 @@ public final class Hornbook {
             at.one = room.put(at.one, null, null, at.own, 0);
             at.other = room.put(at.other, null, null, at.own, 0);
             at.result = room.put(at.result, null, null, at.own, 0);
+            holdAll(at);
         }
 
         private void gatherHints(Type given, Type taken, int level) {
             if (given == null || taken == null || (given.marks & HAS_OWN) == 0 || level > MOST_LEVELS) return;
             if (given.of == null) {
                 hints.add(taken);
+                room.hold(taken);
                 return;
             }
             Type at = room.onRoad(taken, given.of);
