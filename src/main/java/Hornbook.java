@@ -51,8 +51,12 @@ public final class Hornbook {
     private static final int YES = 1;
 
     private static final int LEAVES = 5;
-    private static final int FIRST_LIMIT = 8192;
     private static final int TYPES_A_HEAD = 4;
+    /** Once so many TYPES are in use, those that nobody needs are given back. */
+    private static final int FIRST_LIMIT = 1 << 13;
+    private static final int LAST_LIMIT = 1 << 18;
+    /** If so many are needed, it is no more worth while to look for others. */
+    private static final int FULL = 230000;
     private static final int MOST_KEPT = 280000;
     private static final int FIRST_SLOTS = 256;
     private static final int MOST_SLOTS = 1 << 18;
@@ -139,7 +143,7 @@ public final class Hornbook {
         boolean isTooDeep = depthOf(first) >= DEEPEST_TOLD || depthOf(second) >= DEEPEST_TOLD;
         if (isTooDeep) throw new IllegalArgumentException("too deep");
         needSpaceForType();
-        room.tidy();
+        makeSpace();
         types.add(room.make(of, first, second));
         return types.size() - 1;
     }
@@ -234,17 +238,20 @@ public final class Hornbook {
     public boolean isUnder(int a, int b) throws IndexOutOfBoundsException {
         needType(a);
         needType(b);
+        makeSpace();
         return room.goesUnder(types.get(a), types.get(b));
     }
 
     public int road(int type, int place, int k) throws IndexOutOfBoundsException {
         needType(type);
+        makeSpace();
         return lineAt(roadAt(types.get(type), place), k);
     }
 
     public int join(int a, int b, int k) throws IndexOutOfBoundsException {
         needType(a);
         needType(b);
+        makeSpace();
         return lineAt(room.joined(types.get(a), types.get(b)), k);
     }
 
@@ -302,11 +309,13 @@ public final class Hornbook {
     }
 
     public int flaws() {
+        makeSpace();
         noteFlaws();
         return noted.count;
     }
 
     public int ofFlaw(int flaw, int what) throws IndexOutOfBoundsException, IllegalArgumentException {
+        makeSpace();
         noteFlaws();
         if (flaw < 0 || flaw >= noted.count) throw new IndexOutOfBoundsException("no such FLAW");
         if (what < 0 || what > 2) throw new IllegalArgumentException("nothing to tell of a FLAW");
@@ -325,6 +334,7 @@ public final class Hornbook {
         needClosed(type);
         if (one != NONE) needClosed(one);
         if (other != NONE) needClosed(other);
+        makeSpace();
         int fault = chooser.choose(types.get(type), name, typeOrNone(one), typeOrNone(other));
         if (fault != 0 || chooser.best == null) return -fault;
         return chooser.best.method;
@@ -531,6 +541,14 @@ public final class Hornbook {
             }
         }
         return at == null || left < 0 ? NO_PLACE : at.code;
+    }
+
+    /** The TYPES of EXPRESSIONS, which can be very large, go before anything that was told suffers. */
+    private void makeSpace() {
+        room.tidy();
+        if (!room.isFull()) return;
+        unjudge();
+        room.tidy();
     }
 
     private void unjudge() {
@@ -850,12 +868,17 @@ public final class Hornbook {
         /** To be called only between two questions, when all that is still wanted is told or held. */
         void tidy() {
             isTidied = false;
+            limit = Math.min(limit, LAST_LIMIT);
             if (used >= limit) giveBack();
+        }
+
+        boolean isFull() {
+            return limit > LAST_LIMIT;
         }
 
         /** What is given back while a question stands open is asked for again: the second time the room grows. */
         private void giveBack() {
-            boolean mayGrow = limit < MOST_KEPT / 2;
+            boolean mayGrow = limit < LAST_LIMIT;
             if (!isTidied || !mayGrow) {
                 needAll(told);
                 needAll(held);
@@ -870,6 +893,7 @@ public final class Hornbook {
                 limit *= 2;
                 heads = new Type[limit / TYPES_A_HEAD];
             }
+            if (!mayGrow && used > FULL) limit = GREATEST_INT;
             isTidied = true;
             link();
         }

@@ -5,7 +5,7 @@ import java.util.List;
  * The document, written a second time and as plainly as it goes: TYPES are trees that are compared whole, nothing
  * is kept between two calls, and everything is found anew from what was told. PlainTest compares the two.
  */
-final class PlainHornbook {
+class PlainHornbook {
     /** A TYPE; its code is as in a LINE. */
     record T(int code, List<T> in) {
         int depth() {

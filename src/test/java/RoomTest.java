@@ -1,0 +1,283 @@
+import java.util.ArrayList;
+import java.util.HashMap;
+import java.util.List;
+import java.util.Map;
+
+/**
+ * Runs that ask for very much: many TYPES, long ways, JOINS far too large to be written down. The SORTS and TYPES of
+ * FORESTS were found by a search for such; what is due comes from PlainHornbook, with a memory for what is UNDER.
+ */
+public final class RoomTest {
+    private static final Due due = new Due();
+    private static final int[] PLACES = {0, 1, 2, 3, 4, 5, 6, 7, 8, 9, 13, 17, 29, 57, 100, 1000, 9999, 100000, 1000000,
+        123456789, 2000000000, Integer.MAX_VALUE - 1, Integer.MAX_VALUE, -1};
+
+    /** s a SORT, p a PARAMETER, t a TYPE, u the PARENT of a SORT. */
+    private static final String[] FORESTS = {
+        "s2,2,2 s2,1,0 s2,0,2 s2,0,1 s2,1,1 s1,0,1 s2,0,1 s2,1,2 s1,0,1 s0,0,0 s0,0,0 s0,0,1 p0 p1 t0,3,4"
+            + " t10,-1,-1 t11,-1,-1 t8,6,-1 t6,3,4 t8,7,-1 t10,-1,-1 t5,9,-1 t5,3,-1 t11,-1,-1 t5,13,-1 t9,-1,-1"
+            + " t5,8,-1 t5,10,-1 t2,3,4 t3,3,3 t3,3,1 t7,3,1 t8,1,-1 t7,6,0 t2,12,15 t11,-1,-1 t2,21,20 t11,-1,-1"
+            + " t8,24,-1 t2,1,3 t9,-1,-1 t5,24,-1 t10,-1,-1 t2,7,10 t2,19,30 t5,21,-1 t5,30,-1 t2,17,32 t6,34,5"
+            + " t8,16,-1 t3,3,22 t9,-1,-1 t4,35,3 t2,0,1 t2,36,37 t2,18,10 t10,-1,-1 t7,1,30 t9,-1,-1 t2,38,20"
+            + " t0,5,5 t8,0,-1 t0,8,34 t11,-1,-1 t9,-1,-1 t9,-1,-1 t5,22,-1 t1,6,1 t7,38,0 u2,51 u3,35 u5,27 u6,45"
+            + " u7,25 u8,41 u9,23 u10,40 u11,38",
+        "s2,1,1 s2,2,0 s2,0,1 s1,2,2 s2,0,2 s2,0,0 s2,1,2 s0,1,1 s2,0,1 s2,0,0 s2,0,1 s0,2,1 p0 p1 t10,1,1"
+            + " t1,3,4 t10,5,0 t4,4,3 t2,4,4 t2,4,3 t5,3,4 t9,3,0 t5,1,4 t5,1,3 t5,14,11 t0,3,4 t11,-1,-1 t7,-1,-1"
+            + " t10,0,18 t2,3,4 t6,4,0 t5,3,6 t11,-1,-1 t4,8,9 t11,-1,-1 t5,3,4 t1,17,17 t10,19,17 t10,11,3 t8,3,16"
+            + " t6,17,4 t0,21,4 t4,0,0 t3,1,-1 t3,16,-1 t0,20,10 t9,34,21 t3,4,-1 t0,4,29 t0,6,4 t4,5,11 t0,16,16"
+            + " t0,0,32 t7,-1,-1 t1,35,20 t11,-1,-1 t4,37,11 t3,34,-1 t7,-1,-1 t4,22,15 t9,11,38 t8,28,7 t0,0,0"
+            + " t7,-1,-1 t9,3,45 t6,3,47 t10,0,40 t6,0,4 t8,3,22 u1,42 u1,42 u2,40 u4,36 u5,24 u6,50 u8,10 u9,11"
+            + " u9,50 u10,47 u11,7",
+        "s2,0,0 s1,2,2 s1,2,0 s1,2,2 s0,1,2 s1,0,0 s1,2,0 s1,1,0 s0,1,0 s1,2,1 s0,2,2 s0,1,2 p0 p1 t2,3,-1"
+            + " t6,3,-1 t7,6,-1 t11,-1,-1 t2,7,-1 t8,-1,-1 t9,10,-1 t4,-1,-1 t6,12,-1 t3,3,-1 t2,5,-1 t9,8,-1"
+            + " t11,-1,-1 t3,1,-1 t10,-1,-1 t6,6,-1 t10,-1,-1 t7,11,-1 t7,13,-1 t5,3,-1 t7,3,-1 t7,16,-1 t3,18,-1"
+            + " t4,-1,-1 t9,1,-1 t9,19,-1 t2,26,-1 t11,-1,-1 t2,14,-1 t5,3,-1 t4,-1,-1 t1,12,-1 t7,1,-1 t5,24,-1"
+            + " t7,16,-1 t10,-1,-1 t1,3,-1 t9,8,-1 t11,-1,-1 t4,-1,-1 t5,7,-1 t2,27,-1 t10,-1,-1 t2,22,-1 t7,14,-1"
+            + " t2,24,-1 t2,23,-1 t1,31,-1 t1,3,-1 t1,41,-1 t7,30,-1 t5,1,-1 t11,-1,-1 t2,38,-1 t2,55,-1 u2,54 u3,15"
+            + " u4,46 u5,33 u6,58 u6,38 u7,50 u8,51 u9,9 u10,48 u11,59 u11,51",
+        "s1,1,1 s2,0,2 s1,0,0 s1,2,0 s1,2,2 s1,1,2 s1,0,0 s1,0,2 s1,2,2 s2,2,1 s2,2,0 s0,2,1 p0 p1 t2,4,-1"
+            + " t1,3,1 t8,4,-1 t10,1,1 t8,7,-1 t9,0,0 t2,3,-1 t5,3,-1 t1,5,0 t3,3,-1 t7,3,-1 t4,11,-1 t4,15,-1"
+            + " t11,-1,-1 t0,17,-1 t4,12,-1 t6,3,-1 t10,18,14 t4,14,-1 t9,3,4 t1,24,0 t0,3,-1 t10,24,8 t5,9,-1"
+            + " t2,11,-1 t0,6,-1 t0,20,-1 t4,9,-1 t8,24,-1 t0,26,-1 t4,33,-1 t11,-1,-1 t4,21,-1 t0,11,-1 t10,1,18"
+            + " t7,1,-1 t4,20,-1 t5,3,-1 t9,16,29 t9,34,10 t11,-1,-1 t4,4,-1 t8,8,-1 t9,3,3 t0,23,-1 t4,7,-1"
+            + " t4,47,-1 t7,3,-1 t8,39,-1 t10,3,39 t5,44,-1 t4,53,-1 t0,56,-1 t4,20,-1 t3,3,-1 u1,34 u1,34 u2,30"
+            + " u3,29 u4,38 u5,49 u6,31 u7,37 u8,19 u9,32 u10,35 u11,51",
+        "s1,2,2 s1,1,2 s1,2,1 s2,2,2 s1,0,0 s1,1,0 s1,0,2 s1,2,1 s1,0,2 s0,1,0 s1,2,0 s0,0,2 p0 p1 t7,3,-1"
+            + " t1,5,-1 t1,3,-1 t1,5,-1 t11,-1,-1 t5,4,-1 t8,9,-1 t6,3,-1 t9,-1,-1 t11,-1,-1 t0,4,-1 t4,3,-1 t4,6,-1"
+            + " t5,3,-1 t9,-1,-1 t6,12,-1 t10,11,-1 t7,0,-1 t7,5,-1 t8,1,-1 t7,3,-1 t6,4,-1 t6,5,-1 t6,7,-1 t7,24,-1"
+            + " t8,13,-1 t1,16,-1 t3,5,9 t6,26,-1 t10,30,-1 t5,21,-1 t6,21,-1 t3,3,0 t6,34,-1 t6,29,-1 t0,36,-1"
+            + " t6,0,-1 t6,23,-1 t2,36,-1 t4,1,-1 t2,20,-1 t9,-1,-1 t9,-1,-1 t1,18,-1 t8,1,-1 t4,3,-1 t9,-1,-1"
+            + " t4,3,-1 t1,37,-1 t9,-1,-1 t11,-1,-1 t2,6,-1 t1,27,-1 t2,7,-1 t11,-1,-1 u2,7 u3,58 u4,53 u5,31 u6,48"
+            + " u7,45 u8,42 u9,39 u10,57 u11,38"
+    };
+
+    /** PlainHornbook, with a memory, so that large questions can be answered. */
+    private static final class Remembering extends PlainHornbook {
+        private final Map<List<T>, Boolean> orders = new HashMap<>();
+        private final Map<List<T>, Long> sizes = new HashMap<>();
+        private final Map<List<T>, Integer> depths = new HashMap<>();
+
+        @Override
+        int parent(int sort, int type) {
+            orders.clear();
+            return super.parent(sort, type);
+        }
+
+        @Override
+        boolean under(T a, T b) {
+            List<T> pair = List.of(a, b);
+            Boolean known = orders.get(pair);
+            if (known == null) {
+                known = super.under(a, b);
+                orders.put(pair, known);
+            }
+            return known;
+        }
+
+        /** The JOIN, if it is one of the two or ANY. */
+        private T simpleJoin(T a, T b) {
+            return under(a, b) ? b : under(b, a) ? a : meeting(a, b).isEmpty() ? ANY : null;
+        }
+
+        /** Where the ROADS of both come together. */
+        private List<T> meeting(T a, T b) {
+            for (T x : road(a)) {
+                T y = find(road(b), x.code());
+                boolean isThis = y != null;
+                for (int i = 0; isThis && i < x.in().size(); i++) {
+                    T p = x.in().get(i);
+                    T q = y.in().get(i);
+                    int how = hows.get(x.code())[i];
+                    isThis = how == 0 ? p.equals(q) : how == 1 || under(p, q) || under(q, p);
+                }
+                if (isThis) return List.of(x, y);
+            }
+            return List.of();
+        }
+
+        /** The part of a JOIN that is no JOIN; null for another one. */
+        private T part(T x, T y, int place) {
+            T p = x.in().get(place);
+            T q = y.in().get(place);
+            int how = hows.get(x.code())[place];
+            return how == 1 ? simpleJoin(p, q) : how == 0 || under(p, q) ? p : q;
+        }
+
+        private static long sizeOf(T t) {
+            long size = 1;
+            for (T in : t.in()) size += sizeOf(in);
+            return size;
+        }
+
+        long joinSize(T a, T b) {
+            T simple = simpleJoin(a, b);
+            if (simple != null) return sizeOf(simple);
+            Long known = sizes.get(List.of(a, b));
+            if (known != null) return known;
+            List<T> at = meeting(a, b);
+            long size = 1;
+            for (int i = 0; i < at.get(0).in().size(); i++) size += partSize(at, i);
+            size = Math.min(size, Long.MAX_VALUE / 4);
+            sizes.put(List.of(a, b), size);
+            return size;
+        }
+
+        private long partSize(List<T> at, int place) {
+            T part = part(at.get(0), at.get(1), place);
+            return part != null ? sizeOf(part) : joinSize(at.get(0).in().get(place), at.get(1).in().get(place));
+        }
+
+        int joinAt(T a, T b, long k) {
+            T simple = simpleJoin(a, b);
+            if (simple != null) return k > 10000 ? -9 : at(simple, (int) k);
+            List<T> at = meeting(a, b);
+            if (k <= 0) return k < 0 ? -9 : at.get(0).code();
+            long left = k - 1;
+            for (int i = 0; i < at.get(0).in().size(); i++) {
+                long size = partSize(at, i);
+                T part = part(at.get(0), at.get(1), i);
+                if (left < size && part != null) return at(part, (int) left);
+                if (left < size) return joinAt(at.get(0).in().get(i), at.get(1).in().get(i), left);
+                left -= size;
+            }
+            return -9;
+        }
+
+        int joinDepth(T a, T b) {
+            T simple = simpleJoin(a, b);
+            if (simple != null) return simple.depth();
+            Integer known = depths.get(List.of(a, b));
+            if (known != null) return known;
+            List<T> at = meeting(a, b);
+            int depth = 0;
+            for (int i = 0; i < at.get(0).in().size(); i++) {
+                T part = part(at.get(0), at.get(1), i);
+                int inner = part != null ? part.depth() : joinDepth(at.get(0).in().get(i), at.get(1).in().get(i));
+                depth = Math.max(depth, inner + 1);
+            }
+            depths.put(List.of(a, b), depth);
+            return depth;
+        }
+    }
+
+    public static void main(String[] args) {
+        long most = 0;
+        int deepest = 0;
+        for (int i = 0; i < FORESTS.length; i++) {
+            Hornbook x = new Hornbook();
+            Remembering y = new Remembering();
+            tell(x, y, FORESTS[i]);
+            orders(i, x, y);
+            for (int a = 0; a < y.types.size(); a++) {
+                for (int b = 0; b < y.types.size(); b++) {
+                    most = Math.max(most, y.joinSize(y.types.get(a), y.types.get(b)));
+                    deepest = Math.max(deepest, y.joinDepth(y.types.get(a), y.types.get(b)));
+                }
+            }
+            joins(i, x, y);
+            joinedExpressions(i, y);
+            choices(i, y);
+        }
+        System.out.println("the largest JOIN " + most + ", the deepest one " + deepest);
+        due.is("there are JOINS that are too large for an int", most > Integer.MAX_VALUE, true);
+        due.is("there are JOINS more than 120 deep", deepest > 120, true);
+        due.end();
+    }
+
+    private static void tell(Hornbook x, PlainHornbook y, String forest) {
+        for (String word : forest.split(" ")) {
+            String[] parts = word.substring(1).split(",");
+            int[] n = new int[3];
+            for (int i = 0; i < parts.length; i++) n[i] = Integer.parseInt(parts[i]);
+            int got = 0;
+            int is = 0;
+            switch (word.charAt(0)) {
+                case 's' -> { got = x.sort(n[0], n[1], n[2]); is = y.sort(n[0], n[1], n[2]); }
+                case 'p' -> { got = x.parameter(n[0]); is = y.parameter(n[0]); }
+                case 't' -> { got = x.type(n[0], n[1], n[2]); is = y.type(n[0], n[1], n[2]); }
+                default -> { got = x.parent(n[0], n[1]); is = y.parent(n[0], n[1]); }
+            }
+            due.is(word, got, is);
+        }
+    }
+
+    private static void orders(int forest, Hornbook x, Remembering y) {
+        due.part("promise 14 in forest " + forest);
+        for (int a = 0; a < y.types.size(); a++) {
+            for (int b = 0; b < y.types.size(); b++) {
+                due.is("isUnder(" + a + ", " + b + ")", x.isUnder(a, b), y.isUnder(a, b));
+            }
+        }
+    }
+
+    private static void joins(int forest, Hornbook x, Remembering y) {
+        due.part("promise 16 in forest " + forest);
+        for (int a = 0; a < y.types.size(); a++) {
+            for (int b = 0; b < y.types.size(); b++) {
+                for (int k : PLACES) {
+                    if ((a * 7 + b + k) % 4 != 0) continue;
+                    int is = y.joinAt(y.types.get(a), y.types.get(b), k);
+                    due.is("join(" + a + ", " + b + ", " + k + ")", x.join(a, b, k), is);
+                }
+            }
+        }
+    }
+
+    /** EITHERS of TYPES that are told, and of all that came before. */
+    private static void joinedExpressions(int forest, Remembering y) {
+        due.part("promises 8, 17 and 31 in forest " + forest);
+        Hornbook x = new Hornbook();
+        tell(x, new PlainHornbook(), FORESTS[forest]);
+        List<Integer> closed = closedOf(y);
+        long sum = 0;
+        for (int i = 0; i < 13; i++) {
+            int a = closed.get(i * 7 % closed.size());
+            int b = closed.get((i * i + 5 * i + 3) % closed.size());
+            PlainHornbook.T s = y.types.get(a);
+            PlainHornbook.T t = y.types.get(b);
+            x.value(a);
+            x.value(b);
+            int e = x.either(x.many(3) - 2, x.many(3) - 1);
+            sum += s.depth() + t.depth() + y.joinDepth(s, t);
+            for (int k : PLACES) due.is("line(" + e + ", " + k + ")", x.line(e, k), y.joinAt(s, t, k));
+            due.is("meanDepth()", x.meanDepth(), (double) sum / x.many(3));
+        }
+    }
+
+    private static List<Integer> closedOf(PlainHornbook y) {
+        List<Integer> closed = new ArrayList<>();
+        for (int t = 0; t < y.types.size(); t++) if (y.types.get(t).isClosed()) closed.add(t);
+        return closed;
+    }
+
+    /** As many questions as an object may be asked, and the TYPES are still what they are. */
+    private static void choices(int forest, Remembering y) {
+        due.part("promise 27 in forest " + forest);
+        Hornbook x = new Hornbook();
+        tell(x, new PlainHornbook(), FORESTS[forest]);
+        List<Integer> closed = closedOf(y);
+        for (int m = 0; m < 30; m++) {
+            int sort = 11 - m % 12;
+            int one = fitting(y, sort, m * 11 + 5);
+            int other = m % 3 == 0 ? -1 : fitting(y, sort, m * 17 + 2);
+            due.is("method", x.method(sort, m % 2, one, other, one, true), y.method(sort, m % 2, one, other, one, true));
+        }
+        for (int i = 0; i < 400; i++) {
+            int t = closed.get((i * 5 + 1) % closed.size());
+            int one = closed.get((i * 3 + i / 7) % closed.size());
+            int other = i % 3 == 0 ? -1 : closed.get((i * 13 + i / 5) % closed.size());
+            due.is("wouldChoose(" + t + ", " + i % 2 + ", " + one + ", " + other + ")", x.wouldChoose(t, i % 2, one, other),
+                    y.wouldChoose(t, i % 2, one, other));
+        }
+        due.is("digest()", x.digest(), y.digest());
+    }
+
+    private static int fitting(Remembering y, int sort, int from) {
+        for (int i = 0; i < y.types.size(); i++) {
+            PlainHornbook.T t = y.types.get((from + i) % y.types.size());
+            int many = y.hows.get(sort).length;
+            if ((many > 0 || !t.has(-4)) && (many > 1 || !t.has(-5))) return (from + i) % y.types.size();
+        }
+        return 0;
+    }
+}
