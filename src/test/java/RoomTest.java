@@ -2,6 +2,7 @@ import java.util.ArrayList;
 import java.util.HashMap;
 import java.util.List;
 import java.util.Map;
+import java.util.function.IntBinaryOperator;
 
 /**
  * Runs that ask for very much: many TYPES, long ways, JOINS far too large to be written down. The SORTS and TYPES of
@@ -9,6 +10,7 @@ import java.util.Map;
  */
 public final class RoomTest {
     private static final Due due = new Due();
+    private static long state;
     private static final int[] PLACES = {0, 1, 2, 3, 4, 5, 6, 7, 8, 9, 13, 17, 29, 57, 100, 1000, 9999, 100000, 1000000,
         123456789, 2000000000, Integer.MAX_VALUE - 1, Integer.MAX_VALUE, -1};
 
@@ -160,28 +162,69 @@ public final class RoomTest {
         }
     }
 
+    /** With a number only so many small forests, for a room that is too small for the others. */
     public static void main(String[] args) {
-        long most = 0;
-        int deepest = 0;
-        for (int i = 0; i < FORESTS.length; i++) {
+        int small = args.length > 0 ? Integer.parseInt(args[0]) : 300;
+        for (int i = 0; i < small; i++) {
             Hornbook x = new Hornbook();
             Remembering y = new Remembering();
-            tell(x, y, FORESTS[i]);
-            orders(i, x, y);
-            for (int a = 0; a < y.types.size(); a++) {
-                for (int b = 0; b < y.types.size(); b++) {
-                    most = Math.max(most, y.joinSize(y.types.get(a), y.types.get(b)));
-                    deepest = Math.max(deepest, y.joinDepth(y.types.get(a), y.types.get(b)));
-                }
-            }
-            joins(i, x, y);
-            joinedExpressions(i, y);
-            choices(i, y);
+            tell(x, y, smallForest(i));
+            orders("small forest " + i, x, y);
+            joins("small forest " + i, x, y);
+            choices("small forest " + i, smallForest(i), y);
         }
-        System.out.println("the largest JOIN " + most + ", the deepest one " + deepest);
-        due.is("there are JOINS that are too large for an int", most > Integer.MAX_VALUE, true);
-        due.is("there are JOINS more than 120 deep", deepest > 120, true);
+        for (int i = 0; i < FORESTS.length && args.length == 0; i++) large(i);
         due.end();
+    }
+
+    private static void large(int forest) {
+        Hornbook x = new Hornbook();
+        Remembering y = new Remembering();
+        tell(x, y, FORESTS[forest]);
+        orders("forest " + forest, x, y);
+        joins("forest " + forest, x, y);
+        joinedExpressions(forest, y);
+        choices("forest " + forest, FORESTS[forest], y);
+        long most = 0;
+        int deepest = 0;
+        for (PlainHornbook.T a : y.types) {
+            for (PlainHornbook.T b : y.types) {
+                most = Math.max(most, y.joinSize(a, b));
+                deepest = Math.max(deepest, y.joinDepth(a, b));
+            }
+        }
+        System.out.println("forest " + forest + ": the largest JOIN " + most + ", the deepest one " + deepest);
+        if (forest == 1) due.is("there is a JOIN that is too large for an int", most > Integer.MAX_VALUE, true);
+        if (forest == 3) due.is("there is a JOIN more than 200 deep", deepest > 200, true);
+    }
+
+    private static int next(int bound) {
+        state = state * 6364136223846793005L + 1442695040888963407L;
+        return (int) ((state >>> 33) % bound);
+    }
+
+    /** SORTS that go out and in, and TYPES of them, by a fixed row of numbers. */
+    private static String smallForest(int number) {
+        state = number;
+        StringBuilder forest = new StringBuilder("p0 p1");
+        int[] many = new int[7];
+        int[] depths = new int[30];
+        for (int i = 0; i < 7; i++) {
+            many[i] = next(5) == 0 ? next(3) : 2;
+            forest.append(" s").append(many[i]).append(',').append((next(5) + 1) / 2).append(',').append((next(5) + 1) / 2);
+        }
+        for (int i = 5; i < 30; i++) {
+            int sort = next(7);
+            int one = many[sort] > 0 ? next(i) : -1;
+            int other = many[sort] > 1 ? next(i) : -1;
+            depths[i] = 1 + Math.max(one < 0 ? -1 : depths[one], other < 0 ? -1 : depths[other]);
+            boolean isGood = depths[i] <= 4;
+            if (!isGood) depths[i] = 0;
+            if (isGood) forest.append(" t").append(sort).append(',').append(one).append(',').append(other);
+            else forest.append(" p").append(i % 2);
+        }
+        for (int i = 0; i < 24; i++) forest.append(" u").append(6 - i / 4).append(',').append(5 + next(25));
+        return forest.toString();
     }
 
     private static void tell(Hornbook x, PlainHornbook y, String forest) {
@@ -195,14 +238,25 @@ public final class RoomTest {
                 case 's' -> { got = x.sort(n[0], n[1], n[2]); is = y.sort(n[0], n[1], n[2]); }
                 case 'p' -> { got = x.parameter(n[0]); is = y.parameter(n[0]); }
                 case 't' -> { got = x.type(n[0], n[1], n[2]); is = y.type(n[0], n[1], n[2]); }
-                default -> { got = x.parent(n[0], n[1]); is = y.parent(n[0], n[1]); }
+                default -> { got = parent(x::parent, n); is = parent(y::parent, n); }
             }
             due.is(word, got, is);
         }
     }
 
-    private static void orders(int forest, Hornbook x, Remembering y) {
-        due.part("promise 14 in forest " + forest);
+    /** Not each TYPE can be a PARENT. */
+    private static int parent(IntBinaryOperator call, int[] n) {
+        try {
+            return call.applyAsInt(n[0], n[1]);
+        } catch (IllegalArgumentException e) {
+            return -1;
+        } catch (IllegalStateException e) {
+            return -2;
+        }
+    }
+
+    private static void orders(String forest, Hornbook x, Remembering y) {
+        due.part("promise 14 in " + forest);
         for (int a = 0; a < y.types.size(); a++) {
             for (int b = 0; b < y.types.size(); b++) {
                 due.is("isUnder(" + a + ", " + b + ")", x.isUnder(a, b), y.isUnder(a, b));
@@ -210,8 +264,8 @@ public final class RoomTest {
         }
     }
 
-    private static void joins(int forest, Hornbook x, Remembering y) {
-        due.part("promise 16 in forest " + forest);
+    private static void joins(String forest, Hornbook x, Remembering y) {
+        due.part("promise 16 in " + forest);
         for (int a = 0; a < y.types.size(); a++) {
             for (int b = 0; b < y.types.size(); b++) {
                 for (int k : PLACES) {
@@ -250,24 +304,42 @@ public final class RoomTest {
         return closed;
     }
 
-    /** As many questions as an object may be asked, and the TYPES are still what they are. */
-    private static void choices(int forest, Remembering y) {
-        due.part("promise 27 in forest " + forest);
+    /** Many questions, and the TYPES are still what they are; then CALLS, all judged at once. */
+    private static void choices(String name, String forest, Remembering y) {
+        due.part("promises 17, 20, 21 and 27 in " + name);
         Hornbook x = new Hornbook();
-        tell(x, new PlainHornbook(), FORESTS[forest]);
+        tell(x, new PlainHornbook(), forest);
         List<Integer> closed = closedOf(y);
         for (int m = 0; m < 30; m++) {
-            int sort = 11 - m % 12;
-            int one = fitting(y, sort, m * 11 + 5);
-            int other = m % 3 == 0 ? -1 : fitting(y, sort, m * 17 + 2);
-            due.is("method", x.method(sort, m % 2, one, other, one, true), y.method(sort, m % 2, one, other, one, true));
+            int sort = (m * 5 + 1) % y.hows.size();
+            int one = m % 7 == 0 ? 2 : fitting(y, sort, m * 11 + 5);
+            int other = m % 3 == 0 ? -1 : m % 5 == 0 ? 2 : fitting(y, sort, m * 17 + 2);
+            int result = m % 4 == 0 ? 2 : fitting(y, sort, m * 13 + 1);
+            due.is("method", x.method(sort, m % 2, one, other, result, true), y.method(sort, m % 2, one, other, result, true));
         }
-        for (int i = 0; i < 400; i++) {
+        for (int i = 0; i < 300; i++) {
             int t = closed.get((i * 5 + 1) % closed.size());
             int one = closed.get((i * 3 + i / 7) % closed.size());
             int other = i % 3 == 0 ? -1 : closed.get((i * 13 + i / 5) % closed.size());
             due.is("wouldChoose(" + t + ", " + i % 2 + ", " + one + ", " + other + ")", x.wouldChoose(t, i % 2, one, other),
                     y.wouldChoose(t, i % 2, one, other));
+        }
+        for (int i = 0; i < 40; i++) {
+            int a = next(i + 1) * 2 / 3;
+            int b = next(i + 1) * 2 / 3;
+            int c = i % 3 == 0 ? -1 : next(i + 1) * 2 / 3;
+            int t = closed.get(i * 7 % closed.size());
+            if (i < 20) due.is("value", x.value(t), y.value(t));
+            else due.is("call", x.call(a, i % 2, b, c), y.call(a, i % 2, b, c));
+        }
+        List<PlainHornbook.Judged> all = y.judge(-1);
+        for (int i = 0; i < 40; i++) {
+            PlainHornbook.Judged is = all.get(i);
+            due.is("chosen(" + i + ")", x.chosen(i), is.chosen);
+            for (int k : PLACES) {
+                due.is("line(" + i + ", " + k + ")", x.line(i, k), PlainHornbook.at(is.type, k));
+                due.is("own(" + i + ", " + k + ")", x.own(i, k), PlainHornbook.at(is.own, k));
+            }
         }
         due.is("digest()", x.digest(), y.digest());
     }
