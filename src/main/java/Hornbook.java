@@ -59,8 +59,9 @@ public final class Hornbook {
     private static final int FULL = 230000;
     private static final int MOST_KEPT = 280000;
     private static final int FIRST_SLOTS = 256;
-    private static final int MOST_SLOTS = 1 << 18;
-    private static final int MOST_STEPS = 1000000000;
+    private static final int MOST_SLOTS = 1 << 19;
+    /** Far above what a question needs, as each pair is remembered. */
+    private static final int MOST_STEPS = 1 << 25;
 
     /** How many bits the number of a TYPE has at most. */
     private static final int NUMBER_BITS = 20;
@@ -734,7 +735,7 @@ public final class Hornbook {
         }
 
         void keep(Type a, Type b, int number) {
-            if (count * 2 >= slots.length) makeSpace();
+            if (count * 4 >= slots.length * 3) makeSpace();
             long key = ((long) a.number << NUMBER_BITS) | b.number;
             add((key << NUMBER_BITS | number) << 1 | 1);
         }
@@ -1083,7 +1084,7 @@ public final class Hornbook {
             boolean isUnder = asking == 0;
             for (; asking > 0; asking--) {
                 Step top = asked.get(asking - 1);
-                orders.keep(top.a, top.b, NO);
+                if (answer == NO) orders.keep(top.a, top.b, NO);
             }
             return isUnder;
         }

@@ -1,3 +1,4 @@
+import java.lang.reflect.Field;
 import java.util.ArrayList;
 import java.util.HashMap;
 import java.util.List;
@@ -11,6 +12,8 @@ import java.util.function.IntBinaryOperator;
 public final class RoomTest {
     private static final Due due = new Due();
     private static long state;
+    private static int mostKept = 0;
+    private static int mostHeld = 0;
     private static final int[] PLACES = {0, 1, 2, 3, 4, 5, 6, 7, 8, 9, 13, 17, 29, 57, 100, 1000, 9999, 100000, 1000000,
         123456789, 2000000000, Integer.MAX_VALUE - 1, Integer.MAX_VALUE, -1};
 
@@ -162,7 +165,7 @@ public final class RoomTest {
         }
     }
 
-    /** With a number only so many small forests, for a room that is too small for the others. */
+    /** With a number only so many small forests, for a room that is too small for the others; then how many may be kept. */
     public static void main(String[] args) {
         int small = args.length > 0 ? Integer.parseInt(args[0]) : 300;
         for (int i = 0; i < small; i++) {
@@ -171,9 +174,13 @@ public final class RoomTest {
             tell(x, y, smallForest(i));
             orders("small forest " + i, x, y);
             joins("small forest " + i, x, y);
-            choices("small forest " + i, smallForest(i), y);
+            choices("small forest " + i, smallForest(i), true, y);
         }
         for (int i = 0; i < FORESTS.length && args.length == 0; i++) large(i);
+        System.out.println("at most " + mostKept + " TYPES are kept, " + mostHeld + " held");
+        due.part("what is no more needed is given back");
+        if (args.length > 1) due.is("too many are kept", mostKept > Integer.parseInt(args[1]), false);
+        due.is("more than two are held for an EXPRESSION", mostHeld > 80, false);
         due.end();
     }
 
@@ -184,7 +191,7 @@ public final class RoomTest {
         orders("forest " + forest, x, y);
         joins("forest " + forest, x, y);
         joinedExpressions(forest, y);
-        choices("forest " + forest, FORESTS[forest], y);
+        choices("forest " + forest, FORESTS[forest], false, y);
         long most = 0;
         int deepest = 0;
         for (PlainHornbook.T a : y.types) {
@@ -304,8 +311,8 @@ public final class RoomTest {
         return closed;
     }
 
-    /** Many questions, and the TYPES are still what they are; then CALLS, all judged at once. */
-    private static void choices(String name, String forest, Remembering y) {
+    /** Many questions, and the TYPES are still what they are; then EXPRESSIONS, all judged at once. */
+    private static void choices(String name, String forest, boolean isSmall, Remembering y) {
         due.part("promises 17, 20, 21 and 27 in " + name);
         Hornbook x = new Hornbook();
         tell(x, new PlainHornbook(), forest);
@@ -330,8 +337,11 @@ public final class RoomTest {
             int c = i % 3 == 0 ? -1 : next(i + 1) * 2 / 3;
             int t = closed.get(i * 7 % closed.size());
             if (i < 20) due.is("value", x.value(t), y.value(t));
+            else if (isSmall && i % 5 == 1) due.is("either", x.either(a, b), y.either(a, b));
+            else if (isSmall && i % 5 == 3) due.is("as", x.as(a, t), y.as(a, t));
             else due.is("call", x.call(a, i % 2, b, c), y.call(a, i % 2, b, c));
         }
+        // without a JOIN in a large forest, as PlainHornbook would have to write it down
         List<PlainHornbook.Judged> all = y.judge(-1);
         for (int i = 0; i < 40; i++) {
             PlainHornbook.Judged is = all.get(i);
@@ -342,6 +352,24 @@ public final class RoomTest {
             }
         }
         due.is("digest()", x.digest(), y.digest());
+        countKept(x);
+    }
+
+    /** How many objects there are for TYPES, those that may be used again counted, and how many are not given back. */
+    private static void countKept(Hornbook x) {
+        try {
+            Object room = read(x, "room");
+            mostKept = Math.max(mostKept, ((List<?>) read(room, "kept")).size());
+            mostHeld = Math.max(mostHeld, ((List<?>) read(room, "held")).size());
+        } catch (ReflectiveOperationException e) {
+            throw new IllegalStateException(e);
+        }
+    }
+
+    private static Object read(Object from, String name) throws ReflectiveOperationException {
+        Field field = from.getClass().getDeclaredField(name);
+        field.setAccessible(true);
+        return field.get(from);
     }
 
     private static int fitting(Remembering y, int sort, int from) {
