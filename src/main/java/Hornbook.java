@@ -18,16 +18,15 @@ public final class Hornbook {
     private static final int OUT = 1;
     private static final int IN = 2;
 
+    /** ANY in a LINE; NOTHING, the OWN TYPE and the PARAMETERS follow downwards. */
     private static final int ANY = -1;
-    private static final int NOTHING = -2;
-    private static final int OWN_TYPE = -3;
-    private static final int FIRST_PARAMETER = -4;
-    private static final int SECOND_PARAMETER = -5;
 
-    /** What stands in a TYPE that is not CLOSED, one bit each. */
+    /** What stands in a TYPE, one bit each; the bits for the SORTS follow. A TYPE with none of OPEN is CLOSED. */
     private static final int HAS_FIRST = 1;
     private static final int HAS_SECOND = 2;
     private static final int HAS_OWN = 4;
+    private static final int OPEN = HAS_FIRST | HAS_SECOND | HAS_OWN;
+    private static final int HAS_SORT = 8;
 
     private static final int NONE = -1;
     private static final int NO_PLACE = -9;
@@ -117,7 +116,7 @@ public final class Hornbook {
         needType(type);
         Sort child = sorts.get(sort);
         Type told = types.get(type);
-        boolean isGood = told.of != null && told.greatest < sort && !has(told, ~allowedIn(child, false));
+        boolean isGood = told.of != null && told.marks < HAS_SORT << sort && !has(told, barredFrom(child, false));
         if (!isGood) throw new IllegalArgumentException("no PARENT for this SORT");
         if (child.second != null) throw new IllegalStateException("no more PARENTS");
         boolean isFirst = child.first == null;
@@ -168,7 +167,7 @@ public final class Hornbook {
         Type first = typeOrNone(one);
         Type second = typeOrNone(other);
         Type last = types.get(result);
-        int barred = ~allowedIn(of, isGeneral);
+        int barred = barredFrom(of, isGeneral);
         boolean isBarred = has(first, barred) || has(second, barred) || has(last, barred);
         if (isBarred) throw new IllegalArgumentException("in one is what the METHOD must not use");
         if (methods.size() >= MOST_METHODS) throw new IllegalStateException("no more METHODS");
@@ -436,7 +435,7 @@ public final class Hornbook {
     }
 
     private void needClosed(int type) {
-        if (types.get(type).marks != 0) throw new IllegalArgumentException("not CLOSED");
+        if (has(types.get(type), OPEN)) throw new IllegalArgumentException("not CLOSED");
     }
 
     private void needSpaceForType() {
@@ -461,11 +460,11 @@ public final class Hornbook {
 
     // ---- helpers of the calls
 
-    /** What may stand in the TYPES that are told for a SORT. */
-    private static int allowedIn(Sort sort, boolean isGeneral) {
-        int marks = isGeneral ? HAS_OWN : 0;
-        if (sort.many > 0) marks |= HAS_FIRST;
-        if (sort.many > 1) marks |= HAS_SECOND;
+    /** What may not stand in the TYPES that are told for a SORT. */
+    private static int barredFrom(Sort sort, boolean isGeneral) {
+        int marks = isGeneral ? 0 : HAS_OWN;
+        if (sort.many < 1) marks |= HAS_FIRST;
+        if (sort.many < 2) marks |= HAS_SECOND;
         return marks;
     }
 
@@ -541,7 +540,8 @@ public final class Hornbook {
                 at = at.other;
             }
         }
-        return at == null || left < 0 ? NO_PLACE : at.code;
+        if (at == null || left < 0) return NO_PLACE;
+        return at.of == null ? ANY - at.number : at.of.number;
     }
 
     /** The TYPES of EXPRESSIONS, which can be very large, go before anything that was told suffers. */
@@ -667,15 +667,12 @@ public final class Hornbook {
     private static final class Type {
         /** null for all that is no TYPE of a SORT. */
         Sort of;
-        int code;
         Type one;
         Type other;
         int depth;
         /** The length of its LINE; the greatest int for all that is longer. */
         int size;
         int marks;
-        /** The greatest number of a SORT in it. */
-        int greatest;
         /** Its place in the Room, as long as that isn't tidied. */
         int number;
         int hash;
@@ -812,11 +809,11 @@ public final class Hornbook {
 
     /** All TYPES that are in use, and how they lie to one another. */
     private static final class Room {
-        final Type any = leaf(ANY, 0, 0);
-        final Type nothing = leaf(NOTHING, 1, 0);
-        final Type ownType = leaf(OWN_TYPE, 2, HAS_OWN);
-        final Type firstParameter = leaf(FIRST_PARAMETER, 3, HAS_FIRST);
-        final Type secondParameter = leaf(SECOND_PARAMETER, 4, HAS_SECOND);
+        final Type any = leaf(0, 0);
+        final Type nothing = leaf(1, 0);
+        final Type ownType = leaf(2, HAS_OWN);
+        final Type firstParameter = leaf(3, HAS_FIRST);
+        final Type secondParameter = leaf(4, HAS_SECOND);
         final ArrayList<Type> told = new ArrayList<>();
         /** What else must stay, if it is tidied, the latest last. */
         final ArrayList<Type> held = new ArrayList<>();
@@ -847,12 +844,10 @@ public final class Hornbook {
             kept.add(secondParameter);
         }
 
-        private static Type leaf(int code, int number, int marks) {
+        private static Type leaf(int number, int marks) {
             Type made = new Type();
-            made.code = code;
             made.size = 1;
             made.marks = marks;
-            made.greatest = NONE;
             made.number = number;
             made.hash = (number + 1) * SPREAD_FIRST;
             return made;
@@ -971,19 +966,16 @@ public final class Hornbook {
             if (used >= kept.size()) kept.add(new Type());
             Type added = kept.get(used);
             added.of = of;
-            added.code = of.number;
             added.one = one;
             added.other = other;
             added.depth = 0;
-            added.marks = 0;
-            added.greatest = of.number;
+            added.marks = HAS_SORT << of.number;
             long size = 1;
             for (int i = 0; i < 2; i++) {
                 Type in = i == 0 ? one : other;
                 if (in == null) continue;
                 added.depth = Math.max(added.depth, in.depth + 1);
                 added.marks |= in.marks;
-                added.greatest = Math.max(added.greatest, in.greatest);
                 size += in.size;
             }
             added.size = (int) Math.min(size, (long) GREATEST_INT);
