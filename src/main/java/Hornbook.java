@@ -36,6 +36,8 @@ public final class Hornbook {
     private static final int EITHER = 1;
     private static final int AS = 2;
     private static final int CALL = 3;
+    /** An EXPRESSION is judged again with all room that there is, if it wanted more than was left. */
+    private static final int ATTEMPTS = 2;
 
     private static final int NONE_SEEN = 1;
     private static final int NONE_TAKES = 2;
@@ -54,6 +56,7 @@ public final class Hornbook {
     /** Once so many TYPES are in use, those that nobody needs are given back. */
     private static final int FIRST_LIMIT = 1 << 13;
     private static final int LAST_LIMIT = 1 << 18;
+    private static final int CROWDED_LIMIT = 3 << 16;
     /** If so many are needed, it is no more worth while to look for others. */
     private static final int FULL = 230000;
     private static final int MOST_KEPT = 280000;
@@ -82,14 +85,11 @@ public final class Hornbook {
     private final ArrayList<Type> types = room.told;
     private final Road road = new Road();
     private final Flaws noted = new Flaws();
-    /** The EXPRESSIONS with smaller numbers have their TYPES as all that was told has it. */
+    /** The EXPRESSIONS with smaller numbers are judged as all that was told has it. */
     private int judged = 0;
     private boolean isNoted = true;
 
     public Hornbook() {
-        types.add(room.any);
-        types.add(room.nothing);
-        types.add(room.ownType);
     }
 
     // ---- what is told: each call that adds something tells its number
@@ -259,43 +259,43 @@ public final class Hornbook {
 
     public int line(int expression, int k) throws IndexOutOfBoundsException {
         needExpression(expression);
-        freshen();
+        freshen(expressions.get(expression), 0);
         return lineAt(expressions.get(expression).result, k);
     }
 
     public int seen(int expression) throws IndexOutOfBoundsException {
         needExpression(expression);
-        freshen();
+        freshen(null, 0);
         return expressions.get(expression).seen;
     }
 
     public int taking(int expression) throws IndexOutOfBoundsException {
         needExpression(expression);
-        freshen();
+        freshen(null, 0);
         return expressions.get(expression).taking;
     }
 
     public int chosen(int expression) throws IndexOutOfBoundsException {
         needExpression(expression);
-        freshen();
+        freshen(null, 0);
         return expressions.get(expression).chosen;
     }
 
     public int own(int expression, int k) throws IndexOutOfBoundsException {
         needExpression(expression);
-        freshen();
+        freshen(expressions.get(expression), 0);
         return lineAt(expressions.get(expression).own, k);
     }
 
     // ---- faults and flaws
 
     public int faults() {
-        freshen();
+        freshen(null, 0);
         return countFaults();
     }
 
     public int ofFault(int fault, int what) throws IndexOutOfBoundsException, IllegalArgumentException {
-        freshen();
+        freshen(null, 0);
         Expression faulty = faultAt(fault);
         if (faulty == null) throw new IndexOutOfBoundsException("no such FAULT");
         if (what != 0 && what != 1) throw new IllegalArgumentException("nothing to tell of a FAULT");
@@ -304,7 +304,7 @@ public final class Hornbook {
 
     public boolean isFaulty(int expression) throws IndexOutOfBoundsException {
         needExpression(expression);
-        freshen();
+        freshen(null, 0);
         return expressions.get(expression).hasFault;
     }
 
@@ -344,7 +344,7 @@ public final class Hornbook {
         if (method < 0 || method >= methods.size()) throw new IndexOutOfBoundsException("no such METHOD");
         chooser.without = method;
         unjudge();
-        freshen();
+        freshen(null, 0);
         int count = countFaults();
         chooser.without = NONE;
         unjudge();
@@ -357,7 +357,7 @@ public final class Hornbook {
         Sort told = sorts.get(sort);
         int before = told.howAt(parameter);
         putHow(told, parameter, how);
-        freshen();
+        freshen(null, 0);
         int count = countFaults();
         putHow(told, parameter, before);
         return count;
@@ -376,16 +376,16 @@ public final class Hornbook {
     }
 
     public double meanDepth() {
-        freshen();
+        freshen(null, 0);
         int count = expressions.size();
         if (count == 0) return 0.0;
         int sum = 0;
-        for (int i = 0; i < count; i++) sum += depthOf(expressions.get(i).result);
+        for (int i = 0; i < count; i++) sum += expressions.get(i).depth;
         return (double) sum / (double) count;
     }
 
     public long digest() {
-        freshen();
+        freshen(null, 0);
         noteFlaws();
         long d = DIGEST_START;
         for (int what = 0; what <= 3; what++) d = mixed(d, countOf(what));
@@ -396,7 +396,10 @@ public final class Hornbook {
             Type second = roadAt(types.get(i), 1);
             for (int k = 0; k <= 3; k++) d = mixed(d, lineAt(second, k));
         }
-        for (int i = 0; i < expressions.size(); i++) d = mixedExpression(d, expressions.get(i));
+        for (int i = 0; i < expressions.size(); i++) {
+            freshen(expressions.get(i), 0);
+            d = mixedExpression(d, expressions.get(i));
+        }
         for (int i = 0; i < expressions.size(); i++) {
             Expression at = expressions.get(i);
             if (at.fault == 0) continue;
@@ -544,45 +547,71 @@ public final class Hornbook {
         return at.of == null ? ANY - at.number : at.of.number;
     }
 
-    /** The TYPES of EXPRESSIONS, which can be very large, go before anything that was told suffers. */
     private void makeSpace() {
-        room.tidy();
-        if (!room.isFull()) return;
-        unjudge();
-        room.tidy();
+        if (room.isCrowded()) letResultsGo();
+        else room.tidy();
     }
 
     private void unjudge() {
         judged = 0;
+        for (int i = 0; i < expressions.size(); i++) expressions.get(i).letGo();
         room.letGo(0);
     }
 
-    private void freshen() {
-        for (int i = judged; i < expressions.size(); i++) {
+    /** Results can be very large: those that nobody waits for are found anew when they are asked for. */
+    private void letResultsGo() {
+        room.letGo(0);
+        for (int i = 0; i < expressions.size(); i++) {
             Expression at = expressions.get(i);
-            at.clear();
-            switch (at.kind) {
-                case VALUE:
-                    at.result = at.told;
-                    break;
-                case EITHER:
-                    at.result = room.joined(resultOf(at.a), resultOf(at.b));
-                    break;
-                case AS:
-                    at.result = at.told;
-                    if (!room.goesUnder(resultOf(at.a), at.told)) at.fault = NOT_UNDER;
-                    break;
-                default:
-                    at.result = room.nothing;
-                    if (at.hasFault) break;
-                    at.fault = chooser.choose(resultOf(at.a), at.name, resultOf(at.b), resultOf(at.c));
-                    at.take(chooser);
-            }
-            if (at.fault != 0) at.hasFault = true;
+            if (at.waiting == 0) at.letGo();
             room.hold(at.result);
             room.hold(at.own);
         }
-        judged = expressions.size();
+        room.tidyNow();
+    }
+
+    /** Judges one EXPRESSION, or all that aren't yet; those that are named in it first, if their results were let go. */
+    private void freshen(Expression only, int level) {
+        int from = only == null ? judged : only.number;
+        int to = only == null ? expressions.size() : only.number + 1;
+        for (int i = from; i < to && level <= MOST_EXPRESSIONS; i++) {
+            Expression at = expressions.get(i);
+            if (at.result != null) continue;
+            at.waitForNamed(1);
+            for (int k = 0; k < 3; k++) {
+                if (at.namedAt(k) != null && at.namedAt(k).result == null) freshen(at.namedAt(k), level + 1);
+            }
+            for (int attempt = 0; attempt < ATTEMPTS; attempt++) {
+                at.clear();
+                if (attempt == 0) room.tidy();
+                else letResultsGo();
+                room.isOver = false;
+                switch (at.kind) {
+                    case VALUE:
+                        at.result = at.told;
+                        break;
+                    case EITHER:
+                        at.result = room.joined(resultOf(at.a), resultOf(at.b));
+                        break;
+                    case AS:
+                        at.result = at.told;
+                        if (!room.goesUnder(resultOf(at.a), at.told)) at.fault = NOT_UNDER;
+                        break;
+                    default:
+                        at.result = room.nothing;
+                        if (at.hasFault) break;
+                        at.fault = chooser.choose(resultOf(at.a), at.name, resultOf(at.b), resultOf(at.c));
+                        at.take(chooser);
+                }
+                if (!room.isOver) break;
+            }
+            at.waitForNamed(-1);
+            if (at.fault != 0) at.hasFault = true;
+            at.depth = depthOf(at.result);
+            room.hold(at.result);
+            room.hold(at.own);
+        }
+        if (only == null) judged = to;
     }
 
     private static Type resultOf(Expression expression) {
@@ -811,7 +840,6 @@ public final class Hornbook {
     private static final class Room {
         final Type any = leaf(0, 0);
         final Type nothing = leaf(1, 0);
-        final Type ownType = leaf(2, HAS_OWN);
         final Type firstParameter = leaf(3, HAS_FIRST);
         final Type secondParameter = leaf(4, HAS_SECOND);
         final ArrayList<Type> told = new ArrayList<>();
@@ -826,6 +854,8 @@ public final class Hornbook {
         private Type marked = null;
         /** Whether it was tidied since the last question was asked. */
         private boolean isTidied = false;
+        /** Whether there was no room for a TYPE that was wanted. */
+        boolean isOver = false;
         /** For a pair whether one is UNDER the other. */
         private final Pairs orders = new Pairs();
         /** For a pair the number of its JOIN. */
@@ -837,11 +867,15 @@ public final class Hornbook {
         private final Road way = new Road();
 
         Room() {
+            Type ownType = leaf(2, HAS_OWN);
             kept.add(any);
             kept.add(nothing);
             kept.add(ownType);
             kept.add(firstParameter);
             kept.add(secondParameter);
+            told.add(any);
+            told.add(nothing);
+            told.add(ownType);
         }
 
         private static Type leaf(int number, int marks) {
@@ -868,8 +902,14 @@ public final class Hornbook {
             if (used >= limit) giveBack();
         }
 
-        boolean isFull() {
-            return limit > LAST_LIMIT;
+        void tidyNow() {
+            isTidied = false;
+            limit = Math.min(limit, LAST_LIMIT);
+            giveBack();
+        }
+
+        boolean isCrowded() {
+            return used > CROWDED_LIMIT;
         }
 
         /** What is given back while a question stands open is asked for again: the second time the room grows. */
@@ -962,7 +1002,10 @@ public final class Hornbook {
             for (Type at = heads[head]; at != null; at = at.next) {
                 if (at.of == of && at.one == one && at.other == other) return at;
             }
-            if (used >= MOST_KEPT) return any;
+            if (used >= MOST_KEPT) {
+                isOver = true;
+                return any;
+            }
             if (used >= kept.size()) kept.add(new Type());
             Type added = kept.get(used);
             added.of = of;
@@ -1337,6 +1380,7 @@ public final class Hornbook {
         Expression c;
         int name;
         Type told;
+        /** null as long as it isn't judged, and again once it was let go. */
         Type result;
         Type own;
         int seen;
@@ -1344,10 +1388,29 @@ public final class Hornbook {
         int chosen;
         int fault;
         boolean hasFault;
+        int depth;
+        /** How many that are being judged wait for its result. */
+        int waiting = 0;
+
+        Expression namedAt(int place) {
+            if (place == 0) return a;
+            return place == 1 ? b : c;
+        }
+
+        void waitForNamed(int change) {
+            if (a != null) a.waiting += change;
+            if (b != null) b.waiting += change;
+            if (c != null) c.waiting += change;
+        }
+
+        void letGo() {
+            result = null;
+            own = null;
+        }
 
         /** As it is before it is judged: it has in it what those have that are named in it. */
         void clear() {
-            own = null;
+            letGo();
             seen = 0;
             taking = 0;
             chosen = NONE;
