@@ -1167,7 +1167,7 @@ public final class Hornbook {
                 if (last != null) top.take(last);
                 if (used >= limit) giveBack();
                 if (top.isWhole()) {
-                    last = top.x == null ? any : make(top.x.of, top.one, top.other);
+                    last = top.x == null || top.x.of == null ? any : make(top.x.of, top.one, top.other);
                     joins.keep(top.a, top.b, last.number);
                     meeting--;
                     continue;
