@@ -21,23 +21,28 @@ public final class Hornbook {
     /** ANY in a LINE; NOTHING, the OWN TYPE and the PARAMETERS follow downwards. */
     private static final int ANY = -1;
 
-    /** What stands in a TYPE, one bit each; the bits for the SORTS follow. A TYPE with none of OPEN is CLOSED. */
+    /** The numbers of what is no TYPE of a SORT; in a pair, those below LEAVES can stand for a SORT. */
+    private static final int ANY_TYPE = 0;
+    private static final int NOTHING_TYPE = 1;
+    private static final int OWN = 2;
+    private static final int FIRST_PARAMETER = 3;
+    private static final int SECOND_PARAMETER = 4;
+    private static final int LEAVES = 16;
+
+    /** What stands in a TYPE, one bit each. A TYPE with none of OPEN is CLOSED. */
     private static final int HAS_FIRST = 1;
     private static final int HAS_SECOND = 2;
     private static final int HAS_OWN = 4;
     private static final int OPEN = HAS_FIRST | HAS_SECOND | HAS_OWN;
-    private static final int HAS_SORT = 8;
 
     private static final int NONE = -1;
+    private static final int TOO_DEEP = -2;
     private static final int NO_PLACE = -9;
-    private static final int GREATEST_INT = 0x7fffffff;
 
     private static final int VALUE = 0;
     private static final int EITHER = 1;
     private static final int AS = 2;
     private static final int CALL = 3;
-    /** An EXPRESSION is judged again with all room that there is, if it wanted more than was left. */
-    private static final int ATTEMPTS = 2;
 
     private static final int NONE_SEEN = 1;
     private static final int NONE_TAKES = 2;
@@ -51,25 +56,66 @@ public final class Hornbook {
     private static final int NO = 0;
     private static final int YES = 1;
 
-    private static final int LEAVES = 5;
-    private static final int TYPES_A_HEAD = 4;
-    /** Once so many TYPES are in use, those that nobody needs are given back. */
-    private static final int FIRST_LIMIT = 1 << 13;
-    private static final int LAST_LIMIT = 1 << 18;
-    private static final int CROWDED_LIMIT = 3 << 16;
-    /** If so many are needed, it is no more worth while to look for others. */
-    private static final int FULL = 230000;
-    private static final int MOST_KEPT = 280000;
-    private static final int FIRST_SLOTS = 256;
-    private static final int MOST_SLOTS = 1 << 19;
-    /** Far above what a question needs, as each pair is remembered. */
-    private static final int MOST_STEPS = 1 << 25;
+    /** What a number stands for: one of the SORTS, or one of these. */
+    private static final int SHUT = 12;
+    private static final int LINKED = 13;
+    private static final int LEAF = 14;
+    private static final int FREE = 15;
 
-    /** How many bits the number of a TYPE has at most. */
-    private static final int NUMBER_BITS = 20;
+    /** Where the parts of the words of a TYPE lie. */
+    private static final int ID_BITS = 21;
+    private static final int ID_MASK = (1 << ID_BITS) - 1;
+    private static final int UPPER = 42;
+    private static final long JOIN_BIT = 1L << 63;
+    private static final int FORM_AT = 60;
+    private static final int ONE_AT = 39;
+    private static final int OTHER_AT = 18;
+    private static final int DEPTH_AT = 9;
+    private static final int DEPTH_MASK = (1 << DEPTH_AT) - 1;
+    private static final long LOWER_MASK = (1L << OTHER_AT) - 1;
+    private static final int UNKNOWN = DEPTH_MASK;
+    /** A reach that is as great, or greater. */
+    private static final int ENDLESS = UNKNOWN - 1;
+    private static final int DEEPEST_FLAT = 500;
+    private static final int MOST_LINKS = 1 << 6;
+
+    /** How many TYPES there is room for; all else grows with them. */
+    private static final int FIRST_NODES = 1 << 10;
+    private static final int MOST_NODES = 1700000;
+    private static final int NODES_A_HEAD = 4;
+    private static final int GROWTH = 8;
+    /** If more than one of so many is needed, it is too much. */
+    private static final int CROWDED_SHARE = 2;
+    /** More than can be made at one step. */
+    private static final int RESERVE = 1 << 9;
+    private static final int FIRST_HELD = 1 << 6;
+    private static final int FIRST_HINTS = 1 << 3;
+
+    private static final int FIRST_SLOTS = 1 << 9;
+    private static final int MOST_SLOTS = 1 << 20;
+    private static final int SLOTS_A_ROW = 4;
+    private static final int VALUE_BITS = 22;
+    /** From so many places on it is worth while to remember how long LINES are. */
+    private static final int LONG_LINE = 1 << 10;
+    private static final int MOST_SIZES = 1 << 17;
+    private static final int SIZE_BITS = 32;
+    private static final long SIZE_MASK = (1L << SIZE_BITS) - 1;
+
+    /** Far above what a question needs. */
+    private static final int MOST_STEPS = 1 << 30;
     private static final long SPREAD = 0x9E3779B97F4A7C15L;
-    private static final int SPREAD_FIRST = 0x85EBCA6B;
-    private static final int SPREAD_SECOND = 0xC2B2AE35;
+
+    /** The questions: whether one is UNDER another; what a JOIN comes to be, and its ways to that; and others. */
+    private static final int ORDER = 0;
+    private static final int FORM = 1;
+    private static final int MEET = 2;
+    private static final int PARTS = 3;
+    private static final int ROAD = 4;
+    private static final int SMALL = 5;
+    private static final int REACH = 6;
+    private static final int DEPTH = 7;
+    private static final int LINE = 8;
+    private static final int PARTS_AND_PARENTS = 4;
 
     /** Told TYPES are at most 4 deep; a guard for what goes down in one. */
     private static final int MOST_LEVELS = 20;
@@ -77,14 +123,15 @@ public final class Hornbook {
     private static final long DIGEST_START = 58064L;
     private static final int DIGEST_FACTOR = 31;
 
-    private final ArrayList<Sort> sorts = new ArrayList<>();
     private final ArrayList<Expression> expressions = new ArrayList<>();
     private final Chooser chooser = new Chooser();
     private final ArrayList<Method> methods = chooser.methods;
     private final Room room = chooser.room;
-    private final ArrayList<Type> types = room.told;
-    private final Road road = new Road();
+    private final Nodes nodes = room.nodes;
+    private final ArrayList<Sort> sorts = room.sorts;
     private final Flaws noted = new Flaws();
+    /** The first TYPE of each SORT that came on a way up, as FLAWS look for it. */
+    private final int[] met = new int[MOST_SORTS];
     /** The EXPRESSIONS with smaller numbers are judged as all that was told has it. */
     private int judged = 0;
     private boolean isNoted = true;
@@ -104,7 +151,8 @@ public final class Hornbook {
         told.many = many;
         told.howOne = many < 1 ? FIXED : first;
         told.howOther = many < 2 ? FIXED : second;
-        told.above = 1 << told.number;
+        told.startWay();
+        nodes.many[told.number] = many;
         sorts.add(told);
         isNoted = false;
         return told.number;
@@ -115,16 +163,15 @@ public final class Hornbook {
         needSort(sort);
         needType(type);
         Sort child = sorts.get(sort);
-        Type told = types.get(type);
-        boolean isGood = told.of != null && told.marks < HAS_SORT << sort && !has(told, barredFrom(child, false));
+        int told = room.toldAt(type);
+        boolean isGood = nodes.formOf(told) < sort && isBelow(told, sort, 0) && !has(told, barredFrom(child, false));
         if (!isGood) throw new IllegalArgumentException("no PARENT for this SORT");
-        if (child.second != null) throw new IllegalStateException("no more PARENTS");
-        boolean isFirst = child.first == null;
+        if (child.second != NONE) throw new IllegalStateException("no more PARENTS");
+        boolean isFirst = child.first == NONE;
         if (isFirst) child.first = told;
         else child.second = told;
         lookUp();
-        room.forget();
-        unjudge();
+        startAnew();
         isNoted = false;
         return isFirst ? 1 : MOST_PARENTS;
     }
@@ -138,21 +185,19 @@ public final class Hornbook {
         needInOrder(one, other);
         int many = (one == NONE ? 0 : 1) + (other == NONE ? 0 : 1);
         if (many != of.many) throw new IllegalArgumentException("not as many as the PARAMETERS");
-        Type first = typeOrNone(one);
-        Type second = typeOrNone(other);
-        boolean isTooDeep = depthOf(first) >= DEEPEST_TOLD || depthOf(second) >= DEEPEST_TOLD;
+        int first = room.toldAt(one);
+        int second = room.toldAt(other);
+        boolean isTooDeep = nodes.depthOf(first) >= DEEPEST_TOLD || nodes.depthOf(second) >= DEEPEST_TOLD;
         if (isTooDeep) throw new IllegalArgumentException("too deep");
         needSpaceForType();
-        makeSpace();
-        types.add(room.make(of, first, second));
-        return types.size() - 1;
+        room.tidy();
+        return room.tell(nodes.make(sort, Math.max(first, ANY_TYPE), Math.max(second, ANY_TYPE)));
     }
 
     public int parameter(int which) throws IllegalArgumentException, IllegalStateException {
         if (which != 0 && which != 1) throw new IllegalArgumentException("no such PARAMETER");
         needSpaceForType();
-        types.add(which == 0 ? room.firstParameter : room.secondParameter);
-        return types.size() - 1;
+        return room.tell(which == 0 ? FIRST_PARAMETER : SECOND_PARAMETER);
     }
 
     public int method(int sort, int name, int one, int other, int result, boolean isGeneral)
@@ -164,16 +209,16 @@ public final class Hornbook {
         needName(name);
         needInOrder(one, other);
         Sort of = sorts.get(sort);
-        Type first = typeOrNone(one);
-        Type second = typeOrNone(other);
-        Type last = types.get(result);
+        int first = room.toldAt(one);
+        int second = room.toldAt(other);
+        int last = room.toldAt(result);
         int barred = barredFrom(of, isGeneral);
         boolean isBarred = has(first, barred) || has(second, barred) || has(last, barred);
         if (isBarred) throw new IllegalArgumentException("in one is what the METHOD must not use");
         if (methods.size() >= MOST_METHODS) throw new IllegalStateException("no more METHODS");
         Method told = new Method();
         told.number = methods.size();
-        told.sort = of;
+        told.sort = sort;
         told.name = name;
         told.one = first;
         told.other = second;
@@ -188,13 +233,13 @@ public final class Hornbook {
     public int value(int type) throws IndexOutOfBoundsException, IllegalArgumentException, IllegalStateException {
         needType(type);
         needClosed(type);
-        return addExpression(VALUE, null, null, null, 0, types.get(type));
+        return addExpression(VALUE, null, null, null, 0, room.toldAt(type));
     }
 
     public int either(int a, int b) throws IndexOutOfBoundsException, IllegalStateException {
         needExpression(a);
         needExpression(b);
-        return addExpression(EITHER, expressions.get(a), expressions.get(b), null, 0, null);
+        return addExpression(EITHER, expressions.get(a), expressions.get(b), null, 0, NONE);
     }
 
     public int as(int expression, int type)
@@ -202,7 +247,7 @@ public final class Hornbook {
         needExpression(expression);
         needType(type);
         needClosed(type);
-        return addExpression(AS, expressions.get(expression), null, null, 0, types.get(type));
+        return addExpression(AS, expressions.get(expression), null, null, 0, room.toldAt(type));
     }
 
     public int call(int expression, int name, int one, int other)
@@ -214,7 +259,7 @@ public final class Hornbook {
         needInOrder(one, other);
         Expression first = one == NONE ? null : expressions.get(one);
         Expression second = other == NONE ? null : expressions.get(other);
-        return addExpression(CALL, expressions.get(expression), first, second, name, null);
+        return addExpression(CALL, expressions.get(expression), first, second, name, NONE);
     }
 
     public int many(int what) throws IllegalArgumentException {
@@ -226,76 +271,74 @@ public final class Hornbook {
 
     public int depth(int type) throws IndexOutOfBoundsException {
         needType(type);
-        return types.get(type).depth;
+        return nodes.depthOf(room.toldAt(type));
     }
 
     public boolean isSame(int a, int b) throws IndexOutOfBoundsException {
         needType(a);
         needType(b);
-        return types.get(a) == types.get(b);
+        return room.toldAt(a) == room.toldAt(b);
     }
 
     public boolean isUnder(int a, int b) throws IndexOutOfBoundsException {
         needType(a);
         needType(b);
-        makeSpace();
-        return room.goesUnder(types.get(a), types.get(b));
+        return room.goesUnder(room.toldAt(a), room.toldAt(b));
     }
 
     public int road(int type, int place, int k) throws IndexOutOfBoundsException {
         needType(type);
-        makeSpace();
-        return lineAt(roadAt(types.get(type), place), k);
+        return room.lineAt(roadAt(room.toldAt(type), place), k);
     }
 
     public int join(int a, int b, int k) throws IndexOutOfBoundsException {
         needType(a);
         needType(b);
-        makeSpace();
-        return lineAt(room.joined(types.get(a), types.get(b)), k);
+        room.tidy();
+        return room.lineAt(room.joinOf(room.toldAt(a), room.toldAt(b)), k);
     }
 
     // ---- expressions
 
     public int line(int expression, int k) throws IndexOutOfBoundsException {
         needExpression(expression);
-        freshen(expressions.get(expression), 0);
-        return lineAt(expressions.get(expression).result, k);
+        freshen();
+        return room.lineAt(expressions.get(expression).result, k);
     }
 
     public int seen(int expression) throws IndexOutOfBoundsException {
         needExpression(expression);
-        freshen(null, 0);
+        freshen();
         return expressions.get(expression).seen;
     }
 
     public int taking(int expression) throws IndexOutOfBoundsException {
         needExpression(expression);
-        freshen(null, 0);
+        freshen();
         return expressions.get(expression).taking;
     }
 
     public int chosen(int expression) throws IndexOutOfBoundsException {
         needExpression(expression);
-        freshen(null, 0);
+        freshen();
         return expressions.get(expression).chosen;
     }
 
     public int own(int expression, int k) throws IndexOutOfBoundsException {
         needExpression(expression);
-        freshen(expressions.get(expression), 0);
-        return lineAt(expressions.get(expression).own, k);
+        freshen();
+        return room.lineAt(expressions.get(expression).own, k);
     }
 
     // ---- faults and flaws
 
     public int faults() {
-        freshen(null, 0);
+        freshen();
         return countFaults();
     }
 
     public int ofFault(int fault, int what) throws IndexOutOfBoundsException, IllegalArgumentException {
-        freshen(null, 0);
+        freshen();
         Expression faulty = faultAt(fault);
         if (faulty == null) throw new IndexOutOfBoundsException("no such FAULT");
         if (what != 0 && what != 1) throw new IllegalArgumentException("nothing to tell of a FAULT");
@@ -304,18 +347,16 @@ public final class Hornbook {
 
     public boolean isFaulty(int expression) throws IndexOutOfBoundsException {
         needExpression(expression);
-        freshen(null, 0);
+        freshen();
         return expressions.get(expression).hasFault;
     }
 
     public int flaws() {
-        makeSpace();
         noteFlaws();
         return noted.count;
     }
 
     public int ofFlaw(int flaw, int what) throws IndexOutOfBoundsException, IllegalArgumentException {
-        makeSpace();
         noteFlaws();
         if (flaw < 0 || flaw >= noted.count) throw new IndexOutOfBoundsException("no such FLAW");
         if (what < 0 || what > 2) throw new IllegalArgumentException("nothing to tell of a FLAW");
@@ -334,8 +375,7 @@ public final class Hornbook {
         needClosed(type);
         if (one != NONE) needClosed(one);
         if (other != NONE) needClosed(other);
-        makeSpace();
-        int fault = chooser.choose(types.get(type), name, typeOrNone(one), typeOrNone(other));
+        int fault = chooser.choose(room.toldAt(type), name, room.toldAt(one), room.toldAt(other));
         if (fault != 0 || chooser.best == null) return -fault;
         return chooser.best.method;
     }
@@ -344,7 +384,7 @@ public final class Hornbook {
         if (method < 0 || method >= methods.size()) throw new IndexOutOfBoundsException("no such METHOD");
         chooser.without = method;
         unjudge();
-        freshen(null, 0);
+        freshen();
         int count = countFaults();
         chooser.without = NONE;
         unjudge();
@@ -357,7 +397,7 @@ public final class Hornbook {
         Sort told = sorts.get(sort);
         int before = told.howAt(parameter);
         putHow(told, parameter, how);
-        freshen(null, 0);
+        freshen();
         int count = countFaults();
         putHow(told, parameter, before);
         return count;
@@ -376,30 +416,30 @@ public final class Hornbook {
     }
 
     public double meanDepth() {
-        freshen(null, 0);
+        freshen();
         int count = expressions.size();
         if (count == 0) return 0.0;
         int sum = 0;
-        for (int i = 0; i < count; i++) sum += expressions.get(i).depth;
+        for (int i = 0; i < count; i++) {
+            Expression at = expressions.get(i);
+            if (at.depth == NONE) at.depth = room.depthOf(at.result);
+            sum += at.depth;
+        }
         return (double) sum / (double) count;
     }
 
     public long digest() {
-        freshen(null, 0);
+        freshen();
         noteFlaws();
         long d = DIGEST_START;
         for (int what = 0; what <= 3; what++) d = mixed(d, countOf(what));
         d = mixed(d, countFaults());
         d = mixed(d, noted.count);
-        for (int i = 0; i < types.size(); i++) {
-            d = mixed(d, types.get(i).depth);
-            Type second = roadAt(types.get(i), 1);
-            for (int k = 0; k <= 3; k++) d = mixed(d, lineAt(second, k));
+        for (int i = 0; i < room.tellings; i++) {
+            d = mixed(d, nodes.depthOf(room.toldAt(i)));
+            for (int k = 0; k <= 3; k++) d = mixed(d, room.lineAt(roadAt(room.toldAt(i), 1), k));
         }
-        for (int i = 0; i < expressions.size(); i++) {
-            freshen(expressions.get(i), 0);
-            d = mixedExpression(d, expressions.get(i));
-        }
+        for (int i = 0; i < expressions.size(); i++) d = mixedExpression(d, expressions.get(i));
         for (int i = 0; i < expressions.size(); i++) {
             Expression at = expressions.get(i);
             if (at.fault == 0) continue;
@@ -419,7 +459,7 @@ public final class Hornbook {
     }
 
     private void needType(int type) {
-        if (type < 0 || type >= types.size()) throw new IndexOutOfBoundsException("no such TYPE");
+        if (type < 0 || type >= room.tellings) throw new IndexOutOfBoundsException("no such TYPE");
     }
 
     private void needTypeOrNone(int type) {
@@ -438,11 +478,11 @@ public final class Hornbook {
     }
 
     private void needClosed(int type) {
-        if (has(types.get(type), OPEN)) throw new IllegalArgumentException("not CLOSED");
+        if (has(room.toldAt(type), OPEN)) throw new IllegalArgumentException("not CLOSED");
     }
 
     private void needSpaceForType() {
-        if (types.size() >= MOST_TYPES) throw new IllegalStateException("no more TYPES");
+        if (room.tellings >= MOST_TYPES) throw new IllegalStateException("no more TYPES");
     }
 
     private static void needName(int name) {
@@ -471,19 +511,19 @@ public final class Hornbook {
         return marks;
     }
 
-    private static boolean has(Type type, int marks) {
-        return type != null && (type.marks & marks) != 0;
+    private boolean has(int type, int marks) {
+        return (nodes.openOf(type) & marks) != 0;
     }
 
-    private Type typeOrNone(int type) {
-        return type < 0 || type >= types.size() ? null : types.get(type);
+    /** Whether all SORTS in it have smaller numbers. */
+    private boolean isBelow(int type, int sort, int level) {
+        int form = nodes.formOf(type);
+        if (form == LEAF || level > MOST_LEVELS) return form == LEAF;
+        return form < sort && isBelow(nodes.partOf(type, 0), sort, level + 1)
+                && isBelow(nodes.partOf(type, 1), sort, level + 1);
     }
 
-    private static int depthOf(Type type) {
-        return type == null ? 0 : type.depth;
-    }
-
-    private int addExpression(int kind, Expression a, Expression b, Expression c, int name, Type told) {
+    private int addExpression(int kind, Expression a, Expression b, Expression c, int name, int told) {
         if (expressions.size() >= MOST_EXPRESSIONS) throw new IllegalStateException("no more EXPRESSIONS");
         Expression added = new Expression();
         added.number = expressions.size();
@@ -500,7 +540,7 @@ public final class Hornbook {
     private int countOf(int what) {
         switch (what) {
             case 0: return sorts.size();
-            case 1: return types.size();
+            case 1: return room.tellings;
             case 2: return methods.size();
             default: return expressions.size();
         }
@@ -510,112 +550,69 @@ public final class Hornbook {
     private void lookUp() {
         for (int i = 0; i < sorts.size(); i++) {
             Sort at = sorts.get(i);
-            at.above = 1 << i;
-            if (at.first != null && at.first.of != null) at.above |= at.first.of.above;
-            if (at.second != null && at.second.of != null) at.above |= at.second.of.above;
+            at.startWay();
+            int first = nodes.formOf(at.first);
+            int second = nodes.formOf(at.second);
+            if (first < i) at.goOn(sorts.get(first));
+            if (second < i) at.goOn(sorts.get(second));
         }
     }
 
     private void putHow(Sort sort, int parameter, int how) {
         if (parameter == 0) sort.howOne = how;
         else sort.howOther = how;
-        room.forget();
-        unjudge();
+        startAnew();
         isNoted = false;
     }
 
-    private Type roadAt(Type type, int place) {
-        room.tidy();
-        road.clear();
-        room.climb(type, road, 0);
-        return road.at(place);
-    }
-
-    private static int lineAt(Type type, int k) {
-        Type at = type;
-        int left = k;
-        while (at != null && left > 0) {
-            left--;
-            if (at.one == null || left < at.one.size) {
-                at = at.one;
-            } else {
-                left -= at.one.size;
-                at = at.other;
-            }
-        }
-        if (at == null || left < 0) return NO_PLACE;
-        return at.of == null ? ANY - at.number : at.of.number;
-    }
-
-    private void makeSpace() {
-        if (room.isCrowded()) letResultsGo();
-        else room.tidy();
+    /** NONE, if there is none. */
+    private int roadAt(int type, int place) {
+        int form = nodes.formOf(type);
+        int sort = form >= sorts.size() ? NONE : sorts.get(form).wayAt(place);
+        return sort == NONE || sort == form ? sort == NONE ? NONE : type : room.ask(ROAD, type, sort);
     }
 
     private void unjudge() {
         judged = 0;
-        for (int i = 0; i < expressions.size(); i++) expressions.get(i).letGo();
         room.letGo(0);
     }
 
-    /** Results can be very large: those that nobody waits for are found anew when they are asked for. */
-    private void letResultsGo() {
-        room.letGo(0);
-        for (int i = 0; i < expressions.size(); i++) {
-            Expression at = expressions.get(i);
-            if (at.waiting == 0) at.letGo();
-            room.hold(at.result);
-            room.hold(at.own);
-        }
-        room.tidyNow();
+    private void startAnew() {
+        unjudge();
+        room.startAnew();
     }
 
-    /** Judges one EXPRESSION, or all that aren't yet; those that are named in it first, if their results were let go. */
-    private void freshen(Expression only, int level) {
-        int from = only == null ? judged : only.number;
-        int to = only == null ? expressions.size() : only.number + 1;
-        for (int i = from; i < to && level <= MOST_EXPRESSIONS; i++) {
-            Expression at = expressions.get(i);
-            if (at.result != null) continue;
-            at.waitForNamed(1);
-            for (int k = 0; k < 3; k++) {
-                if (at.namedAt(k) != null && at.namedAt(k).result == null) freshen(at.namedAt(k), level + 1);
+    /** Judges all EXPRESSIONS that aren't yet. What a JOIN comes to be is looked at when it is asked for. */
+    private void freshen() {
+        for (; judged < expressions.size(); judged++) {
+            Expression at = expressions.get(judged);
+            at.clear();
+            room.tidy();
+            switch (at.kind) {
+                case VALUE:
+                    at.result = at.told;
+                    break;
+                case EITHER:
+                    at.result = room.joinOf(resultOf(at.a), resultOf(at.b));
+                    break;
+                case AS:
+                    at.result = at.told;
+                    if (!room.goesUnder(resultOf(at.a), at.told)) at.fault = NOT_UNDER;
+                    break;
+                default:
+                    at.result = NOTHING_TYPE;
+                    if (at.hasFault) break;
+                    at.fault = chooser.choose(resultOf(at.a), at.name, resultOf(at.b), resultOf(at.c));
+                    at.take(chooser);
             }
-            for (int attempt = 0; attempt < ATTEMPTS; attempt++) {
-                at.clear();
-                if (attempt == 0) room.tidy();
-                else letResultsGo();
-                room.isOver = false;
-                switch (at.kind) {
-                    case VALUE:
-                        at.result = at.told;
-                        break;
-                    case EITHER:
-                        at.result = room.joined(resultOf(at.a), resultOf(at.b));
-                        break;
-                    case AS:
-                        at.result = at.told;
-                        if (!room.goesUnder(resultOf(at.a), at.told)) at.fault = NOT_UNDER;
-                        break;
-                    default:
-                        at.result = room.nothing;
-                        if (at.hasFault) break;
-                        at.fault = chooser.choose(resultOf(at.a), at.name, resultOf(at.b), resultOf(at.c));
-                        at.take(chooser);
-                }
-                if (!room.isOver) break;
-            }
-            at.waitForNamed(-1);
             if (at.fault != 0) at.hasFault = true;
-            at.depth = depthOf(at.result);
             room.hold(at.result);
             room.hold(at.own);
         }
-        if (only == null) judged = to;
     }
 
-    private static Type resultOf(Expression expression) {
-        return expression == null ? null : expression.result;
+    private static int resultOf(Expression expression) {
+        return expression == null ? NONE : expression.result;
     }
 
     private int countFaults() {
@@ -645,34 +642,64 @@ public final class Hornbook {
     }
 
     private void noteFlawsOf(Sort sort) {
-        if (room.standsBadly(sort.first, OUT, sort, 0)) noted.note(sort.number, BAD_PARENT, 0);
-        if (room.standsBadly(sort.second, OUT, sort, 0)) noted.note(sort.number, BAD_PARENT, 1);
-        Type one = sort.many > 0 ? room.firstParameter : null;
-        Type other = sort.many > 1 ? room.secondParameter : null;
+        if (standsBadly(sort.first, OUT, sort, 0)) noted.note(sort.number, BAD_PARENT, 0);
+        if (standsBadly(sort.second, OUT, sort, 0)) noted.note(sort.number, BAD_PARENT, 1);
         room.tidy();
-        road.clear();
-        room.climb(room.make(sort, one, other), road, 0);
-        if (road.isMixed) noted.note(sort.number, MIXED_ROAD, NONE);
+        Arrays.fill(met, NONE);
+        int one = sort.many > 0 ? FIRST_PARAMETER : ANY_TYPE;
+        int other = sort.many > 1 ? SECOND_PARAMETER : ANY_TYPE;
+        if (isMixed(nodes.make(sort.number, one, other), 0)) noted.note(sort.number, MIXED_ROAD, NONE);
         for (int i = 0; i < methods.size(); i++) {
             Method at = methods.get(i);
-            if (at.sort != sort) continue;
-            boolean isBad = room.standsBadly(at.one, IN, sort, 0) || room.standsBadly(at.other, IN, sort, 0)
-                    || room.standsBadly(at.result, OUT, sort, 0);
+            if (at.sort != sort.number) continue;
+            boolean isBad = standsBadly(at.one, IN, sort, 0) || standsBadly(at.other, IN, sort, 0)
+                    || standsBadly(at.result, OUT, sort, 0);
             if (isBad) noted.note(sort.number, BAD_METHOD, at.number);
         }
+    }
+
+    /** Whether two of one SORT, and not the SAME, come on the way up. What is the SAME has the same way up. */
+    private boolean isMixed(int from, int level) {
+        int form = nodes.formOf(from);
+        if (form >= sorts.size() || form >= met.length || level > MOST_SORTS) return false;
+        if (met[form] != NONE) return met[form] != from;
+        met[form] = from;
+        Sort of = sorts.get(form);
+        int one = nodes.partOf(from, 0);
+        int other = nodes.partOf(from, 1);
+        return isMixed(room.put(of.first, one, other, NONE, 0), level + 1)
+                || isMixed(room.put(of.second, one, other, NONE, 0), level + 1);
+    }
+
+    /** Whether a PARAMETER of the SORT stands where it must not, in what itself stands this way. */
+    private boolean standsBadly(int in, int way, Sort sort, int level) {
+        if ((nodes.openOf(in) & (HAS_FIRST | HAS_SECOND)) == 0 || level > MOST_LEVELS) return false;
+        int form = nodes.formOf(in);
+        if (form >= sorts.size()) {
+            int how = sort.howAt(in == FIRST_PARAMETER ? 0 : 1);
+            return how != FIXED && how != way;
+        }
+        Sort of = sorts.get(form);
+        return standsBadly(nodes.partOf(in, 0), turned(way, of.howOne), sort, level + 1)
+                || standsBadly(nodes.partOf(in, 1), turned(way, of.howOther), sort, level + 1);
+    }
+
+    private static int turned(int way, int how) {
+        if (way == FIXED || how == FIXED) return FIXED;
+        return how == OUT ? way : OUT + IN - way;
     }
 
     private static long mixed(long d, long x) {
         return d * DIGEST_FACTOR + x;
     }
 
-    private static long mixedExpression(long before, Expression at) {
+    private long mixedExpression(long before, Expression at) {
         long d = before;
-        for (int k = 0; k <= 5; k++) d = mixed(d, lineAt(at.result, k));
+        for (int k = 0; k <= 5; k++) d = mixed(d, room.lineAt(at.result, k));
         d = mixed(d, at.seen);
         d = mixed(d, at.taking);
         d = mixed(d, at.chosen);
-        d = mixed(d, lineAt(at.own, 0));
+        d = mixed(d, room.lineAt(at.own, 0));
         return mixed(d, at.hasFault ? 1 : 0);
     }
 
@@ -682,65 +709,310 @@ public final class Hornbook {
         /** FIXED, if it has no such PARAMETER. */
         int howOne;
         int howOther;
-        Type first;
-        Type second;
+        int first = NONE;
+        int second = NONE;
         /** The SORTS that come on its ROAD, one bit each. */
         int above;
+        /** These in the order in which they come. */
+        final int[] way = new int[MOST_SORTS];
+        int length;
 
         int howAt(int parameter) {
             return parameter == 0 ? howOne : howOther;
         }
-    }
 
-    /** TYPES that are the SAME are one object of a Room, as long as it is in use. */
-    private static final class Type {
-        /** null for all that is no TYPE of a SORT. */
-        Sort of;
-        Type one;
-        Type other;
-        int depth;
-        /** The length of its LINE; the greatest int for all that is longer. */
-        int size;
-        int marks;
-        /** Its place in the Room, as long as that isn't tidied. */
-        int number;
-        int hash;
-        Type next;
-        /** It as the PARENTS of its SORT; null for what nobody has asked for yet. */
-        Type first;
-        Type second;
-        boolean isNeeded;
-    }
-
-    /** A ROAD, in a row that is used again and again. */
-    private static final class Road {
-        final Type[] row = new Type[MOST_SORTS];
-        int count = 0;
-        /** Whether a SORT came a second time, and not the SAME. */
-        boolean isMixed = false;
-
-        void clear() {
-            count = 0;
-            isMixed = false;
+        boolean goesTo(int sort) {
+            return sort >= 0 && sort < MOST_SORTS && (above >> sort & 1) == 1;
         }
 
-        Type at(int place) {
-            return place < 0 || place >= count || place >= row.length ? null : row[place];
+        int wayAt(int place) {
+            return place < 0 || place >= length || place >= way.length ? NONE : way[place];
         }
 
-        int placeOf(Sort sort) {
-            for (int i = 0; i < count && i < row.length; i++) {
-                if (row[i] != null && row[i].of == sort) return i;
+        int placeOf(int sort) {
+            for (int i = 0; i < length && i < way.length; i++) {
+                if (way[i] == sort) return i;
             }
             return NONE;
         }
+
+        void startWay() {
+            length = 0;
+            above = 0;
+            pass(number);
+        }
+
+        void goOn(Sort parent) {
+            for (int i = 0; i < parent.length; i++) pass(parent.wayAt(i));
+        }
+
+        private void pass(int sort) {
+            if (sort < 0 || goesTo(sort) || length >= way.length) return;
+            above |= 1 << sort;
+            way[length] = sort;
+            length++;
+        }
     }
 
-    /** Pairs of TYPES with a number for each; all are forgotten at once, if there are too many. */
+    /**
+     * All TYPES that are in use, by numbers, two words each. What is built in the same way has one number, if there is
+     * no JOIN in it. A JOIN has a number of its own as long as it isn't looked at; then it is linked to what it comes to
+     * be, or takes the form of that.
+     */
+    private static final class Nodes {
+        /** How many PARAMETERS each SORT has. */
+        final int[] many = new int[MOST_SORTS];
+        /** For a JOIN the sign that it is one and both of it, else what is OPEN in it; the next one of its chain. */
+        private long[] first = new long[FIRST_NODES];
+        /** Its form, the TYPES in it, how deep it is or can be, and how deep what it meets can make it. */
+        private long[] second = new long[FIRST_NODES];
+        private int[] heads = new int[FIRST_NODES / NODES_A_HEAD];
+        private long[] marks = new long[FIRST_NODES >> 6];
+        private long[] pins = new long[FIRST_NODES >> 6];
+        private int used = LEAVES;
+        private int free = 0;
+        private int count = LEAVES;
+        private int marked = 0;
+        /** How many are marked. */
+        private int live = 0;
+
+        Nodes() {
+            for (int i = 0; i < LEAVES; i++) second[i] = (long) LEAF << FORM_AT;
+            first[OWN] = (long) HAS_OWN << UPPER;
+            first[FIRST_PARAMETER] = (long) HAS_FIRST << UPPER;
+            first[SECOND_PARAMETER] = (long) HAS_SECOND << UPPER;
+        }
+
+        boolean isThere(int id) {
+            return id >= 0 && id < used && id < second.length;
+        }
+
+        int formOf(int id) {
+            return isThere(id) ? (int) (second[id] >>> FORM_AT) : LEAF;
+        }
+
+        /** What is found there by now. What a JOIN is linked to can have been linked to another one later. */
+        int through(int id) {
+            int at = id;
+            for (int n = 0; n < MOST_LINKS && isThere(at) && (int) (second[at] >>> FORM_AT) == LINKED; n++) {
+                at = (int) (second[at] >>> ONE_AT) & ID_MASK;
+            }
+            return at;
+        }
+
+        boolean isJoin(int id) {
+            return isThere(id) && first[id] < 0;
+        }
+
+        /** Whether it is a JOIN that wasn't looked at. */
+        boolean isShut(int id) {
+            return isThere(id) && (int) (second[id] >>> FORM_AT) == SHUT;
+        }
+
+        /** The first or second TYPE in it. */
+        int partOf(int id, int turn) {
+            if (!isThere(id)) return ANY_TYPE;
+            return (int) (second[id] >>> (turn == 0 ? ONE_AT : OTHER_AT)) & ID_MASK;
+        }
+
+        /** The first or second of a JOIN. */
+        int joinedOf(int id, int turn) {
+            if (!isThere(id)) return ANY_TYPE;
+            return (int) (first[id] >>> (turn == 0 ? UPPER : ID_BITS)) & ID_MASK;
+        }
+
+        /** What is OPEN in it. */
+        int openOf(int id) {
+            return !isThere(id) || first[id] < 0 ? 0 : (int) (first[id] >>> UPPER) & OPEN;
+        }
+
+        /** The DEPTH of what is no JOIN. */
+        int depthOf(int id) {
+            return isThere(id) ? (int) (second[id] >>> DEPTH_AT) & DEPTH_MASK : 0;
+        }
+
+        int reachOf(int id) {
+            return isThere(id) ? (int) second[id] & DEPTH_MASK : 0;
+        }
+
+        /** A DEPTH that it doesn't go beyond; UNKNOWN if there is none. */
+        int mostDepthOf(int id) {
+            if (!isThere(id)) return 0;
+            int most = (int) (second[id] >>> DEPTH_AT) & DEPTH_MASK;
+            if (first[id] >= 0 || most != UNKNOWN) return most;
+            int a = (int) (first[id] >>> UPPER) & ID_MASK;
+            int b = (int) (first[id] >>> ID_BITS) & ID_MASK;
+            if (a >= second.length || b >= second.length) return UNKNOWN;
+            most = Math.max((int) second[a] & DEPTH_MASK, (int) second[b] & DEPTH_MASK);
+            return most >= ENDLESS ? UNKNOWN : most;
+        }
+
+        void putMostDepth(int id, int depth) {
+            if (!isThere(id) || depth < 0 || depth >= UNKNOWN) return;
+            second[id] = second[id] & ~((long) DEPTH_MASK << DEPTH_AT) | (long) depth << DEPTH_AT;
+        }
+
+        void putReach(int id, int reach) {
+            if (!isThere(id) || reach < 0) return;
+            second[id] = second[id] & ~(long) DEPTH_MASK | Math.min(reach, ENDLESS);
+        }
+
+        void putForm(int id, int form, int one, int other) {
+            if (!isThere(id)) return;
+            second[id] = (long) form << FORM_AT | (long) one << ONE_AT | (long) other << OTHER_AT
+                    | second[id] & LOWER_MASK;
+        }
+
+        /** The number of what is built so; a JOIN, if the form is SHUT. */
+        int make(int form, int one, int other) {
+            boolean isJoin = form == SHUT;
+            long parts = (long) form << FORM_AT | (long) one << ONE_AT | (long) other << OTHER_AT;
+            long key = isJoin ? JOIN_BIT | (long) one << UPPER | (long) other << ID_BITS : parts;
+            int head = (int) (key * SPREAD >>> 40) & (heads.length - 1);
+            int at = heads[head];
+            for (int n = 0; n < MOST_NODES && at > 0 && at < second.length; n++) {
+                long found = isJoin ? first[at] & ~(long) ID_MASK : second[at] & ~LOWER_MASK;
+                if (found == key && first[at] < 0 == isJoin) return at;
+                at = (int) first[at] & ID_MASK;
+            }
+            int added = free > 0 ? free : used;
+            int most = Math.max(added, Math.max(one, other));
+            if (most >= second.length || one < 0 || other < 0) return ANY_TYPE;
+            if (free > 0) free = (int) first[added] & ID_MASK;
+            else used++;
+            count++;
+            if (isJoin) {
+                first[added] = key | heads[head];
+                second[added] = (long) SHUT << FORM_AT | LOWER_MASK;
+            } else {
+                boolean isAlone = form >= many.length || many[form] == 0;
+                int depth = isAlone ? 0 : 1 + (int) Math.max(second[one] >>> DEPTH_AT & DEPTH_MASK,
+                        second[other] >>> DEPTH_AT & DEPTH_MASK);
+                first[added] = (first[one] | first[other]) & ((long) OPEN << UPPER) | heads[head];
+                second[added] = parts | (long) depth << DEPTH_AT | UNKNOWN;
+            }
+            heads[head] = added;
+            return added;
+        }
+
+        boolean isFull() {
+            return count + RESERVE >= second.length;
+        }
+
+        /** Whether so much is marked that it is time to forget, or to make more room. */
+        boolean isCrowded() {
+            return live > second.length / CROWDED_SHARE;
+        }
+
+        boolean canGrow() {
+            return second.length < MOST_NODES;
+        }
+
+        /** After a PARENT was told, or how a PARAMETER is. */
+        void forgetReach() {
+            for (int id = LEAVES; id < used && id < second.length; id++) second[id] |= DEPTH_MASK;
+        }
+
+        /** Whether no JOIN is in it, and it is not so deep that one had better be. */
+        boolean isFlat(int id) {
+            return isThere(id) && first[id] >= 0 && ((int) (second[id] >>> DEPTH_AT) & DEPTH_MASK) < DEEPEST_FLAT;
+        }
+
+        void need(int id) {
+            if (id < LEAVES || id >= used || id >= second.length || id >> 6 >= marks.length) return;
+            long bit = 1L << (id & 63);
+            if ((marks[id >> 6] & bit) != 0) return;
+            marks[id >> 6] |= bit;
+            first[id] = first[id] & ~(long) ID_MASK | marked;
+            marked = id;
+            live++;
+        }
+
+        boolean isNeeded(int id) {
+            return id < LEAVES || id >> 6 < marks.length && (marks[id >> 6] >> (id & 63) & 1) == 1;
+        }
+
+        /** What was found out about a JOIN and a few levels of what is in it stays. */
+        void pin(int id, int level) {
+            if (id < LEAVES || id >= used || id >= second.length || id >> 6 >= pins.length || level < 0) return;
+            if (first[id] >= 0) return;
+            pins[id >> 6] |= 1L << (id & 63);
+            int form = (int) (second[id] >>> FORM_AT);
+            int one = (int) (second[id] >>> ONE_AT) & ID_MASK;
+            int other = (int) (second[id] >>> OTHER_AT) & ID_MASK;
+            if (form == SHUT) return;
+            pin(one, form == LINKED ? level : level - 1);
+            if (form != LINKED) pin(other, level - 1);
+        }
+
+        /** Marks what is in those that are marked; what was found out about JOINS is forgotten, if it isn't pinned. */
+        void needInner(boolean isForgotten) {
+            for (int n = 0; n < MOST_NODES && marked > 0 && marked < second.length; n++) {
+                int at = marked;
+                marked = (int) first[at] & ID_MASK;
+                if (first[at] < 0) {
+                    need((int) (first[at] >>> UPPER) & ID_MASK);
+                    need((int) (first[at] >>> ID_BITS) & ID_MASK);
+                    boolean isPinned = at >> 6 < pins.length && (pins[at >> 6] >> (at & 63) & 1) == 1;
+                    if (isForgotten && !isPinned) second[at] = (long) SHUT << FORM_AT | second[at] & LOWER_MASK;
+                }
+                int form = (int) (second[at] >>> FORM_AT);
+                if (form == SHUT) continue;
+                need((int) (second[at] >>> ONE_AT) & ID_MASK);
+                if (form != LINKED) need((int) (second[at] >>> OTHER_AT) & ID_MASK);
+            }
+        }
+
+        void unmark() {
+            Arrays.fill(marks, 0L);
+            Arrays.fill(pins, 0L);
+            marked = 0;
+            live = 0;
+        }
+
+        void grow() {
+            int length = Math.min(second.length * GROWTH, MOST_NODES);
+            first = Arrays.copyOf(first, length);
+            second = Arrays.copyOf(second, length);
+            marks = Arrays.copyOf(marks, (length >> 6) + 1);
+            pins = Arrays.copyOf(pins, (length >> 6) + 1);
+            int chains = heads.length;
+            for (int n = 0; n < ID_BITS && chains * NODES_A_HEAD < length; n++) chains *= 2;
+            heads = new int[chains];
+        }
+
+        /** Gives back what isn't marked. */
+        void sweep() {
+            Arrays.fill(heads, 0);
+            int left = LEAVES;
+            count = LEAVES;
+            for (int id = LEAVES; id < used && id < second.length; id++) {
+                if (!isNeeded(id)) continue;
+                long key = first[id] < 0 ? first[id] & ~(long) ID_MASK : second[id] & ~LOWER_MASK;
+                int head = (int) (key * SPREAD >>> 40) & (heads.length - 1);
+                first[id] = first[id] & ~(long) ID_MASK | heads[head];
+                heads[head] = id;
+                count++;
+                left = id + 1;
+            }
+            used = left;
+            free = 0;
+            for (int id = used - 1; id >= LEAVES; id--) {
+                if (isNeeded(id)) continue;
+                second[id] = (long) FREE << FORM_AT;
+                first[id] = free;
+                free = id;
+            }
+            unmark();
+        }
+    }
+
+    /** What was found out about pairs of TYPES; if there are too many, the older ones give way. */
     private static final class Pairs {
-        /** 0 where nothing is; else the numbers of both TYPES, that for the pair, and a bit that is 1. */
+        /** 0 where nothing is; else the numbers of both TYPES and that for the pair. */
         private long[] slots = new long[FIRST_SLOTS];
         private int count = 0;
+        private int turn = 0;
 
         void forget() {
             if (count > 0) Arrays.fill(slots, 0L);
@@ -748,31 +1020,23 @@ public final class Hornbook {
         }
 
         /** NONE, if there is no such pair. */
-        int find(Type a, Type b) {
-            long key = ((long) a.number << NUMBER_BITS) | b.number;
-            int slot = (int) (key * SPREAD >>> 40) & (slots.length - 1);
-            for (int i = 0; i < slots.length && slots[slot] != 0; i++) {
-                if (slots[slot] >>> (NUMBER_BITS + 1) == key) {
-                    return (int) (slots[slot] >>> 1) & ((1 << NUMBER_BITS) - 1);
-                }
-                slot = (slot + 1) & (slots.length - 1);
+        int find(int a, int b) {
+            long key = (long) a << ID_BITS | b;
+            int slot = (int) (key * SPREAD >>> 40) & (slots.length - SLOTS_A_ROW);
+            for (int i = slot; i < slot + SLOTS_A_ROW && i < slots.length; i++) {
+                if (slots[i] >>> VALUE_BITS == key) return (int) slots[i] & ID_MASK;
             }
             return NONE;
         }
 
-        void keep(Type a, Type b, int number) {
-            if (count * 4 >= slots.length * 3) makeSpace();
-            long key = ((long) a.number << NUMBER_BITS) | b.number;
-            add((key << NUMBER_BITS | number) << 1 | 1);
+        void keep(int a, int b, int number) {
+            if (count * 2 >= slots.length && slots.length < MOST_SLOTS) grow();
+            add(((long) a << ID_BITS | b) << VALUE_BITS | number);
         }
 
-        private void makeSpace() {
-            if (slots.length >= MOST_SLOTS) {
-                forget();
-                return;
-            }
+        private void grow() {
             long[] old = slots;
-            slots = new long[old.length * 2];
+            slots = new long[Math.min(old.length * GROWTH, MOST_SLOTS)];
             count = 0;
             for (int i = 0; i < old.length; i++) {
                 if (old[i] != 0) add(old[i]);
@@ -780,469 +1044,688 @@ public final class Hornbook {
         }
 
         private void add(long entry) {
-            long key = entry >>> (NUMBER_BITS + 1);
-            int slot = (int) (key * SPREAD >>> 40) & (slots.length - 1);
-            for (int i = 0; i < slots.length && slots[slot] != 0; i++) slot = (slot + 1) & (slots.length - 1);
-            slots[slot] = entry;
-            count++;
+            long key = entry >>> VALUE_BITS;
+            int slot = (int) (key * SPREAD >>> 40) & (slots.length - SLOTS_A_ROW);
+            int place = NONE;
+            for (int i = slot; i < slot + SLOTS_A_ROW && i < slots.length; i++) {
+                if (slots[i] == 0 || slots[i] >>> VALUE_BITS == key) place = i;
+            }
+            if (place == NONE) {
+                turn++;
+                place = slot + (turn & SLOTS_A_ROW - 1);
+            }
+            if (place >= slots.length) return;
+            if (slots[place] == 0) count++;
+            slots[place] = entry;
+        }
+
+        /** To be called as long as what is needed is marked. */
+        void purge(Nodes nodes) {
+            for (int i = 0; i < slots.length; i++) {
+                if (slots[i] == 0) continue;
+                int a = (int) (slots[i] >>> VALUE_BITS + ID_BITS) & ID_MASK;
+                int b = (int) (slots[i] >>> VALUE_BITS) & ID_MASK;
+                boolean isKept = nodes.isNeeded(a) && nodes.isNeeded(b)
+                        && (b >= LEAVES || nodes.isNeeded((int) slots[i] & ID_MASK));
+                if (isKept) continue;
+                slots[i] = 0;
+                count--;
+            }
         }
     }
 
-    /** A question that stands open: whether a is UNDER b, or what both come to be together. */
+    /** A question that stands open. */
     private static final class Step {
-        Type a;
-        Type b;
+        int kind;
+        /** The JOIN that is looked at, for FORM. */
+        int self;
+        int a;
+        /** A TYPE, for ORDER and FORM. */
+        int b;
+        /** A SORT, for ROAD; how deep it has to be, for DEPTH; how many places were left, for LINE. */
+        int wanted;
         /** Those on their ROADS that are of one SORT, whose TYPES are gone along. */
-        Type x;
-        Type y;
-        /** How many of these have been asked for. */
+        int x;
+        int y;
+        /** What the TYPES in these come to be together. */
+        int one;
+        int other;
+        int phase;
+        int place;
         int turn;
-        /** What they come to be together. */
-        Type one;
-        Type other;
+        int best;
+        /** Whether a part was asked for the other way round, too. */
+        boolean isBack;
+        /** Whether what was asked last for this has its answer by now. */
+        boolean isAnswered;
 
-        void open(Type low, Type high) {
-            a = low;
-            b = high;
-            x = null;
-            y = null;
-            turn = 0;
-            one = null;
-            other = null;
+        void passPart() {
+            turn++;
+            isBack = false;
         }
 
-        boolean isWhole() {
-            return x == null || x.of == null || turn >= x.of.many;
-        }
-
-        Type partOfX() {
-            if (x == null) return null;
-            return turn == 0 ? x.one : x.other;
-        }
-
-        Type partOfY() {
-            if (y == null) return null;
-            return turn == 0 ? y.one : y.other;
-        }
-
-        int how() {
-            return x == null || x.of == null ? FIXED : x.of.howAt(turn);
-        }
-
-        void take(Type part) {
+        void take(int part) {
             if (turn == 0) one = part;
             else other = part;
-            turn++;
+            passPart();
         }
     }
 
     /** All TYPES that are in use, and how they lie to one another. */
     private static final class Room {
-        final Type any = leaf(0, 0);
-        final Type nothing = leaf(1, 0);
-        final Type firstParameter = leaf(3, HAS_FIRST);
-        final Type secondParameter = leaf(4, HAS_SECOND);
-        final ArrayList<Type> told = new ArrayList<>();
+        final ArrayList<Sort> sorts = new ArrayList<>();
+        final Nodes nodes = new Nodes();
+        final int[] told = new int[MOST_TYPES];
+        int tellings = 0;
         /** What else must stay, if it is tidied, the latest last. */
-        final ArrayList<Type> held = new ArrayList<>();
-        /** Those that are in use, by their numbers, and behind them those that may be used again. */
-        private final ArrayList<Type> kept = new ArrayList<>();
-        private int used = LEAVES;
-        private int limit = FIRST_LIMIT;
-        private Type[] heads = new Type[FIRST_LIMIT / TYPES_A_HEAD];
-        /** The first one of those that are marked, and whose inner ones are not yet. */
-        private Type marked = null;
-        /** Whether it was tidied since the last question was asked. */
-        private boolean isTidied = false;
-        /** Whether there was no room for a TYPE that was wanted. */
-        boolean isOver = false;
-        /** For a pair whether one is UNDER the other. */
-        private final Pairs orders = new Pairs();
-        /** For a pair the number of its JOIN. */
-        private final Pairs joins = new Pairs();
-        private final ArrayList<Step> asked = new ArrayList<>();
+        private int[] held = new int[FIRST_HELD];
+        int holding = 0;
+        /** For a pair whether one is UNDER the other; for a TYPE and a SORT that on its ROAD. */
+        private final Pairs pairs = new Pairs();
+        /** The questions that stand open, each one for the one before it. */
+        private final ArrayList<Step> steps = new ArrayList<>();
         private int asking = 0;
-        private final ArrayList<Step> met = new ArrayList<>();
-        private int meeting = 0;
-        private final Road way = new Road();
+        /** Whether something was given back since the last question was asked. */
+        private boolean isTidied = false;
+        /** The last answer. */
+        private int last = NONE;
+        /** How many places of a LINE are still to be passed. */
+        private int left = 0;
+        /** How long LINES are, as far as there is room: a number and a length. */
+        private long[] sizes = new long[0];
 
         Room() {
-            Type ownType = leaf(2, HAS_OWN);
-            kept.add(any);
-            kept.add(nothing);
-            kept.add(ownType);
-            kept.add(firstParameter);
-            kept.add(secondParameter);
-            told.add(any);
-            told.add(nothing);
-            told.add(ownType);
+            for (int i = 0; i <= OWN; i++) told[i] = i;
+            tellings = OWN + 1;
         }
 
-        private static Type leaf(int number, int marks) {
-            Type made = new Type();
-            made.size = 1;
-            made.marks = marks;
-            made.number = number;
-            made.hash = (number + 1) * SPREAD_FIRST;
-            return made;
+        int tell(int id) {
+            if (tellings >= told.length) return NONE;
+            told[tellings] = id;
+            tellings++;
+            return tellings - 1;
         }
 
-        void hold(Type type) {
-            if (type != null) held.add(type);
+        int toldAt(int type) {
+            return type < 0 || type >= tellings || type >= told.length ? NONE : told[type];
+        }
+
+        void hold(int id) {
+            if (id < LEAVES) return;
+            if (holding >= held.length) held = Arrays.copyOf(held, held.length * 2);
+            held[holding] = id;
+            holding++;
         }
 
         void letGo(int from) {
-            for (int i = held.size() - 1; i >= from && i >= 0; i--) held.remove(i);
+            holding = Math.min(holding, Math.max(from, 0));
         }
 
         /** To be called only between two questions, when all that is still wanted is told or held. */
         void tidy() {
             isTidied = false;
-            limit = Math.min(limit, LAST_LIMIT);
-            if (used >= limit) giveBack();
+            if (nodes.isFull()) giveBack();
         }
 
-        void tidyNow() {
-            isTidied = false;
-            limit = Math.min(limit, LAST_LIMIT);
-            giveBack();
-        }
-
-        boolean isCrowded() {
-            return used > CROWDED_LIMIT;
-        }
-
-        /** What is given back while a question stands open is asked for again: the second time the room grows. */
-        private void giveBack() {
-            boolean mayGrow = limit < LAST_LIMIT;
-            if (!isTidied || !mayGrow) {
-                needAll(told);
-                needAll(held);
-                needSteps(asked, asking);
-                needSteps(met, meeting);
-                for (int i = 0; i < way.count; i++) need(way.at(i));
-                needInner();
-                sortOut();
-                forget();
-            }
-            if (mayGrow && (isTidied || used > limit / 2)) {
-                limit *= 2;
-                heads = new Type[limit / TYPES_A_HEAD];
-            }
-            if (!mayGrow && used > FULL) limit = GREATEST_INT;
-            isTidied = true;
-            link();
-        }
-
-        private void needAll(ArrayList<Type> row) {
-            for (int i = 0; i < row.size(); i++) need(row.get(i));
-        }
-
-        private void needSteps(ArrayList<Step> row, int count) {
-            for (int i = 0; i < count && i < row.size(); i++) {
-                Step at = row.get(i);
-                need(at.a);
-                need(at.b);
-                need(at.x);
-                need(at.y);
-                need(at.one);
-                need(at.other);
-            }
-        }
-
-        private void needInner() {
-            for (int n = 0; n < MOST_KEPT && marked != null; n++) {
-                Type at = marked;
-                marked = at.next;
-                need(at.one);
-                need(at.other);
-            }
-        }
-
-        /** A TYPE is marked once only; the chains of next are made anew afterwards. */
-        private void need(Type type) {
-            if (type == null || type.of == null || type.isNeeded) return;
-            type.isNeeded = true;
-            type.next = marked;
-            marked = type;
-        }
-
-        private void sortOut() {
-            int left = LEAVES;
-            for (int i = LEAVES; i < used && i < kept.size(); i++) {
-                Type at = kept.get(i);
-                if (!at.isNeeded) continue;
-                kept.set(i, kept.get(left));
-                kept.set(left, at);
-                at.number = left;
-                at.isNeeded = false;
-                at.first = null;
-                at.second = null;
-                left++;
-            }
-            used = left;
-        }
-
-        private void link() {
-            for (int i = 0; i < heads.length; i++) heads[i] = null;
-            for (int i = LEAVES; i < used && i < kept.size(); i++) {
-                Type at = kept.get(i);
-                int head = at.hash & (heads.length - 1);
-                at.next = heads[head];
-                heads[head] = at;
-            }
-        }
-
-        Type make(Sort of, Type one, Type other) {
-            int hash = of.number + 1;
-            if (one != null) hash = (hash ^ one.hash) * SPREAD_FIRST;
-            if (other != null) hash = (hash ^ (hash >>> 15) ^ other.hash) * SPREAD_SECOND;
-            hash ^= hash >>> 16;
-            int head = hash & (heads.length - 1);
-            for (Type at = heads[head]; at != null; at = at.next) {
-                if (at.of == of && at.one == one && at.other == other) return at;
-            }
-            if (used >= MOST_KEPT) {
-                isOver = true;
-                return any;
-            }
-            if (used >= kept.size()) kept.add(new Type());
-            Type added = kept.get(used);
-            added.of = of;
-            added.one = one;
-            added.other = other;
-            added.depth = 0;
-            added.marks = HAS_SORT << of.number;
-            long size = 1;
-            for (int i = 0; i < 2; i++) {
-                Type in = i == 0 ? one : other;
-                if (in == null) continue;
-                added.depth = Math.max(added.depth, in.depth + 1);
-                added.marks |= in.marks;
-                size += in.size;
-            }
-            added.size = (int) Math.min(size, (long) GREATEST_INT);
-            added.number = used;
-            added.hash = hash;
-            added.first = null;
-            added.second = null;
-            added.isNeeded = false;
-            added.next = heads[head];
-            heads[head] = added;
-            used++;
-            return added;
-        }
-
-        /** Puts TYPES in the place of the PARAMETERS and of the OWN TYPE; null leaves one as it is. */
-        private Type put(Type in, Type one, Type other, Type own, int level) {
-            int wanted = (one == null ? 0 : HAS_FIRST) | (other == null ? 0 : HAS_SECOND) | (own == null ? 0 : HAS_OWN);
-            if (in == null || (in.marks & wanted) == 0 || level > MOST_LEVELS) return in;
-            if (in == firstParameter) return one;
-            if (in == secondParameter) return other;
-            if (in.of == null) return own;
-            Type first = put(in.one, one, other, own, level + 1);
-            Type second = put(in.other, one, other, own, level + 1);
-            if (first != null && first.depth >= DEEPEST_TOLD) first = any;
-            if (second != null && second.depth >= DEEPEST_TOLD) second = any;
-            return make(in.of, first, second);
-        }
-
-        private void climb(Type from, Road road, int level) {
-            if (from == null || from.of == null || level > MOST_SORTS) return;
-            int place = road.placeOf(from.of);
-            if (place >= 0) {
-                // what is the SAME has the same way up, so only the first one need be climbed
-                if (road.at(place) != from) road.isMixed = true;
-                return;
-            }
-            if (road.count >= road.row.length) return;
-            road.row[road.count] = from;
-            road.count++;
-            if (from.first == null) from.first = put(from.of.first, from.one, from.other, null, 0);
-            climb(from.first, road, level + 1);
-            if (from.second == null) from.second = put(from.of.second, from.one, from.other, null, 0);
-            climb(from.second, road, level + 1);
-        }
-
-        /** The TYPE of a SORT on the ROAD of one; null if there is none. */
-        Type onRoad(Type from, Sort sort) {
-            Type at = from;
-            for (int step = 0; step <= MOST_SORTS; step++) {
-                if (at == null || at.of == null || at.of == sort) break;
-                Sort of = at.of;
-                if (isAbove(of.first, sort)) {
-                    if (at.first == null) at.first = put(of.first, at.one, at.other, null, 0);
-                    at = at.first;
-                } else if (isAbove(of.second, sort)) {
-                    if (at.second == null) at.second = put(of.second, at.one, at.other, null, 0);
-                    at = at.second;
-                } else {
-                    at = null;
-                }
-            }
-            return at == null || at.of != sort ? null : at;
-        }
-
-        private static boolean isAbove(Type from, Sort sort) {
-            return from != null && from.of != null && (from.of.above >> sort.number & 1) == 1;
-        }
-
-        /** What was found out may hold no longer. */
-        void forget() {
-            orders.forget();
-            joins.forget();
+        /** What was found out may hold no longer; nothing but what is told stays. */
+        void startAnew() {
+            holding = 0;
+            asking = 0;
+            pairs.forget();
+            Arrays.fill(sizes, 0L);
+            for (int i = 0; i < tellings && i < told.length; i++) nodes.need(told[i]);
+            nodes.needInner(true);
+            nodes.sweep();
+            nodes.forgetReach();
         }
 
         /**
-         * Whether a is UNDER b; also if there is neither. Each step goes down in one TYPE and along the ROAD of the
-         * other, to SORTS with smaller numbers, so none comes again while it stands open.
+         * Forgets what nobody needs; the second time within one question there is made more room, too. If all that was found out about JOINS is too much, it is forgotten, too, but for
+         * what lies next to an open question, as else that could never be answered.
          */
-        boolean goesUnder(Type a, Type b) {
-            int answer = known(a, b);
-            if (answer != NONE) return answer == YES;
-            if (meeting == 0) isTidied = false;
+        private void giveBack() {
+            needRoots(false);
+            nodes.needInner(false);
+            if ((isTidied || nodes.isCrowded()) && nodes.canGrow()) {
+                nodes.grow();
+            } else if (nodes.isCrowded()) {
+                nodes.unmark();
+                needRoots(true);
+                nodes.needInner(true);
+            }
+            isTidied = true;
+            pairs.purge(nodes);
+            Arrays.fill(sizes, 0L);
+            nodes.sweep();
+        }
+
+        private void needRoots(boolean isPinned) {
+            for (int i = 0; i < tellings && i < told.length; i++) nodes.need(told[i]);
+            for (int i = 0; i < holding && i < held.length; i++) needRoot(held[i], isPinned);
+            for (int i = 0; i < asking && i < steps.size(); i++) {
+                Step at = steps.get(i);
+                needRoot(at.a, isPinned);
+                if (at.kind == ORDER || at.kind == FORM) needRoot(at.b, isPinned);
+                needRoot(at.x, isPinned);
+                needRoot(at.y, isPinned);
+                needRoot(at.one, isPinned);
+                needRoot(at.other, isPinned);
+            }
+            needRoot(last, isPinned);
+        }
+
+        private void needRoot(int id, boolean isPinned) {
+            nodes.need(id);
+            if (isPinned) nodes.pin(id, DEEPEST_TOLD);
+        }
+
+        /** Puts TYPES in the place of the PARAMETERS and of the OWN TYPE; NONE leaves one as it is. */
+        int put(int in, int one, int other, int own, int level) {
+            int wanted = (one == NONE ? 0 : HAS_FIRST) | (other == NONE ? 0 : HAS_SECOND) | (own == NONE ? 0 : HAS_OWN);
+            if ((nodes.openOf(in) & wanted) == 0 || level > MOST_LEVELS) return in;
+            if (in == FIRST_PARAMETER) return one;
+            if (in == SECOND_PARAMETER) return other;
+            if (in == OWN) return own;
+            int first = put(nodes.partOf(in, 0), one, other, own, level + 1);
+            int second = put(nodes.partOf(in, 1), one, other, own, level + 1);
+            if (nodes.depthOf(first) >= DEEPEST_TOLD) first = ANY_TYPE;
+            if (nodes.depthOf(second) >= DEEPEST_TOLD) second = ANY_TYPE;
+            return nodes.make(nodes.formOf(in), first, second);
+        }
+
+        /** As put, for the PARAMETERS; there are the TYPES in it, and there in cut what they are inside of a SORT. */
+        int putParts(int in, int there, int cut) {
+            if (in == FIRST_PARAMETER) return nodes.through(nodes.partOf(there, 0));
+            if (in == SECOND_PARAMETER) return nodes.through(nodes.partOf(there, 1));
+            return put(in, nodes.partOf(cut, 0), nodes.partOf(cut, 1), NONE, 0);
+        }
+
+        int joinOf(int a, int b) {
+            int p = nodes.through(a);
+            int q = nodes.through(b);
+            if (p == q) return p;
+            if (p == ANY_TYPE || q == ANY_TYPE) return ANY_TYPE;
+            if (p == NOTHING_TYPE) return q;
+            if (q == NOTHING_TYPE) return p;
+            return nodes.through(nodes.make(SHUT, p, q));
+        }
+
+        int depthOf(int id) {
+            int at = nodes.through(id);
+            if (!nodes.isJoin(at)) return nodes.depthOf(at);
+            ask(REACH, nodes.joinedOf(at, 0), NONE);
+            ask(REACH, nodes.joinedOf(at, 1), NONE);
+            int deepest = 0;
+            for (int n = 0; n < MOST_NODES; n++) {
+                int found = ask(DEPTH, at, n == 0 ? 0 : deepest + 1);
+                if (found < deepest) break;
+                deepest = found;
+            }
+            return deepest;
+        }
+
+        int lineAt(int id, int k) {
+            if (id == NONE || k < 0) return NO_PLACE;
+            left = k;
+            if (k >= LONG_LINE && sizes.length == 0) sizes = new long[MOST_SIZES];
+            return ask(LINE, id, NONE);
+        }
+
+        /** Whether a is UNDER b; also if there is neither. */
+        boolean goesUnder(int a, int b) {
+            return a == NONE || b == NONE ? a == b : ask(ORDER, a, b) == YES;
+        }
+
+        /**
+         * Each step goes down in one TYPE and along the ROAD of the other, to SORTS with smaller numbers, so none comes
+         * again while it stands open.
+         */
+        int ask(int kind, int a, int b) {
             asking = 0;
-            ask(a, b);
-            for (int n = 0; n < MOST_STEPS && asking > 0 && answer != NO; n++) {
-                if (used >= limit) giveBack();
-                Step top = asked.get(asking - 1);
-                if (top.x == null) top.x = onRoad(top.a, top.b.of);
-                if (top.x == null) {
-                    answer = NO;
-                } else if (top.isWhole()) {
-                    orders.keep(top.a, top.b, YES);
-                    asking--;
-                } else {
-                    answer = askPart(top);
+            last = NONE;
+            isTidied = false;
+            open(kind, a, b);
+            for (int n = 0; n < MOST_STEPS && asking > 0 && asking <= steps.size(); n++) {
+                if (nodes.isFull()) giveBack();
+                Step top = steps.get(asking - 1);
+                switch (top.kind) {
+                    case ORDER: stepOrder(top); break;
+                    case FORM: stepForm(top); break;
+                    case MEET: stepMeet(top); break;
+                    case PARTS: stepParts(top); break;
+                    case ROAD: stepRoad(top); break;
+                    case SMALL: stepSmall(top); break;
+                    case REACH: stepReach(top); break;
+                    case DEPTH: stepDepth(top); break;
+                    default: stepLine(top);
                 }
             }
-            boolean isUnder = asking == 0;
-            for (; asking > 0; asking--) {
-                Step top = asked.get(asking - 1);
-                if (answer == NO) orders.keep(top.a, top.b, NO);
-            }
-            return isUnder;
+            return last;
+        }
+
+        private void open(int kind, int a, int b) {
+            if (asking >= steps.size()) steps.add(new Step());
+            Step added = steps.get(asking);
+            asking++;
+            added.kind = kind;
+            added.a = a;
+            added.b = b;
+            added.wanted = b;
+            added.x = NONE;
+            added.y = NONE;
+            added.one = ANY_TYPE;
+            added.other = ANY_TYPE;
+            added.phase = 0;
+            added.place = 0;
+            added.turn = 0;
+            added.best = 0;
+            added.isBack = false;
+            added.isAnswered = false;
+        }
+
+        private void answer(int answer) {
+            last = answer;
+            asking--;
         }
 
         /** Whether a is UNDER b, as far as it is known at once; NONE if it isn't. */
-        private int known(Type a, Type b) {
-            if (a == b) return YES;
-            if (a == null || b == null) return NO;
-            if (a == nothing || b == any) return YES;
-            if (b.of == null || !isAbove(a, b.of)) return NO;
-            return orders.find(a, b);
+        private int known(int a, int b) {
+            if (a == b || a == NOTHING_TYPE || b == ANY_TYPE) return YES;
+            // what is in a JOIN is UNDER it
+            if (nodes.isJoin(b) && (nodes.joinedOf(b, 0) == a || nodes.joinedOf(b, 1) == a)) return YES;
+            int low = nodes.formOf(a);
+            int high = nodes.formOf(b);
+            if (low == SHUT || high == SHUT) return NONE;
+            if (low >= sorts.size() || high >= sorts.size() || !sorts.get(low).goesTo(high)) return NO;
+            return pairs.find(a, b);
         }
 
-        private void ask(Type low, Type high) {
-            Step added = stepAt(asked, asking);
-            added.open(low, high);
-            added.y = high;
-            asking++;
+        /** Whether one is UNDER the other, when it is known; NONE, and it is asked for, when it isn't. */
+        private int order(Step s, int a, int b) {
+            if (s.isAnswered) {
+                s.isAnswered = false;
+                return last;
+            }
+            int low = nodes.through(a);
+            int high = nodes.through(b);
+            if (low == high || low == NOTHING_TYPE || high == ANY_TYPE) return YES;
+            open(ORDER, low, high);
+            s.isAnswered = true;
+            return NONE;
         }
 
-        private int askPart(Step top) {
-            Type x = top.partOfX();
-            Type y = top.partOfY();
-            int how = top.how();
-            top.turn++;
-            if (how == FIXED) return x == y ? YES : NO;
-            Type low = how == OUT ? x : y;
-            Type high = how == OUT ? y : x;
-            int answer = known(low, high);
-            if (answer == NONE) ask(low, high);
-            return answer;
+        /** That of a SORT on the ROAD of one, when it is known; NONE, and it is asked for, when it isn't. */
+        private int member(Step s, int from, int sort) {
+            if (s.isAnswered) {
+                s.isAnswered = false;
+                return last;
+            }
+            int at = nodes.through(from);
+            if (nodes.formOf(at) == sort) return at;
+            int found = pairs.find(at, sort);
+            if (found != NONE) return found;
+            open(ROAD, at, sort);
+            s.isAnswered = true;
+            return NONE;
         }
 
-        private static Step stepAt(ArrayList<Step> row, int place) {
-            for (int i = row.size(); i <= place; i++) row.add(new Step());
-            return row.get(place);
+        private void stepOrder(Step s) {
+            s.a = nodes.through(s.a);
+            s.b = nodes.through(s.b);
+            s.x = nodes.through(s.x);
+            if (s.phase == 0) {
+                int answer = known(s.a, s.b);
+                if (answer != NONE) {
+                    answer(answer);
+                    return;
+                }
+                int shut = nodes.isShut(s.a) ? s.a : nodes.isShut(s.b) ? s.b : NONE;
+                if (shut != NONE) {
+                    open(FORM, shut, NONE);
+                    return;
+                }
+                s.phase = 1;
+            }
+            int form = nodes.formOf(s.b);
+            if (s.phase == 1) {
+                s.x = member(s, s.a, form);
+                if (s.x == NONE) return;
+                s.phase = 2;
+            }
+            int answer = form >= sorts.size() ? NO : YES;
+            Sort sort = answer == NO ? null : sorts.get(form);
+            while (answer == YES && sort != null && s.turn < sort.many) {
+                int x = nodes.through(nodes.partOf(s.x, s.turn));
+                int y = nodes.through(nodes.partOf(s.b, s.turn));
+                int how = sort.howAt(s.turn);
+                if (how == FIXED && !s.isAnswered && !nodes.isJoin(x) && !nodes.isJoin(y)) {
+                    answer = x == y ? YES : NO;
+                } else if (how == IN || s.isBack) {
+                    answer = order(s, y, x);
+                } else {
+                    answer = order(s, x, y);
+                }
+                if (answer == NONE) return;
+                if (how == FIXED && !s.isBack && x != y) s.isBack = true;
+                else s.passPart();
+            }
+            pairs.keep(s.a, s.b, answer);
+            answer(answer);
         }
 
-        Type joined(Type a, Type b) {
-            isTidied = false;
-            meeting = 0;
-            Type last = meet(a, b);
-            for (int n = 0; n < MOST_STEPS && meeting > 0; n++) {
-                Step top = met.get(meeting - 1);
-                if (last != null) top.take(last);
-                if (used >= limit) giveBack();
-                if (top.isWhole()) {
-                    last = top.x == null || top.x.of == null ? any : make(top.x.of, top.one, top.other);
-                    joins.keep(top.a, top.b, last.number);
-                    meeting--;
+        /** Finds what a JOIN comes to be. */
+        private void stepForm(Step s) {
+            if (s.phase == 0) {
+                int at = nodes.through(s.a);
+                if (!nodes.isShut(at)) {
+                    answer(at);
+                    return;
+                }
+                s.self = at;
+                s.a = nodes.joinedOf(at, 0);
+                s.b = nodes.joinedOf(at, 1);
+                s.phase = 1;
+            }
+            s.a = nodes.through(s.a);
+            s.b = nodes.through(s.b);
+            if (s.phase == 1) {
+                int shut = nodes.isShut(s.a) ? s.a : nodes.isShut(s.b) ? s.b : NONE;
+                if (shut != NONE) {
+                    open(FORM, shut, NONE);
+                    return;
+                }
+                s.phase = 2;
+            }
+            int answer = s.phase == 2 ? order(s, s.a, s.b) : order(s, s.b, s.a);
+            if (answer == NONE) return;
+            if (answer == YES) {
+                link(s, s.phase == 2 ? s.b : s.a);
+            } else if (s.phase == 2) {
+                s.phase = 3;
+            } else {
+                s.kind = MEET;
+                s.phase = 0;
+            }
+        }
+
+        private void link(Step s, int target) {
+            nodes.putForm(s.self, LINKED, target, ANY_TYPE);
+            last = target;
+            asking--;
+        }
+
+        /** Goes along the ROAD of a to the next one for which there is one of the same SORT on the ROAD of b. */
+        private void stepMeet(Step s) {
+            s.a = nodes.through(s.a);
+            s.b = nodes.through(s.b);
+            s.x = nodes.through(s.x);
+            int low = nodes.formOf(s.a);
+            int high = nodes.formOf(s.b);
+            int sort = NONE;
+            if (low < sorts.size() && high < sorts.size()) {
+                Sort from = sorts.get(low);
+                while (s.place < from.length && !sorts.get(high).goesTo(from.wayAt(s.place))) s.place++;
+                sort = from.wayAt(s.place);
+            }
+            if (sort == NONE) {
+                link(s, ANY_TYPE);
+                return;
+            }
+            if (s.phase == 0) {
+                s.x = member(s, s.a, sort);
+                if (s.x == NONE) return;
+                s.phase = 1;
+            }
+            s.y = member(s, s.b, sort);
+            if (s.y == NONE) return;
+            s.kind = PARTS;
+            s.turn = 0;
+            s.one = ANY_TYPE;
+            s.other = ANY_TYPE;
+            s.isBack = false;
+        }
+
+        /** Whether the parts go together, one by one, and what they come to be. */
+        private void stepParts(Step s) {
+            s.a = nodes.through(s.a);
+            s.b = nodes.through(s.b);
+            s.x = nodes.through(s.x);
+            s.y = nodes.through(s.y);
+            int form = nodes.formOf(s.x);
+            Sort sort = form >= sorts.size() ? null : sorts.get(form);
+            while (sort != null && s.turn < sort.many) {
+                int x = nodes.through(nodes.partOf(s.x, s.turn));
+                int y = nodes.through(nodes.partOf(s.y, s.turn));
+                int how = sort.howAt(s.turn);
+                if (how == OUT) {
+                    s.take(joinOf(x, y));
                     continue;
                 }
-                Type x = top.partOfX();
-                Type y = top.partOfY();
-                switch (top.how()) {
-                    case FIXED:
-                        last = x;
-                        break;
-                    case OUT:
-                        last = meet(x, y);
-                        break;
-                    default:
-                        last = goesUnder(x, y) ? x : y;
+                int answer;
+                if (how == FIXED && !s.isAnswered && !nodes.isJoin(x) && !nodes.isJoin(y)) answer = x == y ? YES : NO;
+                else answer = s.isBack ? order(s, y, x) : order(s, x, y);
+                if (answer == NONE) return;
+                // FIXED asks for both ways to be so, IN for one of them
+                boolean isLast = how == FIXED ? answer == NO || s.isBack || x == y : answer == YES || s.isBack;
+                if (!isLast) {
+                    s.isBack = true;
+                } else if (answer == YES) {
+                    s.take(how == IN && s.isBack ? y : x);
+                } else {
+                    s.kind = MEET;
+                    s.phase = 0;
+                    s.place++;
+                    return;
                 }
             }
-            meeting = 0;
-            return last == null ? any : last;
+            putForm(s, form);
         }
 
-        /** The JOIN, if it is known at once; null if not, and then one step more stands open for it. */
-        private Type meet(Type a, Type b) {
-            if (a == null || b == null) return any;
-            int number = joins.find(a, b);
-            if (number >= 0 && number < used && number < kept.size()) return kept.get(number);
-            Step added = stepAt(met, meeting);
-            added.open(a, b);
-            meeting++;
-            Type found = goesUnder(a, b) ? b : goesUnder(b, a) ? a : null;
-            boolean isOpen = false;
-            way.clear();
-            if (found == null) climb(a, way, 0);
-            for (int i = 0; i < way.count && !isOpen; i++) {
-                added.x = way.at(i);
-                added.y = added.x == null ? null : onRoad(b, added.x.of);
-                isOpen = added.y != null;
-                for (added.turn = 0; isOpen && !added.isWhole(); added.turn++) {
-                    Type x = added.partOfX();
-                    Type y = added.partOfY();
-                    if (added.how() == FIXED) isOpen = x == y;
-                    if (added.how() == IN) isOpen = goesUnder(x, y) || goesUnder(y, x);
+        private void putForm(Step s, int form) {
+            int one = nodes.through(s.one);
+            int other = nodes.through(s.other);
+            if (nodes.isFlat(one) && nodes.isFlat(other)) {
+                link(s, nodes.make(form, one, other));
+                return;
+            }
+            nodes.putForm(s.self, form, one, other);
+            answer(s.self);
+        }
+
+        /** The TYPE as what it is in another one, if it isn't too deep for that; TOO_DEEP if it is. NONE: not yet known. */
+        private int small(int id, int levels) {
+            int at = nodes.through(id);
+            int form = nodes.formOf(at);
+            if (form == SHUT) {
+                open(FORM, at, NONE);
+                return NONE;
+            }
+            if (!nodes.isJoin(at)) return nodes.depthOf(at) <= levels ? at : TOO_DEEP;
+            if (levels <= 0) return TOO_DEEP;
+            int one = small(nodes.partOf(at, 0), levels - 1);
+            if (one < 0) return one;
+            int other = small(nodes.partOf(at, 1), levels - 1);
+            if (other < 0) return other;
+            return nodes.make(form, one, other);
+        }
+
+        private void stepSmall(Step s) {
+            int found = small(s.a, DEEPEST_TOLD - 1);
+            if (found != NONE) answer(found == TOO_DEEP ? ANY_TYPE : found);
+        }
+
+        /**
+         * Finds that of a SORT on the ROAD. A JOIN climbs with what the TYPES in it are inside of a SORT; this alone is
+         * the answer, if its own SORT is asked for.
+         */
+        private void stepRoad(Step s) {
+            s.a = nodes.through(s.a);
+            int at = s.a;
+            int form = nodes.formOf(at);
+            if (form == SHUT) {
+                open(FORM, at, NONE);
+                return;
+            }
+            if (nodes.isJoin(at)) {
+                int one = small(nodes.partOf(at, 0), DEEPEST_TOLD - 1);
+                int other = one == NONE ? NONE : small(nodes.partOf(at, 1), DEEPEST_TOLD - 1);
+                if (one == NONE || other == NONE) return;
+                at = nodes.make(form, one == TOO_DEEP ? ANY_TYPE : one, other == TOO_DEEP ? ANY_TYPE : other);
+                if (one != TOO_DEEP && other != TOO_DEEP) nodes.putForm(s.a, LINKED, at, ANY_TYPE);
+            }
+            for (int n = 0; n < MOST_SORTS && form != s.wanted && form < sorts.size(); n++) {
+                Sort of = sorts.get(form);
+                int parent = nodes.formOf(of.first);
+                boolean isFirst = parent < sorts.size() && sorts.get(parent).goesTo(s.wanted);
+                at = put(isFirst ? of.first : of.second, nodes.partOf(at, 0), nodes.partOf(at, 1), NONE, 0);
+                form = nodes.formOf(at);
+            }
+            if (at < LEAVES) {
+                answer(ANY_TYPE);
+                return;
+            }
+            pairs.keep(s.a, s.wanted, at);
+            answer(at);
+        }
+
+        /** Finds how deep it and all that it meets on its ROAD can go down. */
+        private void stepReach(Step s) {
+            s.a = nodes.through(s.a);
+            int form = nodes.formOf(s.a);
+            int reach = nodes.reachOf(s.a);
+            if (form == SHUT && reach == UNKNOWN) {
+                open(FORM, s.a, NONE);
+                return;
+            }
+            if (form >= sorts.size() || reach != UNKNOWN) {
+                answer(form == LEAF ? 0 : reach);
+                return;
+            }
+            Sort sort = sorts.get(form);
+            while (s.turn < PARTS_AND_PARENTS) {
+                if (s.phase == 0) {
+                    s.x = NONE;
+                    if (s.turn < 2 && s.turn < sort.many) s.x = nodes.through(nodes.partOf(s.a, s.turn));
+                    int parent = s.turn == 2 ? sort.first : s.turn == 3 ? sort.second : NONE;
+                    if (parent != NONE) {
+                        s.x = member(s, s.a, nodes.formOf(parent));
+                        if (s.x == NONE) return;
+                    }
+                    s.phase = 1;
                 }
-                added.turn = 0;
+                if (s.phase == 1 && s.x != NONE && nodes.reachOf(nodes.through(s.x)) == UNKNOWN) {
+                    s.phase = 2;
+                    open(REACH, s.x, NONE);
+                    return;
+                }
+                if (s.x != NONE) {
+                    int found = s.phase == 2 ? last : nodes.reachOf(nodes.through(s.x));
+                    s.best = Math.max(s.best, Math.min(found + (s.turn < 2 ? 1 : 0), ENDLESS));
+                }
+                s.phase = 0;
+                s.turn++;
             }
-            way.clear();
-            if (isOpen) return null;
-            meeting--;
-            return found == null ? any : found;
+            nodes.putReach(s.a, s.best);
+            flatten(s, form);
+            answer(s.best);
         }
 
-        /** Whether a PARAMETER of the SORT stands where it must not, in what itself stands this way. */
-        private boolean standsBadly(Type in, int way, Sort sort, int level) {
-            if (in == null || (in.marks & (HAS_FIRST | HAS_SECOND)) == 0 || level > MOST_LEVELS) return false;
-            if (in.of == null) {
-                int how = sort.howAt(in == firstParameter ? 0 : 1);
-                return how != FIXED && how != way;
-            }
-            return standsBadly(in.one, turned(way, in.of.howOne), sort, level + 1)
-                    || standsBadly(in.other, turned(way, in.of.howOther), sort, level + 1);
+        /** What is whole by now, without a JOIN in it, has one number. */
+        private void flatten(Step s, int form) {
+            int one = nodes.through(nodes.partOf(s.a, 0));
+            int other = nodes.through(nodes.partOf(s.a, 1));
+            if (!nodes.isJoin(s.a) || !nodes.isFlat(one) || !nodes.isFlat(other)) return;
+            int flat = nodes.make(form, one, other);
+            nodes.putReach(flat, s.best);
+            nodes.putForm(s.a, LINKED, flat, ANY_TYPE);
         }
 
-        private static int turned(int way, int how) {
-            if (way == FIXED || how == FIXED) return FIXED;
-            return how == OUT ? way : OUT + IN - way;
+        /** Finds a way down that is as long as it is wanted, or longer; NONE if there is none. */
+        private void stepDepth(Step s) {
+            if (s.isAnswered) {
+                s.isAnswered = false;
+                if (last != NONE) {
+                    answer(last + 1);
+                    return;
+                }
+                s.turn++;
+            }
+            s.a = nodes.through(s.a);
+            int form = nodes.formOf(s.a);
+            int most = nodes.mostDepthOf(s.a);
+            if (most < s.wanted && most != UNKNOWN) {
+                answer(NONE);
+                return;
+            }
+            if (form == SHUT) {
+                open(FORM, s.a, NONE);
+                return;
+            }
+            if (!nodes.isJoin(s.a)) {
+                answer(most);
+                return;
+            }
+            int one = nodes.through(nodes.partOf(s.a, 0));
+            int other = nodes.through(nodes.partOf(s.a, 1));
+            if (s.phase == 0) {
+                s.phase = 1;
+                s.isBack = nodes.mostDepthOf(other) > nodes.mostDepthOf(one);
+            }
+            for (; s.turn < 2; s.turn++) {
+                int part = s.turn == 0 == s.isBack ? other : one;
+                int deep = nodes.mostDepthOf(part);
+                if (deep != UNKNOWN && deep + 1 < s.wanted) continue;
+                open(DEPTH, part, Math.max(s.wanted - 1, 0));
+                s.isAnswered = true;
+                return;
+            }
+            nodes.putMostDepth(s.a, s.wanted - 1);
+            answer(NONE);
+        }
+
+        /** Passes over what is in it, to the place that is wanted. */
+        private void stepLine(Step s) {
+            s.a = nodes.through(s.a);
+            int form = nodes.formOf(s.a);
+            int slot = sizes.length == 0 ? 0 : s.a & (sizes.length - 1);
+            if (s.phase == 0) {
+                if (form == SHUT) {
+                    open(FORM, s.a, NONE);
+                    return;
+                }
+                if (left == 0) {
+                    last = form == LEAF ? ANY - s.a : form;
+                    asking = 0;
+                    return;
+                }
+                s.phase = 1;
+                s.wanted = left;
+                long known = slot < sizes.length && sizes[slot] >>> SIZE_BITS == s.a ? sizes[slot] & SIZE_MASK : 0;
+                if (known > 0 && known <= left) {
+                    left -= (int) known;
+                    answer(NO_PLACE);
+                    return;
+                }
+                left--;
+            }
+            Sort sort = form < sorts.size() ? sorts.get(form) : null;
+            if (sort != null && s.turn < sort.many) {
+                s.turn++;
+                open(LINE, nodes.partOf(s.a, s.turn - 1), NONE);
+                return;
+            }
+            if (slot < sizes.length) sizes[slot] = (long) s.a << SIZE_BITS | s.wanted - left;
+            answer(NO_PLACE);
         }
     }
 
     private static final class Method {
         int number;
-        Sort sort;
+        int sort;
         int name;
-        Type one;
-        Type other;
-        Type result;
+        int one;
+        int other;
+        int result;
         boolean isGeneral;
     }
 
@@ -1251,11 +1734,11 @@ public final class Hornbook {
         int method;
         int place;
         boolean isGeneral;
-        Type one;
-        Type other;
-        Type result;
-        /** The OWN TYPE that was found; null if it is not GENERAL. */
-        Type own;
+        int one;
+        int other;
+        int result;
+        /** The OWN TYPE that was found; NONE if it is not GENERAL. */
+        int own;
         boolean takes;
     }
 
@@ -1263,9 +1746,9 @@ public final class Hornbook {
     private static final class Chooser {
         final Room room = new Room();
         final ArrayList<Method> methods = new ArrayList<>();
-        private final Road road = new Road();
         private final Candidate[] candidates = new Candidate[MOST_METHODS];
-        private final ArrayList<Type> hints = new ArrayList<>();
+        private int[] hints = new int[FIRST_HINTS];
+        private int hinted = 0;
         /** A METHOD that counts as not told. */
         int without = NONE;
         int seen = 0;
@@ -1277,16 +1760,23 @@ public final class Hornbook {
         }
 
         /** The code of the FAULT; 0 without one. */
-        int choose(Type from, int name, Type one, Type other) {
-            int before = room.held.size();
+        int choose(int from, int name, int one, int other) {
+            int before = room.holding;
+            room.hold(from);
+            room.hold(one);
+            room.hold(other);
             lookAround(from, name);
             taking = 0;
             for (int i = 0; i < seen; i++) {
                 Candidate at = candidates[i];
-                room.tidy();
-                at.takes = (at.one == null) == (one == null) && (at.other == null) == (other == null);
+                at.takes = (at.one == NONE) == (one == NONE) && (at.other == NONE) == (other == NONE);
                 if (!at.takes) continue;
-                if (at.isGeneral) settleOwn(at, one, other);
+                if (at.isGeneral) {
+                    hinted = 0;
+                    gatherHints(at.one, one, 0);
+                    gatherHints(at.other, other, 0);
+                    settleOwn(at);
+                }
                 at.takes = room.goesUnder(one, at.one) && room.goesUnder(other, at.other);
                 if (at.takes) taking++;
             }
@@ -1300,26 +1790,35 @@ public final class Hornbook {
             return best == null ? NONE_BEST : 0;
         }
 
-        private void lookAround(Type from, int name) {
+        private void lookAround(int given, int name) {
             seen = 0;
-            room.tidy();
-            road.clear();
-            room.climb(from, road, 0);
+            int at = room.ask(FORM, given, NONE);
+            int form = room.nodes.formOf(at);
+            if (form >= room.sorts.size()) return;
+            Sort sort = room.sorts.get(form);
+            int cut = room.ask(ROAD, at, form);
+            room.hold(cut);
+            lookFrom(given, cut, sort, name);
+        }
+
+        private void lookFrom(int given, int cut, Sort sort, int name) {
             for (int i = 0; i < methods.size() && seen < candidates.length; i++) {
                 Method at = methods.get(i);
-                if (at.name != name || at.number == without) continue;
-                int place = road.placeOf(at.sort);
-                Type there = road.at(place);
-                if (there == null) continue;
+                boolean isSeen = at.name == name && at.number != without && sort.goesTo(at.sort);
+                if (!isSeen) continue;
+                room.tidy();
+                int from = room.nodes.through(given);
+                int there = at.sort == sort.number ? from : room.ask(ROAD, from, at.sort);
+                int within = at.sort == sort.number ? cut : there;
                 Candidate added = candidates[seen];
                 seen++;
                 added.method = at.number;
-                added.place = place;
+                added.place = sort.placeOf(at.sort);
                 added.isGeneral = at.isGeneral;
-                added.one = room.put(at.one, there.one, there.other, null, 0);
-                added.other = room.put(at.other, there.one, there.other, null, 0);
-                added.result = room.put(at.result, there.one, there.other, null, 0);
-                added.own = null;
+                added.one = at.one == NONE ? NONE : room.putParts(at.one, there, within);
+                added.other = at.other == NONE ? NONE : room.putParts(at.other, there, within);
+                added.result = room.putParts(at.result, there, within);
+                added.own = NONE;
                 holdAll(added);
             }
         }
@@ -1331,33 +1830,46 @@ public final class Hornbook {
             room.hold(at.own);
         }
 
-        private void settleOwn(Candidate at, Type one, Type other) {
-            hints.clear();
-            gatherHints(at.one, one, 0);
-            gatherHints(at.other, other, 0);
-            for (int i = 0; i < hints.size() && at.own == null; i++) {
+        private void settleOwn(Candidate at) {
+            for (int i = 0; i < hinted && at.own == NONE; i++) {
                 boolean isAbove = true;
-                for (int j = 0; j < hints.size() && isAbove; j++) isAbove = room.goesUnder(hints.get(j), hints.get(i));
-                if (isAbove) at.own = hints.get(i);
+                for (int j = 0; j < hinted && isAbove; j++) isAbove = room.goesUnder(hints[j], hints[i]);
+                if (isAbove) at.own = hints[i];
             }
-            if (at.own == null) at.own = room.any;
-            at.one = room.put(at.one, null, null, at.own, 0);
-            at.other = room.put(at.other, null, null, at.own, 0);
-            at.result = room.put(at.result, null, null, at.own, 0);
+            if (at.own == NONE) at.own = ANY_TYPE;
+            int within = room.ask(SMALL, at.own, NONE);
+            room.hold(within);
+            room.tidy();
+            at.one = putOwn(at.one, at.own, within);
+            at.other = putOwn(at.other, at.own, within);
+            at.result = putOwn(at.result, at.own, within);
             holdAll(at);
         }
 
-        private void gatherHints(Type given, Type taken, int level) {
-            if (given == null || taken == null || (given.marks & HAS_OWN) == 0 || level > MOST_LEVELS) return;
-            if (given.of == null) {
-                hints.add(taken);
+        private int putOwn(int in, int own, int within) {
+            return in == OWN ? own : room.put(in, NONE, NONE, within, 0);
+        }
+
+        private void gatherHints(int given, int taken, int level) {
+            if ((room.nodes.openOf(given) & HAS_OWN) == 0 || taken == NONE || level > MOST_LEVELS) return;
+            int form = room.nodes.formOf(given);
+            if (form >= room.sorts.size()) {
+                if (hinted >= hints.length) hints = Arrays.copyOf(hints, hints.length * 2);
+                hints[hinted] = taken;
+                hinted++;
                 room.hold(taken);
                 return;
             }
-            Type at = room.onRoad(taken, given.of);
-            if (at == null) return;
-            gatherHints(given.one, at.one, level + 1);
-            gatherHints(given.other, at.other, level + 1);
+            int from = room.ask(FORM, taken, NONE);
+            int own = room.nodes.formOf(from);
+            if (own >= room.sorts.size() || !room.sorts.get(own).goesTo(form)) return;
+            int at = own == form ? from : room.ask(ROAD, from, form);
+            int one = room.nodes.partOf(at, 0);
+            int other = room.nodes.partOf(at, 1);
+            room.hold(one);
+            room.hold(other);
+            gatherHints(room.nodes.partOf(given, 0), one, level + 1);
+            gatherHints(room.nodes.partOf(given, 1), other, level + 1);
         }
 
         private boolean isBest(Candidate c) {
@@ -1379,42 +1891,26 @@ public final class Hornbook {
         Expression b;
         Expression c;
         int name;
-        Type told;
-        /** null as long as it isn't judged, and again once it was let go. */
-        Type result;
-        Type own;
+        int told;
+        int result = NONE;
+        int own = NONE;
         int seen;
         int taking;
         int chosen;
         int fault;
         boolean hasFault;
+        /** That of the result; NONE as long as nobody has asked for it. */
         int depth;
-        /** How many that are being judged wait for its result. */
-        int waiting = 0;
-
-        Expression namedAt(int place) {
-            if (place == 0) return a;
-            return place == 1 ? b : c;
-        }
-
-        void waitForNamed(int change) {
-            if (a != null) a.waiting += change;
-            if (b != null) b.waiting += change;
-            if (c != null) c.waiting += change;
-        }
-
-        void letGo() {
-            result = null;
-            own = null;
-        }
 
         /** As it is before it is judged: it has in it what those have that are named in it. */
         void clear() {
-            letGo();
+            result = NONE;
+            own = NONE;
             seen = 0;
             taking = 0;
             chosen = NONE;
             fault = 0;
+            depth = NONE;
             hasFault = a != null && a.hasFault || b != null && b.hasFault || c != null && c.hasFault;
         }
 

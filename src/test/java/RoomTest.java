@@ -390,12 +390,12 @@ public final class RoomTest {
         countKept(x);
     }
 
-    /** How many objects there are for TYPES, those that may be used again counted, and how many are not given back. */
+    /** For how many TYPES there is room, and how many are held. */
     private static void countKept(Hornbook x) {
         try {
             Object room = read(x, "room");
-            mostKept = Math.max(mostKept, ((List<?>) read(room, "kept")).size());
-            mostHeld = Math.max(mostHeld, ((List<?>) read(room, "held")).size());
+            mostKept = Math.max(mostKept, ((long[]) read(read(room, "nodes"), "second")).length);
+            mostHeld = Math.max(mostHeld, (int) read(room, "holding"));
         } catch (ReflectiveOperationException e) {
             throw new IllegalStateException(e);
         }

@@ -107,7 +107,7 @@ public final class RulesTest {
         int begun = 0;
         String[] lines = bare.split("\n");
         for (int i = 0; i < lines.length; i++) {
-            boolean isHead = lines[i].matches("\\s+(private |public |static |final )*[\\w<>\\[\\]]+ \\w+\\(.*")
+            boolean isHead = lines[i].matches("\\s+((private |public |static |final )*[\\w<>\\[\\]]+ )?\\w+\\(.*\\{")
                     && !lines[i].contains("return ") && !lines[i].contains("else ") && !lines[i].contains(" = ");
             if (isHead) begun = i;
             for (char c : lines[i].toCharArray()) level += c == '{' ? 1 : c == '}' ? -1 : 0;
