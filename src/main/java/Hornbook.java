@@ -77,6 +77,7 @@ public final class Hornbook {
     /** A reach that is as great, or greater. */
     private static final int ENDLESS = UNKNOWN - 1;
     private static final int DEEPEST_FLAT = 500;
+    private static final int MOST_FLATTENED = 16;
     private static final int MOST_LINKS = 1 << 6;
 
     /** How many TYPES there is room for; all else grows with them. */
@@ -86,6 +87,7 @@ public final class Hornbook {
     private static final int GROWTH = 8;
     /** If more than one of so many is needed, it is too much. */
     private static final int CROWDED_SHARE = 2;
+    private static final int DEAREST_SHARE = 2;
     /** More than can be made at one step. */
     private static final int RESERVE = 1 << 9;
     private static final int FIRST_HELD = 1 << 6;
@@ -775,6 +777,7 @@ public final class Hornbook {
         private int marked = 0;
         /** How many are marked. */
         private int live = 0;
+        private int[] dear = new int[0];
 
         Nodes() {
             for (int i = 0; i < LEAVES; i++) second[i] = (long) LEAF << FORM_AT;
@@ -954,13 +957,53 @@ public final class Hornbook {
                     need((int) (first[at] >>> UPPER) & ID_MASK);
                     need((int) (first[at] >>> ID_BITS) & ID_MASK);
                     boolean isPinned = at >> 6 < pins.length && (pins[at >> 6] >> (at & 63) & 1) == 1;
-                    if (isForgotten && !isPinned) second[at] = (long) SHUT << FORM_AT | second[at] & LOWER_MASK;
+                    if (isForgotten && !isPinned) continue;
                 }
                 int form = (int) (second[at] >>> FORM_AT);
                 if (form == SHUT) continue;
                 need((int) (second[at] >>> ONE_AT) & ID_MASK);
                 if (form != LINKED) need((int) (second[at] >>> OTHER_AT) & ID_MASK);
             }
+        }
+
+        /** Marks the JOINS about which it was most work to find something out, as long as they are not too many. */
+        void needDearest() {
+            if (dear.length == 0) dear = new int[UNKNOWN + 1];
+            Arrays.fill(dear, 0);
+            for (int id = LEAVES; id < used && id < second.length; id++) {
+                if (first[id] < 0) dear[dearnessOf(id)]++;
+            }
+            int least = UNKNOWN;
+            int many = 0;
+            while (least > 1 && many + dear[least - 1] <= second.length / DEAREST_SHARE) {
+                least--;
+                many += dear[least];
+            }
+            for (int id = LEAVES; id < used && id < second.length; id++) {
+                if (first[id] < 0 && dearnessOf(id) >= least) need(id);
+            }
+        }
+
+        private int dearnessOf(int id) {
+            int reach = (int) second[id] & DEPTH_MASK;
+            int depth = (int) (second[id] >>> DEPTH_AT) & DEPTH_MASK;
+            return reach != UNKNOWN ? reach : depth != UNKNOWN ? depth : 0;
+        }
+
+        /** A JOIN that stays, when not all that it comes to be does, is to be looked at again. */
+        void shutJoins() {
+            for (int id = LEAVES; id < used && id < second.length; id++) {
+                int form = (int) (second[id] >>> FORM_AT);
+                if (first[id] >= 0 || form == SHUT || !isNeeded(id)) continue;
+                boolean isWhole = isNeeded((int) (second[id] >>> ONE_AT) & ID_MASK)
+                        && (form == LINKED || isNeeded((int) (second[id] >>> OTHER_AT) & ID_MASK));
+                if (!isWhole) second[id] = (long) SHUT << FORM_AT | second[id] & LOWER_MASK;
+            }
+        }
+
+        /** Whether so much is marked that there is hardly more room. */
+        boolean isCrammed() {
+            return live > second.length / 4 * 3;
         }
 
         void unmark() {
@@ -1174,7 +1217,7 @@ public final class Hornbook {
             pairs.forget();
             Arrays.fill(sizes, 0L);
             for (int i = 0; i < tellings && i < told.length; i++) nodes.need(told[i]);
-            nodes.needInner(true);
+            nodes.needInner(false);
             nodes.sweep();
             nodes.forgetReach();
         }
@@ -1189,14 +1232,21 @@ public final class Hornbook {
             if ((isTidied || nodes.isCrowded()) && nodes.canGrow()) {
                 nodes.grow();
             } else if (nodes.isCrowded()) {
-                nodes.unmark();
-                needRoots(true);
-                nodes.needInner(true);
+                forgetJoins(true);
+                if (nodes.isCrammed()) forgetJoins(false);
+                nodes.shutJoins();
             }
             isTidied = true;
             pairs.purge(nodes);
             Arrays.fill(sizes, 0L);
             nodes.sweep();
+        }
+
+        private void forgetJoins(boolean isDearKept) {
+            nodes.unmark();
+            needRoots(true);
+            if (isDearKept) nodes.needDearest();
+            nodes.needInner(true);
         }
 
         private void needRoots(boolean isPinned) {
@@ -1630,8 +1680,9 @@ public final class Hornbook {
             answer(s.best);
         }
 
-        /** What is whole by now, without a JOIN in it, has one number. */
+        /** What is whole by now, without a JOIN in it, has one number; that it has two of them is too dear for large ones. */
         private void flatten(Step s, int form) {
+            if (s.best > MOST_FLATTENED) return;
             int one = nodes.through(nodes.partOf(s.a, 0));
             int other = nodes.through(nodes.partOf(s.a, 1));
             if (!nodes.isJoin(s.a) || !nodes.isFlat(one) || !nodes.isFlat(other)) return;
