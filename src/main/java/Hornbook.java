@@ -82,9 +82,9 @@ public final class Hornbook {
 
     /** How many TYPES there is room for; all else grows with them. */
     private static final int FIRST_NODES = 1 << 10;
-    private static final int MOST_NODES = 1700000;
+    private static final int MOST_NODES = 2090000;
     private static final int NODES_A_HEAD = 4;
-    private static final int GROWTH = 8;
+    private static final int GROWTH = 16;
     /** If more than one of so many is needed, it is too much. */
     private static final int CROWDED_SHARE = 2;
     private static final int DEAREST_SHARE = 2;
@@ -94,7 +94,7 @@ public final class Hornbook {
     private static final int FIRST_HINTS = 1 << 3;
 
     private static final int FIRST_SLOTS = 1 << 9;
-    private static final int MOST_SLOTS = 1 << 20;
+    private static final int MOST_SLOTS = 1 << 19;
     private static final int SLOTS_A_ROW = 4;
     private static final int VALUE_BITS = 22;
     /** From so many places on it is worth while to remember how long LINES are. */
@@ -104,7 +104,7 @@ public final class Hornbook {
     private static final long SIZE_MASK = (1L << SIZE_BITS) - 1;
 
     /** Far above what a question needs. */
-    private static final int MOST_STEPS = 1 << 30;
+    private static final long MOST_STEPS = 1L << 40;
     private static final long SPREAD = 0x9E3779B97F4A7C15L;
 
     /** The questions: whether one is UNDER another; what a JOIN comes to be, and its ways to that; and others. */
@@ -1335,7 +1335,7 @@ public final class Hornbook {
             last = NONE;
             isTidied = false;
             open(kind, a, b);
-            for (int n = 0; n < MOST_STEPS && asking > 0 && asking <= steps.size(); n++) {
+            for (long n = 0; n < MOST_STEPS && asking > 0 && asking <= steps.size(); n++) {
                 if (nodes.isFull()) giveBack();
                 Step top = steps.get(asking - 1);
                 switch (top.kind) {

@@ -1,23 +1,55 @@
 import java.util.ArrayList;
+import java.util.HashMap;
 import java.util.List;
+import java.util.Map;
 
 /**
- * The document, written a second time and as plainly as it goes: TYPES are trees that are compared whole, nothing
- * is kept between two calls, and everything is found anew from what was told. PlainTest compares the two.
+ * The document, written a second time and as plainly as it goes: TYPES are whole, nothing that was found out is kept
+ * between two calls, and everything is found anew from what was told. PlainTest compares the two.
  */
 class PlainHornbook {
-    /** A TYPE; its code is as in a LINE. */
-    record T(int code, List<T> in) {
+    /** A TYPE; its code is as in a LINE. What is built in the same way is made once, so the SAME is ==. */
+    static final class T {
+        final int code;
+        final List<T> in;
+        final int number;
+        private final int depth;
+        /** The length of its LINE, as far as a long goes. */
+        final long size;
+        /** What is in it that is no TYPE of a SORT, one bit each. */
+        private final int leaves;
+
+        private T(int code, List<T> in, int number) {
+            this.code = code;
+            this.in = in;
+            this.number = number;
+            int deepest = 0;
+            long length = 1;
+            int leaves = code < 0 ? 1 << -code : 0;
+            for (T t : in) {
+                leaves |= t.leaves;
+                deepest = Math.max(deepest, t.depth + 1);
+                length = Math.min(length + t.size, Long.MAX_VALUE / 4);
+            }
+            depth = deepest;
+            size = length;
+            this.leaves = leaves;
+        }
+
+        int code() {
+            return code;
+        }
+
+        List<T> in() {
+            return in;
+        }
+
         int depth() {
-            int depth = 0;
-            for (T t : in) depth = Math.max(depth, t.depth() + 1);
             return depth;
         }
 
         boolean has(int what) {
-            if (code == what) return true;
-            for (T t : in) if (t.has(what)) return true;
-            return false;
+            return (leaves >> -what & 1) == 1;
         }
 
         boolean isClosed() {
@@ -28,11 +60,6 @@ class PlainHornbook {
             int greatest = code;
             for (T t : in) greatest = Math.max(greatest, t.greatest());
             return greatest;
-        }
-
-        void addLine(List<Integer> line) {
-            line.add(code);
-            for (T t : in) t.addLine(line);
         }
     }
 
@@ -53,10 +80,11 @@ class PlainHornbook {
         boolean isFaulty;
     }
 
-    static final T ANY = new T(-1, List.of());
-    static final T NOTHING = new T(-2, List.of());
-    static final T OWN = new T(-3, List.of());
+    static final T ANY = new T(-1, List.of(), 0);
+    static final T NOTHING = new T(-2, List.of(), 1);
+    static final T OWN = new T(-3, List.of(), 2);
 
+    private final Map<List<Integer>, T> made = new HashMap<>();
     final List<int[]> hows = new ArrayList<>();
     final List<List<T>> parents = new ArrayList<>();
     final List<T> types = new ArrayList<>(List.of(ANY, NOTHING, OWN));
@@ -91,14 +119,14 @@ class PlainHornbook {
         inside(sort, hows.size());
         List<T> in = told(one, other);
         if (in.size() != hows.get(sort).length) throw new IllegalArgumentException();
-        T t = new T(sort, in);
+        T t = make(sort, in);
         if (t.depth() > 4) throw new IllegalArgumentException();
         return addType(t);
     }
 
     int parameter(int which) {
         if (which < 0 || which > 1) throw new IllegalArgumentException();
-        return addType(new T(-4 - which, List.of()));
+        return addType(make(-4 - which, List.of()));
     }
 
     int addType(T t) {
@@ -182,7 +210,14 @@ class PlainHornbook {
 
     // ---- TYPES
 
-    static T put(T in, List<T> parameters, T own) {
+    T make(int code, List<T> in) {
+        if (code >= -3 && code < 0) return code == -1 ? ANY : code == -2 ? NOTHING : OWN;
+        List<Integer> key = new ArrayList<>(List.of(code));
+        for (T t : in) key.add(t.number);
+        return made.computeIfAbsent(key, k -> new T(code, in, made.size() + 3));
+    }
+
+    T put(T in, List<T> parameters, T own) {
         if (in.code == -4 && parameters != null) return parameters.get(0);
         if (in.code == -5 && parameters != null) return parameters.get(1);
         if (in.code == -3 && own != null) return own;
@@ -193,7 +228,7 @@ class PlainHornbook {
             T now = put(t, parameters, own);
             inner.add(now.depth() >= 4 ? ANY : now);
         }
-        return new T(in.code, inner);
+        return make(in.code, inner);
     }
 
     void climb(T t, List<T> road, boolean isWhole) {
@@ -259,16 +294,24 @@ class PlainHornbook {
                         else continue next;
                 }
             }
-            return new T(x.code, in);
+            return make(x.code, in);
         }
         return ANY;
     }
 
     static int at(T t, int k) {
-        if (t == null) return -9;
-        List<Integer> line = new ArrayList<>();
-        t.addLine(line);
-        return k < 0 || k >= line.size() ? -9 : line.get(k);
+        if (t == null || k < 0 || k >= t.size) return -9;
+        T at = t;
+        long left = k;
+        while (left > 0) {
+            left--;
+            for (T in : at.in) {
+                at = in;
+                if (left < in.size) break;
+                left -= in.size;
+            }
+        }
+        return at.code;
     }
 
     T typeAt(int type) {
@@ -459,9 +502,9 @@ class PlainHornbook {
                 if (isBad(parents.get(s).get(p), 1, s)) flaws.add(new int[] {s, 1, p});
             }
             List<T> self = new ArrayList<>();
-            for (int p = 0; p < hows.get(s).length; p++) self.add(new T(-4 - p, List.of()));
+            for (int p = 0; p < hows.get(s).length; p++) self.add(make(-4 - p, List.of()));
             List<T> way = new ArrayList<>();
-            climb(new T(s, self), way, true);
+            climb(make(s, self), way, true);
             boolean isMixed = false;
             for (T a : way) for (T b : way) isMixed |= a.code == b.code && !a.equals(b);
             if (isMixed) flaws.add(new int[] {s, 2, -1});

@@ -56,112 +56,78 @@ public final class RoomTest {
             + " u7,45 u8,42 u9,39 u10,57 u11,38"
     };
 
+    /** The SORTS and TYPES of HornbookLargeEitherTest among the shared tests. */
+    private static final String TOWER =
+        "s2,1,1 s2,2,1 s2,0,1 s2,2,2 s2,1,0 s2,2,0 s2,1,0 s0,2,0 s2,2,1 s2,2,1 s2,2,1 s0,2,0 p0 p1 "
+            + "t10,0,1 t1,3,4 t10,5,0 t4,3,4 t1,4,4 t3,4,3 t5,3,4 t8,4,0 t6,1,1 t5,4,3 t5,14,11 t0,3,4 "
+            + "t11,-1,-1 t7,-1,-1 t10,0,18 t2,3,4 t6,18,4 t5,8,3 t1,4,4 t4,8,20 t4,0,4 t1,14,0 t4,20,5 "
+            + "t10,19,17 t0,2,14 t3,28,28 t4,1,25 t2,1,25 t9,3,13 t0,26,24 t4,20,34 t0,20,10 t9,23,21 t3,3,12 "
+            + "t1,2,2 t0,6,4 t10,23,13 t0,16,16 t0,11,38 t8,0,10 t2,33,20 t9,0,26 t4,37,11 t4,44,24 t10,26,28 "
+            + "t4,22,15 t8,0,36 t1,33,1 t4,32,30 t5,34,33 t1,14,2 t9,0,42 t4,0,34 t3,13,11 t1,10,2 u1,42 u2,40 "
+            + "u3,20 u3,42 u4,36 u4,23 u5,24 u5,42 u6,50 u6,35 u7,13 u7,13 u8,34 u8,31 u9,43 u9,24 u10,47 u11,7 "
+            + "u11,13";
+
     /** PlainHornbook, with a memory, so that large questions can be answered. */
     private static final class Remembering extends PlainHornbook {
-        private final Map<List<T>, Boolean> orders = new HashMap<>();
-        private final Map<List<T>, Long> sizes = new HashMap<>();
-        private final Map<List<T>, Integer> depths = new HashMap<>();
+        private final Map<Long, Boolean> orders = new HashMap<>();
+        private final Map<Long, T> joins = new HashMap<>();
+        private final Map<T, List<T>> roads = new HashMap<>();
+        private List<Judged> all;
 
         @Override
         int parent(int sort, int type) {
             orders.clear();
+            joins.clear();
+            roads.clear();
             return super.parent(sort, type);
         }
 
         @Override
-        boolean under(T a, T b) {
-            List<T> pair = List.of(a, b);
-            Boolean known = orders.get(pair);
+        int say(Said what) {
+            all = null;
+            return super.say(what);
+        }
+
+        private static long pair(T a, T b) {
+            return (long) a.number << 32 | b.number;
+        }
+
+        @Override
+        List<T> road(T t) {
+            List<T> known = roads.get(t);
             if (known == null) {
-                known = super.under(a, b);
-                orders.put(pair, known);
+                known = super.road(t);
+                roads.put(t, known);
             }
             return known;
         }
 
-        /** The JOIN, if it is one of the two or ANY. */
-        private T simpleJoin(T a, T b) {
-            return under(a, b) ? b : under(b, a) ? a : meeting(a, b).isEmpty() ? ANY : null;
-        }
-
-        /** Where the ROADS of both come together. */
-        private List<T> meeting(T a, T b) {
-            for (T x : road(a)) {
-                T y = find(road(b), x.code());
-                boolean isThis = y != null;
-                for (int i = 0; isThis && i < x.in().size(); i++) {
-                    T p = x.in().get(i);
-                    T q = y.in().get(i);
-                    int how = hows.get(x.code())[i];
-                    isThis = how == 0 ? p.equals(q) : how == 1 || under(p, q) || under(q, p);
-                }
-                if (isThis) return List.of(x, y);
+        @Override
+        boolean under(T a, T b) {
+            if (a == NOTHING || b == ANY || a == b) return true;
+            Boolean known = orders.get(pair(a, b));
+            if (known == null) {
+                known = super.under(a, b);
+                orders.put(pair(a, b), known);
             }
-            return List.of();
+            return known;
         }
 
-        /** The part of a JOIN that is no JOIN; null for another one. */
-        private T part(T x, T y, int place) {
-            T p = x.in().get(place);
-            T q = y.in().get(place);
-            int how = hows.get(x.code())[place];
-            return how == 1 ? simpleJoin(p, q) : how == 0 || under(p, q) ? p : q;
-        }
-
-        private static long sizeOf(T t) {
-            long size = 1;
-            for (T in : t.in()) size += sizeOf(in);
-            return size;
-        }
-
-        long joinSize(T a, T b) {
-            T simple = simpleJoin(a, b);
-            if (simple != null) return sizeOf(simple);
-            Long known = sizes.get(List.of(a, b));
-            if (known != null) return known;
-            List<T> at = meeting(a, b);
-            long size = 1;
-            for (int i = 0; i < at.get(0).in().size(); i++) size += partSize(at, i);
-            size = Math.min(size, Long.MAX_VALUE / 4);
-            sizes.put(List.of(a, b), size);
-            return size;
-        }
-
-        private long partSize(List<T> at, int place) {
-            T part = part(at.get(0), at.get(1), place);
-            return part != null ? sizeOf(part) : joinSize(at.get(0).in().get(place), at.get(1).in().get(place));
-        }
-
-        int joinAt(T a, T b, long k) {
-            T simple = simpleJoin(a, b);
-            if (simple != null) return k > 10000 ? -9 : at(simple, (int) k);
-            List<T> at = meeting(a, b);
-            if (k <= 0) return k < 0 ? -9 : at.get(0).code();
-            long left = k - 1;
-            for (int i = 0; i < at.get(0).in().size(); i++) {
-                long size = partSize(at, i);
-                T part = part(at.get(0), at.get(1), i);
-                if (left < size && part != null) return at(part, (int) left);
-                if (left < size) return joinAt(at.get(0).in().get(i), at.get(1).in().get(i), left);
-                left -= size;
+        @Override
+        T join(T a, T b) {
+            T known = joins.get(pair(a, b));
+            if (known == null) {
+                known = super.join(a, b);
+                joins.put(pair(a, b), known);
             }
-            return -9;
+            return known;
         }
 
-        int joinDepth(T a, T b) {
-            T simple = simpleJoin(a, b);
-            if (simple != null) return simple.depth();
-            Integer known = depths.get(List.of(a, b));
-            if (known != null) return known;
-            List<T> at = meeting(a, b);
-            int depth = 0;
-            for (int i = 0; i < at.get(0).in().size(); i++) {
-                T part = part(at.get(0), at.get(1), i);
-                int inner = part != null ? part.depth() : joinDepth(at.get(0).in().get(i), at.get(1).in().get(i));
-                depth = Math.max(depth, inner + 1);
-            }
-            depths.put(List.of(a, b), depth);
-            return depth;
+        @Override
+        List<Judged> judge(int without) {
+            if (without != -1) return super.judge(without);
+            if (all == null) all = super.judge(without);
+            return all;
         }
     }
 
@@ -181,6 +147,8 @@ public final class RoomTest {
         }
         for (int i = 0; i < FORESTS.length && args.length == 0; i++) large(i);
         if (small == 0 || args.length == 0) largeResults();
+        if (args.length == 0) largeTower();
+        if (args.length == 0) tooLargeTower();
         System.out.println("at most " + mostKept + " TYPES are kept, " + mostHeld + " held");
         due.part("what is no more needed is given back");
         if (args.length > 1) due.is("too many are kept", mostKept > Integer.parseInt(args[1]), false);
@@ -194,14 +162,14 @@ public final class RoomTest {
         tell(x, y, FORESTS[forest]);
         orders("forest " + forest, x, y);
         joins("forest " + forest, x, y);
-        joinedExpressions(forest, y);
+        joinedExpressions(forest);
         choices("forest " + forest, FORESTS[forest], false, y);
         long most = 0;
         int deepest = 0;
         for (PlainHornbook.T a : y.types) {
             for (PlainHornbook.T b : y.types) {
-                most = Math.max(most, y.joinSize(a, b));
-                deepest = Math.max(deepest, y.joinDepth(a, b));
+                most = Math.max(most, y.join(a, b).size);
+                deepest = Math.max(deepest, y.join(a, b).depth());
             }
         }
         System.out.println("forest " + forest + ": the largest JOIN " + most + ", the deepest one " + deepest);
@@ -281,63 +249,109 @@ public final class RoomTest {
             for (int b = 0; b < y.types.size(); b++) {
                 for (int k : PLACES) {
                     if ((a * 7 + b + k) % 4 != 0) continue;
-                    int is = y.joinAt(y.types.get(a), y.types.get(b), k);
+                    int is = y.join(a, b, k);
                     due.is("join(" + a + ", " + b + ", " + k + ")", x.join(a, b, k), is);
                 }
             }
         }
     }
 
-    /** EITHERS of TYPES that are told, and of all that came before. */
-    private static void joinedExpressions(int forest, Remembering y) {
+    /** EITHERS of TYPES that are told, and of EITHERS. */
+    private static void joinedExpressions(int forest) {
         due.part("promises 8, 17 and 31 in forest " + forest);
         Hornbook x = new Hornbook();
-        tell(x, new PlainHornbook(), FORESTS[forest]);
+        Remembering y = new Remembering();
+        tell(x, y, FORESTS[forest]);
         List<Integer> closed = closedOf(y);
-        long sum = 0;
-        for (int i = 0; i < 13; i++) {
-            int a = closed.get(i * 7 % closed.size());
-            int b = closed.get((i * i + 5 * i + 3) % closed.size());
-            PlainHornbook.T s = y.types.get(a);
-            PlainHornbook.T t = y.types.get(b);
-            x.value(a);
-            x.value(b);
-            int e = x.either(x.many(3) - 2, x.many(3) - 1);
-            sum += s.depth() + t.depth() + y.joinDepth(s, t);
-            for (int k : PLACES) due.is("line(" + e + ", " + k + ")", x.line(e, k), y.joinAt(s, t, k));
-            due.is("meanDepth()", x.meanDepth(), (double) sum / x.many(3));
+        for (int i = 0; i < 10; i++) {
+            for (int t : new int[] {closed.get(i * 7 % closed.size()), closed.get((i * i + 5 * i + 3) % closed.size())}) {
+                due.is("value", x.value(t), y.value(t));
+            }
+            int e = y.many(3);
+            due.is("either", x.either(e - 2, e - 1), y.either(e - 2, e - 1));
+            due.is("either", x.either(i % e, e), y.either(i % e, e));
+            for (int k : PLACES) {
+                due.is("line(" + e + ", " + k + ")", x.line(e, k), y.line(e, k));
+                due.is("line(" + (e + 1) + ", " + k + ")", x.line(e + 1, k), y.line(e + 1, k));
+            }
+            due.is("meanDepth()", x.meanDepth(), y.meanDepth());
         }
     }
 
     /** EITHERS whose TYPES fill a room by themselves, so that in a small one not all can be kept at once. */
     private static void largeResults() {
-        due.part("promises 8 and 17, many large JOINS");
+        due.part("promises 8, 17 and 31, many large JOINS");
         Hornbook x = new Hornbook();
         Remembering y = new Remembering();
         tell(x, y, FORESTS[1]);
         int[] types = {52, 28, 7, 17, 27, 5, 19};
-        for (int t : types) x.value(t);
-        List<int[]> pairs = new ArrayList<>();
+        for (int t : types) due.is("value", x.value(t), y.value(t));
         for (int i = 0; i < types.length; i++) {
-            for (int j = 0; j < types.length; j++) if ((i + j) % 2 == 1) pairs.add(new int[] {i, j});
-        }
-        long sum = 0;
-        for (int t : types) sum += y.types.get(t).depth();
-        for (int[] p : pairs) {
-            x.either(p[0], p[1]);
-            sum += y.joinDepth(y.types.get(types[p[0]]), y.types.get(types[p[1]]));
-        }
-        due.is("meanDepth()", x.meanDepth(), (double) sum / x.many(3));
-        for (int round = 0; round < 2; round++) {
-            for (int i = 0; i < pairs.size(); i++) {
-                PlainHornbook.T a = y.types.get(types[pairs.get(i)[0]]);
-                PlainHornbook.T b = y.types.get(types[pairs.get(i)[1]]);
-                int e = types.length + i;
-                for (int k : PLACES) due.is("line(" + e + ", " + k + ")", x.line(e, k), y.joinAt(a, b, k));
+            for (int j = 0; j < types.length; j++) {
+                if ((i + j) % 2 == 1) due.is("either", x.either(i, j), y.either(i, j));
             }
-            due.is("isUnder(28, 52)", x.isUnder(28, 52), y.isUnder(28, 52));
         }
+        for (int i = 0; i < 4; i++) due.is("either", x.either(7 + i, 20 - 3 * i), y.either(7 + i, 20 - 3 * i));
+        lines(x, y, types.length);
+        due.is("meanDepth()", x.meanDepth(), y.meanDepth());
+        due.is("isUnder(28, 52)", x.isUnder(28, 52), y.isUnder(28, 52));
+        lines(x, y, types.length);
         countKept(x);
+    }
+
+    /** The last ones first, as they rest on the others. */
+    private static void lines(Hornbook x, Remembering y, int from) {
+        for (int e = y.many(3) - 1; e >= from; e--) {
+            for (int k : PLACES) due.is("line(" + e + ", " + k + ")", x.line(e, k), y.line(e, k));
+        }
+    }
+
+    /** EITHERS of EITHERS; some METHODS and AS that rest on them. */
+    private static void largeTower() {
+        due.part("promises 8 to 10, 17 to 22, 31 and 32, EITHERS of EITHERS");
+        Hornbook x = new Hornbook();
+        Remembering y = new Remembering();
+        tell(x, y, TOWER);
+        for (int m = 0; m < 24; m++) {
+            int sort = m % 2 == 0 ? 0 : m / 2;
+            int given = m % 3 == 0 ? -1 : m % 3 == 1 ? 2 : fitting(y, sort, 14 + m);
+            int result = m % 4 == 0 ? 2 : fitting(y, sort, m % 4 == 1 ? 3 : 20 + m);
+            due.is("method", x.method(sort, m % 2, given, -1, result, true), y.method(sort, m % 2, given, -1, result, true));
+        }
+        for (int t : new int[] {30, 28, 7, 5, 19}) due.is("value", x.value(t), y.value(t));
+        for (int[] e : new int[][] {{0, 1}, {0, 2}, {5, 6}, {1, 0}, {5, 8}, {7, 3}}) {
+            due.is("either", x.either(e[0], e[1]), y.either(e[0], e[1]));
+        }
+        lines(x, y, 5);
+        due.is("meanDepth()", x.meanDepth(), y.meanDepth());
+        for (int e = 5; e < 11; e++) {
+            due.is("as", x.as(e, 30), y.as(e, 30));
+            due.is("call", x.call(e, e % 2, e % 3 == 0 ? -1 : 15 - e, -1), y.call(e, e % 2, e % 3 == 0 ? -1 : 15 - e, -1));
+        }
+        for (int e = 11; e < y.many(3); e++) {
+            due.is("chosen(" + e + ")", x.chosen(e), y.chosen(e));
+            for (int k : PLACES) due.is("own(" + e + ", " + k + ")", x.own(e, k), y.own(e, k));
+        }
+        lines(x, y, 5);
+        due.is("meanDepth()", x.meanDepth(), y.meanDepth());
+        due.is("digest()", x.digest(), y.digest());
+        countKept(x);
+    }
+
+    /** An EITHER of EITHERS with 1564496 TYPES in it; what is due was found by a class that had room for all of them. */
+    private static void tooLargeTower() {
+        due.part("promises 8, 17, 31 and 32, an EITHER that is too large for all of it to be kept");
+        Hornbook x = new Hornbook();
+        tell(x, new PlainHornbook(), TOWER);
+        for (int t : new int[] {30, 28, 7}) x.value(t);
+        x.either(0, 1);
+        x.either(2, 0);
+        x.either(3, 4);
+        int[] places = {5, 1000, 100000, 10000000, 2000000000};
+        int[] is = {0, 2, 0, 2, -2};
+        for (int i = 0; i < is.length; i++) due.is("line(5, " + places[i] + ")", x.line(5, places[i]), is[i]);
+        due.is("meanDepth()", x.meanDepth(), (3 + 2 + 2 + 103 + 74 + 108) / 6.0);
+        due.is("digest()", x.digest(), -4066313707126859945L);
     }
 
     private static List<Integer> closedOf(PlainHornbook y) {
@@ -376,8 +390,7 @@ public final class RoomTest {
             else if (isSmall && i % 5 == 3) due.is("as", x.as(a, t), y.as(a, t));
             else due.is("call", x.call(a, i % 2, b, c), y.call(a, i % 2, b, c));
         }
-        // without a JOIN in a large forest, as PlainHornbook would have to write it down
-        List<PlainHornbook.Judged> all = y.judge(-1);
+            List<PlainHornbook.Judged> all = y.judge(-1);
         for (int i = 0; i < 40; i++) {
             PlainHornbook.Judged is = all.get(i);
             due.is("chosen(" + i + ")", x.chosen(i), is.chosen);
