@@ -118,6 +118,8 @@ public final class Hornbook {
     private static final int DEPTH = 7;
     private static final int LINE = 8;
     private static final int PARTS_AND_PARENTS = 4;
+    /** Each part can be asked for both ways. */
+    private static final int MOST_WAYS = 2 * MOST_PARAMETERS;
 
     /** Told TYPES are at most 4 deep; a guard for what goes down in one. */
     private static final int MOST_LEVELS = 20;
@@ -285,7 +287,7 @@ public final class Hornbook {
     public boolean isUnder(int a, int b) throws IndexOutOfBoundsException {
         needType(a);
         needType(b);
-        return room.goesUnder(room.toldAt(a), room.toldAt(b));
+        return room.ask(ORDER, room.toldAt(a), room.toldAt(b)) == YES;
     }
 
     public int road(int type, int place, int k) throws IndexOutOfBoundsException {
@@ -599,7 +601,7 @@ public final class Hornbook {
                     break;
                 case AS:
                     at.result = at.told;
-                    if (!room.goesUnder(resultOf(at.a), at.told)) at.fault = NOT_UNDER;
+                    if (room.ask(ORDER, resultOf(at.a), at.told) != YES) at.fault = NOT_UNDER;
                     break;
                 default:
                     at.result = NOTHING_TYPE;
@@ -786,61 +788,58 @@ public final class Hornbook {
             first[SECOND_PARAMETER] = (long) HAS_SECOND << UPPER;
         }
 
-        boolean isThere(int id) {
-            return id >= 0 && id < used && id < second.length;
-        }
-
         int formOf(int id) {
-            return isThere(id) ? (int) (second[id] >>> FORM_AT) : LEAF;
+            return id >= 0 && id < second.length ? (int) (second[id] >>> FORM_AT) : LEAF;
         }
 
         /** What is found there by now. What a JOIN is linked to can have been linked to another one later. */
         int through(int id) {
             int at = id;
-            for (int n = 0; n < MOST_LINKS && isThere(at) && (int) (second[at] >>> FORM_AT) == LINKED; n++) {
+            for (int n = 0; n < MOST_LINKS && at >= 0 && at < second.length; n++) {
+                if ((int) (second[at] >>> FORM_AT) != LINKED) break;
                 at = (int) (second[at] >>> ONE_AT) & ID_MASK;
             }
             return at;
         }
 
         boolean isJoin(int id) {
-            return isThere(id) && first[id] < 0;
+            return id >= 0 && id < second.length && first[id] < 0;
         }
 
         /** Whether it is a JOIN that wasn't looked at. */
         boolean isShut(int id) {
-            return isThere(id) && (int) (second[id] >>> FORM_AT) == SHUT;
+            return id >= 0 && id < second.length && (int) (second[id] >>> FORM_AT) == SHUT;
         }
 
         /** The first or second TYPE in it. */
         int partOf(int id, int turn) {
-            if (!isThere(id)) return ANY_TYPE;
+            if (id < 0 || id >= second.length) return ANY_TYPE;
             return (int) (second[id] >>> (turn == 0 ? ONE_AT : OTHER_AT)) & ID_MASK;
         }
 
         /** The first or second of a JOIN. */
         int joinedOf(int id, int turn) {
-            if (!isThere(id)) return ANY_TYPE;
+            if (id < 0 || id >= second.length) return ANY_TYPE;
             return (int) (first[id] >>> (turn == 0 ? UPPER : ID_BITS)) & ID_MASK;
         }
 
         /** What is OPEN in it. */
         int openOf(int id) {
-            return !isThere(id) || first[id] < 0 ? 0 : (int) (first[id] >>> UPPER) & OPEN;
+            return id < 0 || id >= second.length || first[id] < 0 ? 0 : (int) (first[id] >>> UPPER) & OPEN;
         }
 
         /** The DEPTH of what is no JOIN. */
         int depthOf(int id) {
-            return isThere(id) ? (int) (second[id] >>> DEPTH_AT) & DEPTH_MASK : 0;
+            return id >= 0 && id < second.length ? (int) (second[id] >>> DEPTH_AT) & DEPTH_MASK : 0;
         }
 
         int reachOf(int id) {
-            return isThere(id) ? (int) second[id] & DEPTH_MASK : 0;
+            return id >= 0 && id < second.length ? (int) second[id] & DEPTH_MASK : 0;
         }
 
         /** A DEPTH that it doesn't go beyond; UNKNOWN if there is none. */
         int mostDepthOf(int id) {
-            if (!isThere(id)) return 0;
+            if (id < 0 || id >= second.length) return 0;
             int most = (int) (second[id] >>> DEPTH_AT) & DEPTH_MASK;
             if (first[id] >= 0 || most != UNKNOWN) return most;
             int a = (int) (first[id] >>> UPPER) & ID_MASK;
@@ -851,17 +850,17 @@ public final class Hornbook {
         }
 
         void putMostDepth(int id, int depth) {
-            if (!isThere(id) || depth < 0 || depth >= UNKNOWN) return;
+            if (id < 0 || id >= second.length || depth < 0 || depth >= UNKNOWN) return;
             second[id] = second[id] & ~((long) DEPTH_MASK << DEPTH_AT) | (long) depth << DEPTH_AT;
         }
 
         void putReach(int id, int reach) {
-            if (!isThere(id) || reach < 0) return;
+            if (id < 0 || id >= second.length || reach < 0) return;
             second[id] = second[id] & ~(long) DEPTH_MASK | Math.min(reach, ENDLESS);
         }
 
         void putForm(int id, int form, int one, int other) {
-            if (!isThere(id)) return;
+            if (id < 0 || id >= second.length) return;
             second[id] = (long) form << FORM_AT | (long) one << ONE_AT | (long) other << OTHER_AT
                     | second[id] & LOWER_MASK;
         }
@@ -918,7 +917,7 @@ public final class Hornbook {
 
         /** Whether no JOIN is in it, and it is not so deep that one had better be. */
         boolean isFlat(int id) {
-            return isThere(id) && first[id] >= 0 && ((int) (second[id] >>> DEPTH_AT) & DEPTH_MASK) < DEEPEST_FLAT;
+            return id >= 0 && id < second.length && first[id] >= 0 && ((int) (second[id] >>> DEPTH_AT) & DEPTH_MASK) < DEEPEST_FLAT;
         }
 
         void need(int id) {
@@ -935,17 +934,21 @@ public final class Hornbook {
             return id < LEAVES || id >> 6 < marks.length && (marks[id >> 6] >> (id & 63) & 1) == 1;
         }
 
-        /** What was found out about a JOIN and a few levels of what is in it stays. */
-        void pin(int id, int level) {
-            if (id < LEAVES || id >= used || id >= second.length || id >> 6 >= pins.length || level < 0) return;
-            if (first[id] >= 0) return;
-            pins[id >> 6] |= 1L << (id & 63);
+        /** As need; what was found out about a JOIN and some levels of what is in it stays, too. */
+        void needRoot(int id, int level) {
+            if (id < LEAVES || id >= used || id >= second.length || id >> 6 >= pins.length) return;
+            long bit = 1L << (id & 63);
+            if ((marks[id >> 6] & bit) == 0) {
+                marks[id >> 6] |= bit;
+                first[id] = first[id] & ~(long) ID_MASK | marked;
+                marked = id;
+                live++;
+            }
             int form = (int) (second[id] >>> FORM_AT);
-            int one = (int) (second[id] >>> ONE_AT) & ID_MASK;
-            int other = (int) (second[id] >>> OTHER_AT) & ID_MASK;
-            if (form == SHUT) return;
-            pin(one, form == LINKED ? level : level - 1);
-            if (form != LINKED) pin(other, level - 1);
+            if (first[id] >= 0 || form == SHUT || level < 0) return;
+            pins[id >> 6] |= bit;
+            needRoot((int) (second[id] >>> ONE_AT) & ID_MASK, form == LINKED ? level : level - 1);
+            if (form != LINKED) needRoot((int) (second[id] >>> OTHER_AT) & ID_MASK, level - 1);
         }
 
         /** Marks what is in those that are marked; what was found out about JOINS is forgotten, if it isn't pinned. */
@@ -1073,20 +1076,23 @@ public final class Hornbook {
         }
 
         void keep(int a, int b, int number) {
-            if (count * 2 >= slots.length && slots.length < MOST_SLOTS) grow();
-            add(((long) a << ID_BITS | b) << VALUE_BITS | number);
+            store(((long) a << ID_BITS | b) << VALUE_BITS | number);
         }
 
-        private void grow() {
+        boolean isCrowded() {
+            return count * 2 >= slots.length && slots.length < MOST_SLOTS;
+        }
+
+        void grow() {
             long[] old = slots;
             slots = new long[Math.min(old.length * GROWTH, MOST_SLOTS)];
             count = 0;
             for (int i = 0; i < old.length; i++) {
-                if (old[i] != 0) add(old[i]);
+                if (old[i] != 0) store(old[i]);
             }
         }
 
-        private void add(long entry) {
+        private void store(long entry) {
             long key = entry >>> VALUE_BITS;
             int slot = (int) (key * SPREAD >>> 40) & (slots.length - SLOTS_A_ROW);
             int place = NONE;
@@ -1223,8 +1229,9 @@ public final class Hornbook {
         }
 
         /**
-         * Forgets what nobody needs; the second time within one question there is made more room, too. If all that was found out about JOINS is too much, it is forgotten, too, but for
-         * what lies next to an open question, as else that could never be answered.
+         * Forgets what nobody needs; the second time within one question there is made more room, too. If all that was
+         * found out about JOINS is too much, it is forgotten, too, but for what lies next to an open question, as else
+         * that could never be answered.
          */
         private void giveBack() {
             needRoots(false);
@@ -1232,8 +1239,15 @@ public final class Hornbook {
             if ((isTidied || nodes.isCrowded()) && nodes.canGrow()) {
                 nodes.grow();
             } else if (nodes.isCrowded()) {
-                forgetJoins(true);
-                if (nodes.isCrammed()) forgetJoins(false);
+                nodes.unmark();
+                needRoots(true);
+                nodes.needDearest();
+                nodes.needInner(true);
+                if (nodes.isCrammed()) {
+                    nodes.unmark();
+                    needRoots(true);
+                    nodes.needInner(true);
+                }
                 nodes.shutJoins();
             }
             isTidied = true;
@@ -1242,31 +1256,21 @@ public final class Hornbook {
             nodes.sweep();
         }
 
-        private void forgetJoins(boolean isDearKept) {
-            nodes.unmark();
-            needRoots(true);
-            if (isDearKept) nodes.needDearest();
-            nodes.needInner(true);
-        }
-
         private void needRoots(boolean isPinned) {
             for (int i = 0; i < tellings && i < told.length; i++) nodes.need(told[i]);
-            for (int i = 0; i < holding && i < held.length; i++) needRoot(held[i], isPinned);
+            int level = isPinned ? DEEPEST_TOLD : NONE;
+            for (int i = 0; i < holding && i < held.length; i++) nodes.needRoot(held[i], level);
             for (int i = 0; i < asking && i < steps.size(); i++) {
                 Step at = steps.get(i);
-                needRoot(at.a, isPinned);
-                if (at.kind == ORDER || at.kind == FORM) needRoot(at.b, isPinned);
-                needRoot(at.x, isPinned);
-                needRoot(at.y, isPinned);
-                needRoot(at.one, isPinned);
-                needRoot(at.other, isPinned);
+                nodes.needRoot(at.self, level);
+                nodes.needRoot(at.a, level);
+                if (at.kind == ORDER || at.kind == FORM) nodes.needRoot(at.b, level);
+                nodes.needRoot(at.x, level);
+                nodes.needRoot(at.y, level);
+                nodes.needRoot(at.one, level);
+                nodes.needRoot(at.other, level);
             }
-            needRoot(last, isPinned);
-        }
-
-        private void needRoot(int id, boolean isPinned) {
-            nodes.need(id);
-            if (isPinned) nodes.pin(id, DEEPEST_TOLD);
+            nodes.needRoot(last, level);
         }
 
         /** Puts TYPES in the place of the PARAMETERS and of the OWN TYPE; NONE leaves one as it is. */
@@ -1321,22 +1325,19 @@ public final class Hornbook {
             return ask(LINE, id, NONE);
         }
 
-        /** Whether a is UNDER b; also if there is neither. */
-        boolean goesUnder(int a, int b) {
-            return a == NONE || b == NONE ? a == b : ask(ORDER, a, b) == YES;
-        }
-
         /**
          * Each step goes down in one TYPE and along the ROAD of the other, to SORTS with smaller numbers, so none comes
-         * again while it stands open.
+         * again while it stands open. What isn't there is UNDER what isn't there.
          */
         int ask(int kind, int a, int b) {
+            if (kind == ORDER && (a == NONE || b == NONE)) return a == b ? YES : NO;
             asking = 0;
             last = NONE;
             isTidied = false;
             open(kind, a, b);
             for (long n = 0; n < MOST_STEPS && asking > 0 && asking <= steps.size(); n++) {
                 if (nodes.isFull()) giveBack();
+                if (pairs.isCrowded()) pairs.grow();
                 Step top = steps.get(asking - 1);
                 switch (top.kind) {
                     case ORDER: stepOrder(top); break;
@@ -1358,6 +1359,7 @@ public final class Hornbook {
             Step added = steps.get(asking);
             asking++;
             added.kind = kind;
+            added.self = NONE;
             added.a = a;
             added.b = b;
             added.wanted = b;
@@ -1444,7 +1446,7 @@ public final class Hornbook {
             }
             int answer = form >= sorts.size() ? NO : YES;
             Sort sort = answer == NO ? null : sorts.get(form);
-            while (answer == YES && sort != null && s.turn < sort.many) {
+            for (int n = 0; n < MOST_WAYS && answer == YES && sort != null && s.turn < sort.many; n++) {
                 int x = nodes.through(nodes.partOf(s.x, s.turn));
                 int y = nodes.through(nodes.partOf(s.b, s.turn));
                 int how = sort.howAt(s.turn);
@@ -1489,19 +1491,15 @@ public final class Hornbook {
             int answer = s.phase == 2 ? order(s, s.a, s.b) : order(s, s.b, s.a);
             if (answer == NONE) return;
             if (answer == YES) {
-                link(s, s.phase == 2 ? s.b : s.a);
+                last = s.phase == 2 ? s.b : s.a;
+                nodes.putForm(s.self, LINKED, last, ANY_TYPE);
+                asking--;
             } else if (s.phase == 2) {
                 s.phase = 3;
             } else {
                 s.kind = MEET;
                 s.phase = 0;
             }
-        }
-
-        private void link(Step s, int target) {
-            nodes.putForm(s.self, LINKED, target, ANY_TYPE);
-            last = target;
-            asking--;
         }
 
         /** Goes along the ROAD of a to the next one for which there is one of the same SORT on the ROAD of b. */
@@ -1518,7 +1516,8 @@ public final class Hornbook {
                 sort = from.wayAt(s.place);
             }
             if (sort == NONE) {
-                link(s, ANY_TYPE);
+                nodes.putForm(s.self, LINKED, ANY_TYPE, ANY_TYPE);
+                answer(ANY_TYPE);
                 return;
             }
             if (s.phase == 0) {
@@ -1543,7 +1542,7 @@ public final class Hornbook {
             s.y = nodes.through(s.y);
             int form = nodes.formOf(s.x);
             Sort sort = form >= sorts.size() ? null : sorts.get(form);
-            while (sort != null && s.turn < sort.many) {
+            for (int n = 0; n < MOST_WAYS && sort != null && s.turn < sort.many; n++) {
                 int x = nodes.through(nodes.partOf(s.x, s.turn));
                 int y = nodes.through(nodes.partOf(s.y, s.turn));
                 int how = sort.howAt(s.turn);
@@ -1574,12 +1573,10 @@ public final class Hornbook {
         private void putForm(Step s, int form) {
             int one = nodes.through(s.one);
             int other = nodes.through(s.other);
-            if (nodes.isFlat(one) && nodes.isFlat(other)) {
-                link(s, nodes.make(form, one, other));
-                return;
-            }
-            nodes.putForm(s.self, form, one, other);
-            answer(s.self);
+            boolean isFlat = nodes.isFlat(one) && nodes.isFlat(other);
+            last = isFlat ? nodes.make(form, one, other) : s.self;
+            nodes.putForm(s.self, isFlat ? LINKED : form, isFlat ? last : one, isFlat ? ANY_TYPE : other);
+            asking--;
         }
 
         /** The TYPE as what it is in another one, if it isn't too deep for that; TOO_DEEP if it is. NONE: not yet known. */
@@ -1816,7 +1813,14 @@ public final class Hornbook {
             room.hold(from);
             room.hold(one);
             room.hold(other);
-            lookAround(from, name);
+            seen = 0;
+            int shape = room.ask(FORM, from, NONE);
+            int form = room.nodes.formOf(shape);
+            if (form < room.sorts.size()) {
+                int cut = room.ask(ROAD, shape, form);
+                room.hold(cut);
+                lookAround(from, cut, room.sorts.get(form), name);
+            }
             taking = 0;
             for (int i = 0; i < seen; i++) {
                 Candidate at = candidates[i];
@@ -1828,7 +1832,7 @@ public final class Hornbook {
                     gatherHints(at.other, other, 0);
                     settleOwn(at);
                 }
-                at.takes = room.goesUnder(one, at.one) && room.goesUnder(other, at.other);
+                at.takes = room.ask(ORDER, one, at.one) == YES && room.ask(ORDER, other, at.other) == YES;
                 if (at.takes) taking++;
             }
             best = null;
@@ -1841,18 +1845,8 @@ public final class Hornbook {
             return best == null ? NONE_BEST : 0;
         }
 
-        private void lookAround(int given, int name) {
-            seen = 0;
-            int at = room.ask(FORM, given, NONE);
-            int form = room.nodes.formOf(at);
-            if (form >= room.sorts.size()) return;
-            Sort sort = room.sorts.get(form);
-            int cut = room.ask(ROAD, at, form);
-            room.hold(cut);
-            lookFrom(given, cut, sort, name);
-        }
-
-        private void lookFrom(int given, int cut, Sort sort, int name) {
+        /** Looks for METHODS along the ROAD; inside of a SORT it itself is what it is when it is cut. */
+        private void lookAround(int given, int cut, Sort sort, int name) {
             for (int i = 0; i < methods.size() && seen < candidates.length; i++) {
                 Method at = methods.get(i);
                 boolean isSeen = at.name == name && at.number != without && sort.goesTo(at.sort);
@@ -1884,7 +1878,7 @@ public final class Hornbook {
         private void settleOwn(Candidate at) {
             for (int i = 0; i < hinted && at.own == NONE; i++) {
                 boolean isAbove = true;
-                for (int j = 0; j < hinted && isAbove; j++) isAbove = room.goesUnder(hints[j], hints[i]);
+                for (int j = 0; j < hinted && isAbove; j++) isAbove = room.ask(ORDER, hints[j], hints[i]) == YES;
                 if (isAbove) at.own = hints[i];
             }
             if (at.own == NONE) at.own = ANY_TYPE;
@@ -1927,8 +1921,8 @@ public final class Hornbook {
             for (int i = 0; i < seen; i++) {
                 Candidate d = candidates[i];
                 if (d == c || !d.takes) continue;
-                if (!room.goesUnder(c.one, d.one) || !room.goesUnder(c.other, d.other)) return false;
-                boolean isBack = room.goesUnder(d.one, c.one) && room.goesUnder(d.other, c.other);
+                if (room.ask(ORDER, c.one, d.one) != YES || room.ask(ORDER, c.other, d.other) != YES) return false;
+                boolean isBack = room.ask(ORDER, d.one, c.one) == YES && room.ask(ORDER, d.other, c.other) == YES;
                 if (isBack && c.place >= d.place) return false;
             }
             return true;
