@@ -1143,20 +1143,16 @@ public final class Hornbook {
         int place;
         int turn;
         int best;
-        /** Whether a part was asked for the other way round, too. */
+        /** Whether a part at an IN place is asked for the other way round; for DEPTH whether the second one comes first. */
         boolean isBack;
         /** Whether what was asked last for this has its answer by now. */
         boolean isAnswered;
 
-        void passPart() {
-            turn++;
-            isBack = false;
-        }
-
         void take(int part) {
             if (turn == 0) one = part;
             else other = part;
-            passPart();
+            turn++;
+            isBack = false;
         }
     }
 
@@ -1446,20 +1442,14 @@ public final class Hornbook {
             }
             int answer = form >= sorts.size() ? NO : YES;
             Sort sort = answer == NO ? null : sorts.get(form);
-            for (int n = 0; n < MOST_WAYS && answer == YES && sort != null && s.turn < sort.many; n++) {
-                int x = nodes.through(nodes.partOf(s.x, s.turn));
-                int y = nodes.through(nodes.partOf(s.b, s.turn));
+            for (; answer == YES && sort != null && s.turn < sort.many; s.turn++) {
+                int x = nodes.partOf(s.x, s.turn);
+                int y = nodes.partOf(s.b, s.turn);
                 int how = sort.howAt(s.turn);
-                if (how == FIXED && !s.isAnswered && !nodes.isJoin(x) && !nodes.isJoin(y)) {
-                    answer = x == y ? YES : NO;
-                } else if (how == IN || s.isBack) {
-                    answer = order(s, y, x);
-                } else {
-                    answer = order(s, x, y);
-                }
+                // at a FIXED place there is never a JOIN, so the SAME has the same number
+                if (how == FIXED) answer = x == y ? YES : NO;
+                else answer = how == OUT ? order(s, x, y) : order(s, y, x);
                 if (answer == NONE) return;
-                if (how == FIXED && !s.isBack && x != y) s.isBack = true;
-                else s.passPart();
             }
             pairs.keep(s.a, s.b, answer);
             answer(answer);
@@ -1550,16 +1540,12 @@ public final class Hornbook {
                     s.take(joinOf(x, y));
                     continue;
                 }
-                int answer;
-                if (how == FIXED && !s.isAnswered && !nodes.isJoin(x) && !nodes.isJoin(y)) answer = x == y ? YES : NO;
-                else answer = s.isBack ? order(s, y, x) : order(s, x, y);
+                int answer = how == FIXED ? x == y ? YES : NO : s.isBack ? order(s, y, x) : order(s, x, y);
                 if (answer == NONE) return;
-                // FIXED asks for both ways to be so, IN for one of them
-                boolean isLast = how == FIXED ? answer == NO || s.isBack || x == y : answer == YES || s.isBack;
-                if (!isLast) {
+                if (answer == YES) {
+                    s.take(s.isBack ? y : x);
+                } else if (how == IN && !s.isBack) {
                     s.isBack = true;
-                } else if (answer == YES) {
-                    s.take(how == IN && s.isBack ? y : x);
                 } else {
                     s.kind = MEET;
                     s.phase = 0;

@@ -144,6 +144,7 @@ public final class RoomTest {
             orders("small forest " + i, x, y);
             joins("small forest " + i, x, y);
             choices("small forest " + i, smallForest(i), true, y);
+            towers("small forest " + i, smallForest(i));
         }
         for (int i = 0; i < FORESTS.length && args.length == 0; i++) large(i);
         if (small == 0 || args.length == 0) largeResults();
@@ -399,7 +400,27 @@ public final class RoomTest {
                 due.is("own(" + i + ", " + k + ")", x.own(i, k), PlainHornbook.at(is.own, k));
             }
         }
+        if (isSmall) due.is("meanDepth()", x.meanDepth(), y.meanDepth());
         due.is("digest()", x.digest(), y.digest());
+        countKept(x);
+    }
+
+    /** EITHERS of EITHERS, as many as there can be. */
+    private static void towers(String name, String forest) {
+        due.part("promises 8, 17 and 31 in " + name);
+        Hornbook x = new Hornbook();
+        Remembering y = new Remembering();
+        tell(x, y, forest);
+        List<Integer> closed = closedOf(y);
+        for (int e = 0; e < 40; e++) {
+            int t = closed.get(next(closed.size()));
+            int a = Math.max(0, e - 1 - next(8));
+            int b = next(e + 1) / 2;
+            if (e % 4 == 0) due.is("value", x.value(t), y.value(t));
+            else due.is("either", x.either(a, b), y.either(a, b));
+            if (e % 4 == 3) due.is("meanDepth()", x.meanDepth(), y.meanDepth());
+        }
+        lines(x, y, 0);
         countKept(x);
     }
 
