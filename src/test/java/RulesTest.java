@@ -6,8 +6,13 @@ import java.lang.reflect.Modifier;
 import java.nio.charset.StandardCharsets;
 import java.nio.file.Files;
 import java.nio.file.Path;
+import java.util.ArrayDeque;
 import java.util.Arrays;
+import java.util.HashMap;
 import java.util.List;
+import java.util.Map;
+import java.util.Set;
+import java.util.TreeMap;
 import java.util.TreeSet;
 import java.util.regex.Matcher;
 import java.util.regex.Pattern;
@@ -29,6 +34,7 @@ public final class RulesTest {
         words(source, bare);
         exceptions(bare);
         methods(bare);
+        calls(bare);
         due.end();
     }
 
@@ -114,5 +120,66 @@ public final class RulesTest {
             due.is("line " + (i + 1) + " is within sixty lines of its method", i - begun > 60 && level > 2, false);
         }
         due.is("what is opened is closed", level, 0);
+    }
+
+    /** Each method's name, as Class.name, and its text. */
+    private static Map<String, String> bodies(String bare) {
+        Map<String, String> bodies = new TreeMap<>();
+        Pattern part = Pattern.compile("class\\s+(\\w+)[^{;]*\\{|(\\w+)\\s*\\([^(){};]*\\)\\s*(?:throws[\\w\\s,]+)?\\{|\\{|\\}");
+        Matcher at = part.matcher(bare);
+        ArrayDeque<String> open = new ArrayDeque<>();
+        ArrayDeque<Integer> begun = new ArrayDeque<>();
+        String inside = "";
+        while (at.find()) {
+            if (at.group().equals("}")) {
+                String name = open.pop();
+                int from = begun.pop();
+                if (name.contains(".")) bodies.merge(name, bare.substring(from, at.start()), String::concat);
+                continue;
+            }
+            boolean isMethod = at.group(2) != null && !at.group(2).matches("if|for|while|switch");
+            if (at.group(1) != null) inside = at.group(1);
+            open.push(isMethod ? inside + "." + at.group(2) : "");
+            begun.push(at.end());
+        }
+        return bodies;
+    }
+
+    /** The methods that one calls; those of a list have names of their own. */
+    private static TreeSet<String> called(String from, String body, Set<String> all) {
+        TreeSet<String> called = new TreeSet<>();
+        String own = from.substring(0, from.indexOf('.') + 1);
+        Matcher at = Pattern.compile("(\\w+\\)*\\.)?(\\w+)\\s*\\(").matcher(body);
+        while (at.find()) {
+            String name = at.group(2);
+            if (at.group(1) == null && all.contains(own + name)) called.add(own + name);
+            if (at.group(1) == null) continue;
+            for (String other : all) if (other.endsWith("." + name) && !other.startsWith(own)) called.add(other);
+        }
+        called.remove(from);
+        return called;
+    }
+
+    private static void calls(String bare) {
+        due.part("rule 11, calls that go at most eight deep");
+        Map<String, String> bodies = bodies(bare);
+        Map<String, Integer> depths = new HashMap<>();
+        Map<String, TreeSet<String>> graph = new TreeMap<>();
+        for (String name : bodies.keySet()) graph.put(name, called(name, bodies.get(name), bodies.keySet()));
+        due.is("most methods are seen", graph.size() > 150, true);
+        int deepest = 0;
+        for (String name : graph.keySet()) deepest = Math.max(deepest, depth(name, graph, depths, 0));
+        due.is("the deepest is " + deepest, deepest <= 8, true);
+        due.is("the deepest is more than five", deepest > 5, true);
+    }
+
+    private static int depth(String name, Map<String, TreeSet<String>> graph, Map<String, Integer> depths, int level) {
+        if (level > 60) return 1000;
+        Integer known = depths.get(name);
+        if (known != null) return known;
+        int deepest = 0;
+        for (String other : graph.get(name)) deepest = Math.max(deepest, depth(other, graph, depths, level + 1));
+        depths.put(name, deepest + 1);
+        return deepest + 1;
     }
 }
