@@ -106,6 +106,8 @@ public final class Hornbook {
     /** Far above what a question needs. */
     private static final long MOST_STEPS = 1L << 40;
     private static final long SPREAD = 0x9E3779B97F4A7C15L;
+    /** The bits from here on are spread best; there are more of them than heads or slots. */
+    private static final int HEAD_AT = 43;
 
     /** The questions: whether one is UNDER another; what a JOIN comes to be, and its ways to that; and others. */
     private static final int ORDER = 0;
@@ -870,7 +872,7 @@ public final class Hornbook {
             boolean isJoin = form == SHUT;
             long parts = (long) form << FORM_AT | (long) one << ONE_AT | (long) other << OTHER_AT;
             long key = isJoin ? JOIN_BIT | (long) one << UPPER | (long) other << ID_BITS : parts;
-            int head = (int) (key * SPREAD >>> 40) & (heads.length - 1);
+            int head = (int) (key * SPREAD >>> HEAD_AT) & (heads.length - 1);
             int at = heads[head];
             for (int n = 0; n < MOST_NODES && at > 0 && at < second.length; n++) {
                 long found = isJoin ? first[at] & ~(long) ID_MASK : second[at] & ~LOWER_MASK;
@@ -936,19 +938,24 @@ public final class Hornbook {
 
         /** As need; what was found out about a JOIN and some levels of what is in it stays, too. */
         void needRoot(int id, int level) {
-            if (id < LEAVES || id >= used || id >= second.length || id >> 6 >= pins.length) return;
-            long bit = 1L << (id & 63);
-            if ((marks[id >> 6] & bit) == 0) {
-                marks[id >> 6] |= bit;
-                first[id] = first[id] & ~(long) ID_MASK | marked;
-                marked = id;
-                live++;
+            int at = id;
+            int form = LINKED;
+            for (int n = 0; n < MOST_LINKS && form == LINKED; n++) {
+                if (at < LEAVES || at >= used || at >= second.length || at >> 6 >= pins.length) return;
+                long bit = 1L << (at & 63);
+                if ((marks[at >> 6] & bit) == 0) {
+                    marks[at >> 6] |= bit;
+                    first[at] = first[at] & ~(long) ID_MASK | marked;
+                    marked = at;
+                    live++;
+                }
+                form = (int) (second[at] >>> FORM_AT);
+                if (first[at] >= 0 || form == SHUT || level < 0) return;
+                pins[at >> 6] |= bit;
+                if (form == LINKED) at = (int) (second[at] >>> ONE_AT) & ID_MASK;
             }
-            int form = (int) (second[id] >>> FORM_AT);
-            if (first[id] >= 0 || form == SHUT || level < 0) return;
-            pins[id >> 6] |= bit;
-            needRoot((int) (second[id] >>> ONE_AT) & ID_MASK, form == LINKED ? level : level - 1);
-            if (form != LINKED) needRoot((int) (second[id] >>> OTHER_AT) & ID_MASK, level - 1);
+            needRoot((int) (second[at] >>> ONE_AT) & ID_MASK, level - 1);
+            needRoot((int) (second[at] >>> OTHER_AT) & ID_MASK, level - 1);
         }
 
         /** Marks what is in those that are marked; what was found out about JOINS is forgotten, if it isn't pinned. */
@@ -1035,7 +1042,7 @@ public final class Hornbook {
             for (int id = LEAVES; id < used && id < second.length; id++) {
                 if (!isNeeded(id)) continue;
                 long key = first[id] < 0 ? first[id] & ~(long) ID_MASK : second[id] & ~LOWER_MASK;
-                int head = (int) (key * SPREAD >>> 40) & (heads.length - 1);
+                int head = (int) (key * SPREAD >>> HEAD_AT) & (heads.length - 1);
                 first[id] = first[id] & ~(long) ID_MASK | heads[head];
                 heads[head] = id;
                 count++;
@@ -1068,7 +1075,7 @@ public final class Hornbook {
         /** NONE, if there is no such pair. */
         int find(int a, int b) {
             long key = (long) a << ID_BITS | b;
-            int slot = (int) (key * SPREAD >>> 40) & (slots.length - SLOTS_A_ROW);
+            int slot = (int) (key * SPREAD >>> HEAD_AT) & (slots.length - SLOTS_A_ROW);
             for (int i = slot; i < slot + SLOTS_A_ROW && i < slots.length; i++) {
                 if (slots[i] >>> VALUE_BITS == key) return (int) slots[i] & ID_MASK;
             }
@@ -1094,7 +1101,7 @@ public final class Hornbook {
 
         private void store(long entry) {
             long key = entry >>> VALUE_BITS;
-            int slot = (int) (key * SPREAD >>> 40) & (slots.length - SLOTS_A_ROW);
+            int slot = (int) (key * SPREAD >>> HEAD_AT) & (slots.length - SLOTS_A_ROW);
             int place = NONE;
             for (int i = slot; i < slot + SLOTS_A_ROW && i < slots.length; i++) {
                 if (slots[i] == 0 || slots[i] >>> VALUE_BITS == key) place = i;
