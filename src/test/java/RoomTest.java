@@ -353,6 +353,19 @@ public final class RoomTest {
         for (int i = 0; i < is.length; i++) due.is("line(5, " + places[i] + ")", x.line(5, places[i]), is[i]);
         due.is("meanDepth()", x.meanDepth(), (3 + 2 + 2 + 103 + 74 + 108) / 6.0);
         due.is("digest()", x.digest(), -4066313707126859945L);
+        // EITHERS of such EITHERS: 1050064 TYPES in one of two with 1049696 and 1048132; 1748905 in one with 1244926
+        due.is("meanDepth()", tower(0, 2, 4, 0, 0, 2, 3, 0).meanDepth(), 599 / 12.0);
+        due.is("meanDepth()", tower(4, 0, 0, 1, 0, 2, 0, 2).meanDepth(), 607 / 12.0);
+    }
+
+    /** Four EITHERS of VALUES, two of these, one of both. */
+    private static Hornbook tower(int... pairs) {
+        Hornbook x = new Hornbook();
+        tell(x, new PlainHornbook(), TOWER);
+        for (int t : new int[] {30, 28, 7, 5, 19}) x.value(t);
+        for (int i = 0; i < 8; i += 2) x.either(pairs[i], pairs[i + 1]);
+        for (int i = 0; i < 3; i++) x.either(5 + 2 * i, 6 + 2 * i);
+        return x;
     }
 
     private static List<Integer> closedOf(PlainHornbook y) {
