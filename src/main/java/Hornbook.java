@@ -1255,7 +1255,9 @@ public final class Hornbook {
             }
             isTidied = true;
             pairs.purge(nodes);
-            Arrays.fill(sizes, 0L);
+            for (int i = 0; i < sizes.length; i++) {
+                if (sizes[i] != 0 && !nodes.isNeeded((int) (sizes[i] >>> SIZE_BITS))) sizes[i] = 0;
+            }
             nodes.sweep();
         }
 
