@@ -97,8 +97,9 @@ public final class Hornbook {
     private static final int MOST_SLOTS = 1 << 19;
     private static final int SLOTS_A_ROW = 4;
     private static final int VALUE_BITS = 22;
-    /** From so many places on it is worth while to remember how long LINES are. */
+    /** When so many places of a LINE were passed, it is worth while to remember how long LINES are. */
     private static final int LONG_LINE = 1 << 10;
+    private static final int FIRST_SIZES = 1 << 6;
     private static final int MOST_SIZES = 1 << 17;
     private static final int SIZE_BITS = 32;
     private static final long SIZE_MASK = (1L << SIZE_BITS) - 1;
@@ -1130,6 +1131,56 @@ public final class Hornbook {
         }
     }
 
+    /** How long LINES are, as far as there is room; there is no row before one is kept. */
+    private static final class Sizes {
+        /** 0 where nothing is; else the number of a TYPE and how long its LINE is. */
+        private long[] slots = new long[0];
+        /** How many were kept since there is so much room, those that gave way, too. */
+        private int count = 0;
+
+        void forget() {
+            if (count > 0) Arrays.fill(slots, 0L);
+            count = 0;
+        }
+
+        /** 0, if it isn't known. */
+        int find(int id) {
+            int slot = id & (slots.length - 1);
+            boolean isThere = slot >= 0 && slot < slots.length && slots[slot] >>> SIZE_BITS == id;
+            return isThere ? (int) (slots[slot] & SIZE_MASK) : 0;
+        }
+
+        void keep(int id, int size) {
+            if (count * 2 >= slots.length && slots.length < MOST_SIZES) grow();
+            int slot = id & (slots.length - 1);
+            if (slot < 0 || slot >= slots.length) return;
+            slots[slot] = (long) id << SIZE_BITS | size;
+            if (count < MOST_SIZES) count++;
+        }
+
+        private void grow() {
+            long[] grown = new long[Math.min(Math.max(slots.length * GROWTH, FIRST_SIZES), MOST_SIZES)];
+            count = 0;
+            for (int i = 0; i < slots.length; i++) {
+                int slot = (int) (slots[i] >>> SIZE_BITS) & (grown.length - 1);
+                if (slots[i] == 0 || slot < 0 || slot >= grown.length) continue;
+                grown[slot] = slots[i];
+                count++;
+            }
+            slots = grown;
+        }
+
+        /** To be called as long as what is needed is marked. */
+        void purge(Nodes nodes) {
+            count = 0;
+            for (int i = 0; i < slots.length; i++) {
+                if (slots[i] == 0) continue;
+                if (nodes.isNeeded((int) (slots[i] >>> SIZE_BITS))) count++;
+                else slots[i] = 0;
+            }
+        }
+    }
+
     /** A question that stands open. */
     private static final class Step {
         int kind;
@@ -1181,10 +1232,10 @@ public final class Hornbook {
         private boolean isTidied = false;
         /** The last answer. */
         private int last = NONE;
-        /** How many places of a LINE are still to be passed. */
+        /** How many places of a LINE are to be passed, and how many of them still are. */
+        private int passing = 0;
         private int left = 0;
-        /** How long LINES are, as far as there is room: a number and a length. */
-        private long[] sizes = new long[0];
+        private final Sizes sizes = new Sizes();
 
         Room() {
             for (int i = 0; i <= OWN; i++) told[i] = i;
@@ -1224,7 +1275,7 @@ public final class Hornbook {
             holding = 0;
             asking = 0;
             pairs.forget();
-            Arrays.fill(sizes, 0L);
+            sizes.forget();
             for (int i = 0; i < tellings && i < told.length; i++) nodes.need(told[i]);
             nodes.needInner(false);
             nodes.sweep();
@@ -1255,9 +1306,7 @@ public final class Hornbook {
             }
             isTidied = true;
             pairs.purge(nodes);
-            for (int i = 0; i < sizes.length; i++) {
-                if (sizes[i] != 0 && !nodes.isNeeded((int) (sizes[i] >>> SIZE_BITS))) sizes[i] = 0;
-            }
+            sizes.purge(nodes);
             nodes.sweep();
         }
 
@@ -1325,8 +1374,8 @@ public final class Hornbook {
 
         int lineAt(int id, int k) {
             if (id == NONE || k < 0) return NO_PLACE;
+            passing = k;
             left = k;
-            if (k >= LONG_LINE && sizes.length == 0) sizes = new long[MOST_SIZES];
             return ask(LINE, id, NONE);
         }
 
@@ -1730,7 +1779,6 @@ public final class Hornbook {
         private void stepLine(Step s) {
             s.a = nodes.through(s.a);
             int form = nodes.formOf(s.a);
-            int slot = sizes.length == 0 ? 0 : s.a & (sizes.length - 1);
             if (s.phase == 0) {
                 if (form == SHUT) {
                     open(FORM, s.a, NONE);
@@ -1743,9 +1791,9 @@ public final class Hornbook {
                 }
                 s.phase = 1;
                 s.wanted = left;
-                long known = slot < sizes.length && sizes[slot] >>> SIZE_BITS == s.a ? sizes[slot] & SIZE_MASK : 0;
+                int known = sizes.find(s.a);
                 if (known > 0 && known <= left) {
-                    left -= (int) known;
+                    left -= known;
                     answer(NO_PLACE);
                     return;
                 }
@@ -1757,7 +1805,7 @@ public final class Hornbook {
                 open(LINE, nodes.partOf(s.a, s.turn - 1), NONE);
                 return;
             }
-            if (slot < sizes.length) sizes[slot] = (long) s.a << SIZE_BITS | s.wanted - left;
+            if (passing - left >= LONG_LINE) sizes.keep(s.a, s.wanted - left);
             answer(NO_PLACE);
         }
     }

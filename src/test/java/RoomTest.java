@@ -74,12 +74,25 @@ public final class RoomTest {
         private final Map<T, List<T>> roads = new HashMap<>();
         private List<Judged> all;
 
-        @Override
-        int parent(int sort, int type) {
+        private void forget() {
             orders.clear();
             joins.clear();
             roads.clear();
+            all = null;
+        }
+
+        @Override
+        int parent(int sort, int type) {
+            forget();
             return super.parent(sort, type);
+        }
+
+        @Override
+        int faultsWith(int sort, int parameter, int how) {
+            forget();
+            int count = super.faultsWith(sort, parameter, how);
+            forget();
+            return count;
         }
 
         @Override
@@ -148,6 +161,7 @@ public final class RoomTest {
         }
         for (int i = 0; i < FORESTS.length && args.length == 0; i++) large(i);
         if (small == 0 || args.length == 0) largeResults();
+        if (args.length == 0) longLinesAnew();
         if (args.length == 0) largeTower();
         if (args.length == 0) tooLargeTower();
         System.out.println("at most " + mostKept + " TYPES are kept, " + mostHeld + " held");
@@ -304,6 +318,27 @@ public final class RoomTest {
     private static void lines(Hornbook x, Remembering y, int from) {
         for (int e = y.many(3) - 1; e >= from; e--) {
             for (int k : PLACES) due.is("line(" + e + ", " + k + ")", x.line(e, k), y.line(e, k));
+        }
+    }
+
+    /** What was found out about long LINES holds no longer when another PARENT is told, or for a while another way. */
+    private static void longLinesAnew() {
+        due.part("promises 3, 17 and 29, long LINES");
+        Hornbook x = new Hornbook();
+        Remembering y = new Remembering();
+        int parents = TOWER.indexOf(" u");
+        tell(x, y, TOWER.substring(0, parents));
+        List<Integer> closed = closedOf(y);
+        for (int t : closed.subList(2, 10)) due.is("value", x.value(t), y.value(t));
+        for (int i = 0; i < 8; i++) {
+            for (int j = 0; j < i; j++) due.is("either", x.either(i, j), y.either(i, j));
+        }
+        for (String parent : TOWER.substring(parents + 1).split(" ")) {
+            tell(x, y, parent);
+            lines(x, y, 8);
+            if (!parent.equals("u9,24")) continue;
+            due.is("faultsWith", x.faultsWith(10, 1, 0), y.faultsWith(10, 1, 0));
+            lines(x, y, 8);
         }
     }
 

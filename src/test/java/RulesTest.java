@@ -1,4 +1,5 @@
 import java.io.IOException;
+import java.lang.reflect.Array;
 import java.lang.reflect.Constructor;
 import java.lang.reflect.Field;
 import java.lang.reflect.Method;
@@ -9,6 +10,7 @@ import java.nio.file.Path;
 import java.util.ArrayDeque;
 import java.util.Arrays;
 import java.util.HashMap;
+import java.util.IdentityHashMap;
 import java.util.List;
 import java.util.Map;
 import java.util.Set;
@@ -35,6 +37,7 @@ public final class RulesTest {
         exceptions(bare);
         methods(bare);
         calls(bare);
+        longPlaces();
         due.end();
     }
 
@@ -120,6 +123,73 @@ public final class RulesTest {
             due.is("line " + (i + 1) + " is within sixty lines of its method", i - begun > 60 && level > 2, false);
         }
         due.is("what is opened is closed", level, 0);
+    }
+
+    private static void longPlaces() {
+        due.part("rule 12, a far place of a LINE makes no row");
+        int[] places = {1023, 1024, 131071, 131072, Integer.MAX_VALUE};
+        Hornbook least = new Hornbook();
+        due.is("value(0)", least.value(0), 0);
+        long none = elements(least);
+        due.is("a new one has " + none + " elements", none < 6000, true);
+        due.is("line(0, 1024)", least.line(0, 1024), -9);
+        due.is("elements after line(0, 1024)", elements(least), none);
+        Hornbook x = new Hornbook();
+        int top = x.type(x.sort(0, 0, 0), -1, -1);
+        int box = x.sort(2, 1, 1);
+        int in = top;
+        for (int i = 0; i < 4; i++) in = x.type(box, in, in);
+        x.parent(box, top);
+        x.method(box, 0, 2, -1, 2, true);
+        int deep = x.value(in);
+        int either = x.either(deep, x.value(x.type(box, top, 0)));
+        int call = x.call(deep, 0, deep, -1);
+        for (int k = 0; k < 32; k++) due.is("line(0, " + k + ")", x.line(deep, k) == -9, k == 31);
+        due.is("own, 31 places", x.own(call, 30), 0);
+        due.is("join", x.join(in, top, 0), 0);
+        due.is("road", x.road(in, 1, 0), 0);
+        due.is("line of a JOIN", x.line(either, 0), 1);
+        long before = elements(x);
+        for (int i = 0; i < 80; i++) {
+            int k = places[i % places.length];
+            due.is("line, k " + k, x.line(i % 5 == 0 ? either : deep, k), -9);
+            due.is("own, k " + k, x.own(call, k), -9);
+            due.is("join, k " + k, x.join(in, i % 2 == 0 ? top : in, k), -9);
+            due.is("road, k " + k, x.road(in, i % 2, k), -9);
+        }
+        due.is("elements after far places", elements(x), before);
+    }
+
+    /** How many elements there are in all arrays that an object leads to. */
+    private static long elements(Object from) {
+        Map<Object, Boolean> met = new IdentityHashMap<>();
+        ArrayDeque<Object> open = new ArrayDeque<>();
+        open.push(from);
+        long sum = 0;
+        while (!open.isEmpty()) {
+            Object at = open.pop();
+            if (met.put(at, true) != null) continue;
+            if (at instanceof List<?> list) {
+                for (Object o : list) open.push(o);
+            } else if (at.getClass().isArray()) {
+                sum += Array.getLength(at);
+                if (at instanceof Object[] row) for (Object o : row) if (o != null) open.push(o);
+            } else if (at.getClass().getName().startsWith("Hornbook")) {
+                for (Field f : at.getClass().getDeclaredFields()) pushWhatIsIn(f, at, open);
+            }
+        }
+        return sum;
+    }
+
+    private static void pushWhatIsIn(Field f, Object owner, ArrayDeque<Object> open) {
+        if (Modifier.isStatic(f.getModifiers()) || f.getType().isPrimitive()) return;
+        f.setAccessible(true);
+        try {
+            Object o = f.get(owner);
+            if (o != null) open.push(o);
+        } catch (IllegalAccessException e) {
+            due.is(f + " can be looked at", false, true);
+        }
     }
 
     /** Each method's name, as Class.name, and its text. */
