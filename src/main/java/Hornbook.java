@@ -76,8 +76,9 @@ public final class Hornbook {
     private static final int UNKNOWN = DEPTH_MASK;
     /** A reach that is as great, or greater. */
     private static final int ENDLESS = UNKNOWN - 1;
+    /** Far from being a reach, whatever is added to it. */
+    private static final int NEVER = -(1 << 20);
     private static final int DEEPEST_FLAT = 500;
-    private static final int MOST_FLATTENED = 16;
     private static final int MOST_LINKS = 1 << 6;
 
     /** How many TYPES there is room for; all else grows with them. */
@@ -87,7 +88,6 @@ public final class Hornbook {
     private static final int GROWTH = 16;
     /** If more than one of so many is needed, it is too much. */
     private static final int CROWDED_SHARE = 2;
-    private static final int DEAREST_SHARE = 2;
     /** More than can be made at one step. */
     private static final int RESERVE = 1 << 9;
     private static final int FIRST_HELD = 1 << 6;
@@ -117,10 +117,8 @@ public final class Hornbook {
     private static final int PARTS = 3;
     private static final int ROAD = 4;
     private static final int SMALL = 5;
-    private static final int REACH = 6;
-    private static final int DEPTH = 7;
-    private static final int LINE = 8;
-    private static final int PARTS_AND_PARENTS = 4;
+    private static final int DEPTH = 6;
+    private static final int LINE = 7;
     /** Each part can be asked for both ways. */
     private static final int MOST_WAYS = 2 * MOST_PARAMETERS;
 
@@ -160,6 +158,7 @@ public final class Hornbook {
         told.howOther = many < 2 ? FIXED : second;
         told.startWay();
         nodes.many[told.number] = many;
+        nodes.lift(told.number, NONE, NONE);
         sorts.add(told);
         isNoted = false;
         return told.number;
@@ -562,6 +561,7 @@ public final class Hornbook {
             int second = nodes.formOf(at.second);
             if (first < i) at.goOn(sorts.get(first));
             if (second < i) at.goOn(sorts.get(second));
+            nodes.lift(i, at.first, at.second);
         }
     }
 
@@ -769,9 +769,13 @@ public final class Hornbook {
     private static final class Nodes {
         /** How many PARAMETERS each SORT has. */
         final int[] many = new int[MOST_SORTS];
+        /** The reach of a SORT by itself, and what it adds to that of the first and of the second TYPE in it. */
+        private final int[] alone = new int[MOST_SORTS];
+        private final int[] overOne = new int[MOST_SORTS];
+        private final int[] overOther = new int[MOST_SORTS];
         /** For a JOIN the sign that it is one and both of it, else what is OPEN in it; the next one of its chain. */
         private long[] first = new long[FIRST_NODES];
-        /** Its form, the TYPES in it, how deep it is or can be, and how deep what it meets can make it. */
+        /** Its form, the TYPES in it, how deep it is or can be, and its reach: how far down it and what it meets can go. */
         private long[] second = new long[FIRST_NODES];
         private int[] heads = new int[FIRST_NODES / NODES_A_HEAD];
         private long[] marks = new long[FIRST_NODES >> 6];
@@ -782,7 +786,6 @@ public final class Hornbook {
         private int marked = 0;
         /** How many are marked. */
         private int live = 0;
-        private int[] dear = new int[0];
 
         Nodes() {
             for (int i = 0; i < LEAVES; i++) second[i] = (long) LEAF << FORM_AT;
@@ -831,35 +834,14 @@ public final class Hornbook {
             return id < 0 || id >= second.length || first[id] < 0 ? 0 : (int) (first[id] >>> UPPER) & OPEN;
         }
 
-        /** The DEPTH of what is no JOIN. */
+        /** The DEPTH of what is no JOIN; of a JOIN one that it doesn't go beyond, or UNKNOWN. */
         int depthOf(int id) {
             return id >= 0 && id < second.length ? (int) (second[id] >>> DEPTH_AT) & DEPTH_MASK : 0;
-        }
-
-        int reachOf(int id) {
-            return id >= 0 && id < second.length ? (int) second[id] & DEPTH_MASK : 0;
-        }
-
-        /** A DEPTH that it doesn't go beyond; UNKNOWN if there is none. */
-        int mostDepthOf(int id) {
-            if (id < 0 || id >= second.length) return 0;
-            int most = (int) (second[id] >>> DEPTH_AT) & DEPTH_MASK;
-            if (first[id] >= 0 || most != UNKNOWN) return most;
-            int a = (int) (first[id] >>> UPPER) & ID_MASK;
-            int b = (int) (first[id] >>> ID_BITS) & ID_MASK;
-            if (a >= second.length || b >= second.length) return UNKNOWN;
-            most = Math.max((int) second[a] & DEPTH_MASK, (int) second[b] & DEPTH_MASK);
-            return most >= ENDLESS ? UNKNOWN : most;
         }
 
         void putMostDepth(int id, int depth) {
             if (id < 0 || id >= second.length || depth < 0 || depth >= UNKNOWN) return;
             second[id] = second[id] & ~((long) DEPTH_MASK << DEPTH_AT) | (long) depth << DEPTH_AT;
-        }
-
-        void putReach(int id, int reach) {
-            if (id < 0 || id >= second.length || reach < 0) return;
-            second[id] = second[id] & ~(long) DEPTH_MASK | Math.min(reach, ENDLESS);
         }
 
         void putForm(int id, int form, int one, int other) {
@@ -886,15 +868,21 @@ public final class Hornbook {
             if (free > 0) free = (int) first[added] & ID_MASK;
             else used++;
             count++;
+            int a = (int) second[one] & DEPTH_MASK;
+            int b = (int) second[other] & DEPTH_MASK;
+            int depth = (int) Math.max(second[one] >>> DEPTH_AT & DEPTH_MASK, second[other] >>> DEPTH_AT & DEPTH_MASK);
             if (isJoin) {
+                // it goes down in both at once; where one goes on by itself, that is from a ROAD, or lies in what was given
+                int both = Math.min(Math.max(a, b), Math.min(a, b) + DEEPEST_TOLD - 1);
+                depth = Math.max(depth, both < ENDLESS ? both : UNKNOWN);
                 first[added] = key | heads[head];
-                second[added] = (long) SHUT << FORM_AT | LOWER_MASK;
+                second[added] = (long) SHUT << FORM_AT | (long) depth << DEPTH_AT | Math.max(a, b);
             } else {
                 boolean isAlone = form >= many.length || many[form] == 0;
-                int depth = isAlone ? 0 : 1 + (int) Math.max(second[one] >>> DEPTH_AT & DEPTH_MASK,
-                        second[other] >>> DEPTH_AT & DEPTH_MASK);
+                int over = form >= many.length ? 0 : Math.max(overOne[form] + a, overOther[form] + b);
+                int reach = form >= many.length ? 0 : Math.max(alone[form], over);
                 first[added] = (first[one] | first[other]) & ((long) OPEN << UPPER) | heads[head];
-                second[added] = parts | (long) depth << DEPTH_AT | UNKNOWN;
+                second[added] = parts | (isAlone ? 0L : depth + 1L << DEPTH_AT) | Math.min(reach, ENDLESS);
             }
             heads[head] = added;
             return added;
@@ -913,14 +901,43 @@ public final class Hornbook {
             return second.length < MOST_NODES;
         }
 
-        /** After a PARENT was told, or how a PARAMETER is. */
-        void forgetReach() {
-            for (int id = LEAVES; id < used && id < second.length; id++) second[id] |= DEPTH_MASK;
+        /** Finds how far down what is of the SORT can go, as its PARENTS have it. */
+        void lift(int sort, int parent, int other) {
+            if (sort < 0 || sort >= many.length) return;
+            alone[sort] = Math.max(0, Math.max(liftOf(parent, NONE, 0), liftOf(other, NONE, 0)));
+            for (int p = 0; p < many[sort]; p++) {
+                int lifted = Math.max(liftOf(parent, FIRST_PARAMETER + p, 0), liftOf(other, FIRST_PARAMETER + p, 0));
+                if (p == 0) overOne[sort] = Math.max(1, lifted);
+                else overOther[sort] = Math.max(1, lifted);
+            }
+        }
+
+        /** What a PARENT adds to the reach of what is in the place of a PARAMETER; its reach by itself, if that is NONE. */
+        private int liftOf(int in, int parameter, int level) {
+            int form = formOf(in);
+            if (form >= many.length || level > MOST_LEVELS) {
+                return in == parameter || in < FIRST_PARAMETER && parameter == NONE ? 0 : NEVER;
+            }
+            int most = parameter == NONE ? alone[form] : NEVER;
+            if (many[form] > 0) most = Math.max(most, overOne[form] + liftOf(partOf(in, 0), parameter, level + 1));
+            if (many[form] > 1) most = Math.max(most, overOther[form] + liftOf(partOf(in, 1), parameter, level + 1));
+            return most < 0 ? NEVER : Math.min(most, ENDLESS);
+        }
+
+        /** Finds the reach of what is told, when a PARENT was told. */
+        int measure(int id, int level) {
+            int form = formOf(id);
+            if (form >= many.length || level > MOST_LEVELS || id < 0 || id >= second.length) return 0;
+            int one = many[form] < 1 ? 0 : overOne[form] + measure(partOf(id, 0), level + 1);
+            int other = many[form] < 2 ? 0 : overOther[form] + measure(partOf(id, 1), level + 1);
+            int reach = Math.min(Math.max(alone[form], Math.max(one, other)), ENDLESS);
+            second[id] = second[id] & ~(long) DEPTH_MASK | reach;
+            return reach;
         }
 
         /** Whether no JOIN is in it, and it is not so deep that one had better be. */
         boolean isFlat(int id) {
-            return id >= 0 && id < second.length && first[id] >= 0 && ((int) (second[id] >>> DEPTH_AT) & DEPTH_MASK) < DEEPEST_FLAT;
+            return id >= 0 && id < second.length && first[id] >= 0 && (second[id] >>> DEPTH_AT & DEPTH_MASK) < DEEPEST_FLAT;
         }
 
         void need(int id) {
@@ -977,30 +994,6 @@ public final class Hornbook {
             }
         }
 
-        /** Marks the JOINS about which it was most work to find something out, as long as they are not too many. */
-        void needDearest() {
-            if (dear.length == 0) dear = new int[UNKNOWN + 1];
-            Arrays.fill(dear, 0);
-            for (int id = LEAVES; id < used && id < second.length; id++) {
-                if (first[id] < 0) dear[dearnessOf(id)]++;
-            }
-            int least = UNKNOWN;
-            int many = 0;
-            while (least > 1 && many + dear[least - 1] <= second.length / DEAREST_SHARE) {
-                least--;
-                many += dear[least];
-            }
-            for (int id = LEAVES; id < used && id < second.length; id++) {
-                if (first[id] < 0 && dearnessOf(id) >= least) need(id);
-            }
-        }
-
-        private int dearnessOf(int id) {
-            int reach = (int) second[id] & DEPTH_MASK;
-            int depth = (int) (second[id] >>> DEPTH_AT) & DEPTH_MASK;
-            return reach != UNKNOWN ? reach : depth != UNKNOWN ? depth : 0;
-        }
-
         /** A JOIN that stays, when not all that it comes to be does, is to be looked at again. */
         void shutJoins() {
             for (int id = LEAVES; id < used && id < second.length; id++) {
@@ -1010,11 +1003,6 @@ public final class Hornbook {
                         && (form == LINKED || isNeeded((int) (second[id] >>> OTHER_AT) & ID_MASK));
                 if (!isWhole) second[id] = (long) SHUT << FORM_AT | second[id] & LOWER_MASK;
             }
-        }
-
-        /** Whether so much is marked that there is hardly more room. */
-        boolean isCrammed() {
-            return live > second.length / 4 * 3;
         }
 
         void unmark() {
@@ -1200,7 +1188,6 @@ public final class Hornbook {
         int phase;
         int place;
         int turn;
-        int best;
         /** Whether a part at an IN place is asked for the other way round; for DEPTH whether the second one comes first. */
         boolean isBack;
         /** Whether what was asked last for this has its answer by now. */
@@ -1279,7 +1266,7 @@ public final class Hornbook {
             for (int i = 0; i < tellings && i < told.length; i++) nodes.need(told[i]);
             nodes.needInner(false);
             nodes.sweep();
-            nodes.forgetReach();
+            for (int i = 0; i < tellings && i < told.length; i++) nodes.measure(told[i], 0);
         }
 
         /**
@@ -1295,13 +1282,7 @@ public final class Hornbook {
             } else if (nodes.isCrowded()) {
                 nodes.unmark();
                 needRoots(true);
-                nodes.needDearest();
                 nodes.needInner(true);
-                if (nodes.isCrammed()) {
-                    nodes.unmark();
-                    needRoots(true);
-                    nodes.needInner(true);
-                }
                 nodes.shutJoins();
             }
             isTidied = true;
@@ -1361,8 +1342,6 @@ public final class Hornbook {
         int depthOf(int id) {
             int at = nodes.through(id);
             if (!nodes.isJoin(at)) return nodes.depthOf(at);
-            ask(REACH, nodes.joinedOf(at, 0), NONE);
-            ask(REACH, nodes.joinedOf(at, 1), NONE);
             int deepest = 0;
             for (int n = 0; n < MOST_NODES; n++) {
                 int found = ask(DEPTH, at, n == 0 ? 0 : deepest + 1);
@@ -1400,7 +1379,6 @@ public final class Hornbook {
                     case PARTS: stepParts(top); break;
                     case ROAD: stepRoad(top); break;
                     case SMALL: stepSmall(top); break;
-                    case REACH: stepReach(top); break;
                     case DEPTH: stepDepth(top); break;
                     default: stepLine(top);
                 }
@@ -1424,7 +1402,6 @@ public final class Hornbook {
             added.phase = 0;
             added.place = 0;
             added.turn = 0;
-            added.best = 0;
             added.isBack = false;
             added.isAnswered = false;
         }
@@ -1679,59 +1656,6 @@ public final class Hornbook {
             answer(at);
         }
 
-        /** Finds how deep it and all that it meets on its ROAD can go down. */
-        private void stepReach(Step s) {
-            s.a = nodes.through(s.a);
-            int form = nodes.formOf(s.a);
-            int reach = nodes.reachOf(s.a);
-            if (form == SHUT && reach == UNKNOWN) {
-                open(FORM, s.a, NONE);
-                return;
-            }
-            if (form >= sorts.size() || reach != UNKNOWN) {
-                answer(form == LEAF ? 0 : reach);
-                return;
-            }
-            Sort sort = sorts.get(form);
-            while (s.turn < PARTS_AND_PARENTS) {
-                if (s.phase == 0) {
-                    s.x = NONE;
-                    if (s.turn < 2 && s.turn < sort.many) s.x = nodes.through(nodes.partOf(s.a, s.turn));
-                    int parent = s.turn == 2 ? sort.first : s.turn == 3 ? sort.second : NONE;
-                    if (parent != NONE) {
-                        s.x = member(s, s.a, nodes.formOf(parent));
-                        if (s.x == NONE) return;
-                    }
-                    s.phase = 1;
-                }
-                if (s.phase == 1 && s.x != NONE && nodes.reachOf(nodes.through(s.x)) == UNKNOWN) {
-                    s.phase = 2;
-                    open(REACH, s.x, NONE);
-                    return;
-                }
-                if (s.x != NONE) {
-                    int found = s.phase == 2 ? last : nodes.reachOf(nodes.through(s.x));
-                    s.best = Math.max(s.best, Math.min(found + (s.turn < 2 ? 1 : 0), ENDLESS));
-                }
-                s.phase = 0;
-                s.turn++;
-            }
-            nodes.putReach(s.a, s.best);
-            flatten(s, form);
-            answer(s.best);
-        }
-
-        /** What is whole by now, without a JOIN in it, has one number; that it has two of them is too dear for large ones. */
-        private void flatten(Step s, int form) {
-            if (s.best > MOST_FLATTENED) return;
-            int one = nodes.through(nodes.partOf(s.a, 0));
-            int other = nodes.through(nodes.partOf(s.a, 1));
-            if (!nodes.isJoin(s.a) || !nodes.isFlat(one) || !nodes.isFlat(other)) return;
-            int flat = nodes.make(form, one, other);
-            nodes.putReach(flat, s.best);
-            nodes.putForm(s.a, LINKED, flat, ANY_TYPE);
-        }
-
         /** Finds a way down that is as long as it is wanted, or longer; NONE if there is none. */
         private void stepDepth(Step s) {
             if (s.isAnswered) {
@@ -1744,7 +1668,7 @@ public final class Hornbook {
             }
             s.a = nodes.through(s.a);
             int form = nodes.formOf(s.a);
-            int most = nodes.mostDepthOf(s.a);
+            int most = nodes.depthOf(s.a);
             if (most < s.wanted && most != UNKNOWN) {
                 answer(NONE);
                 return;
@@ -1761,11 +1685,11 @@ public final class Hornbook {
             int other = nodes.through(nodes.partOf(s.a, 1));
             if (s.phase == 0) {
                 s.phase = 1;
-                s.isBack = nodes.mostDepthOf(other) > nodes.mostDepthOf(one);
+                s.isBack = nodes.depthOf(other) > nodes.depthOf(one);
             }
             for (; s.turn < 2; s.turn++) {
                 int part = s.turn == 0 == s.isBack ? other : one;
-                int deep = nodes.mostDepthOf(part);
+                int deep = nodes.depthOf(part);
                 if (deep != UNKNOWN && deep + 1 < s.wanted) continue;
                 open(DEPTH, part, Math.max(s.wanted - 1, 0));
                 s.isAnswered = true;

@@ -17,7 +17,7 @@ public final class RoomTest {
     private static final int[] PLACES = {0, 1, 2, 3, 4, 5, 6, 7, 8, 9, 13, 17, 29, 57, 100, 1000, 9999, 100000, 1000000,
         123456789, 2000000000, Integer.MAX_VALUE - 1, Integer.MAX_VALUE, -1};
 
-    /** s a SORT, p a PARAMETER, t a TYPE, u the PARENT of a SORT. */
+    /** s a SORT, p a PARAMETER, t a TYPE, u the PARENT of a SORT; m a METHOD that is GENERAL, v, e, a and c EXPRESSIONS. */
     private static final String[] FORESTS = {
         "s2,2,2 s2,1,0 s2,0,2 s2,0,1 s2,1,1 s1,0,1 s2,0,1 s2,1,2 s1,0,1 s0,0,0 s0,0,0 s0,0,1 p0 p1 t0,3,4"
             + " t10,-1,-1 t11,-1,-1 t8,6,-1 t6,3,4 t8,7,-1 t10,-1,-1 t5,9,-1 t5,3,-1 t11,-1,-1 t5,13,-1 t9,-1,-1"
@@ -164,6 +164,7 @@ public final class RoomTest {
         if (args.length == 0) longLinesAnew();
         if (args.length == 0) largeTower();
         if (args.length == 0) tooLargeTower();
+        if (args.length == 0) deepTowers();
         System.out.println("at most " + mostKept + " TYPES are kept, " + mostHeld + " held");
         due.part("what is no more needed is given back");
         if (args.length > 1) due.is("too many are kept", mostKept > Integer.parseInt(args[1]), false);
@@ -224,7 +225,7 @@ public final class RoomTest {
     private static void tell(Hornbook x, PlainHornbook y, String forest) {
         for (String word : forest.split(" ")) {
             String[] parts = word.substring(1).split(",");
-            int[] n = new int[3];
+            int[] n = new int[5];
             for (int i = 0; i < parts.length; i++) n[i] = Integer.parseInt(parts[i]);
             int got = 0;
             int is = 0;
@@ -232,6 +233,11 @@ public final class RoomTest {
                 case 's' -> { got = x.sort(n[0], n[1], n[2]); is = y.sort(n[0], n[1], n[2]); }
                 case 'p' -> { got = x.parameter(n[0]); is = y.parameter(n[0]); }
                 case 't' -> { got = x.type(n[0], n[1], n[2]); is = y.type(n[0], n[1], n[2]); }
+                case 'm' -> { got = x.method(n[0], n[1], n[2], n[3], n[4], true); is = y.method(n[0], n[1], n[2], n[3], n[4], true); }
+                case 'v' -> { got = x.value(n[0]); is = y.value(n[0]); }
+                case 'e' -> { got = x.either(n[0], n[1]); is = y.either(n[0], n[1]); }
+                case 'a' -> { got = x.as(n[0], n[1]); is = y.as(n[0], n[1]); }
+                case 'c' -> { got = x.call(n[0], n[1], n[2], n[3]); is = y.call(n[0], n[1], n[2], n[3]); }
                 default -> { got = parent(x::parent, n); is = parent(y::parent, n); }
             }
             due.is(word, got, is);
@@ -391,6 +397,36 @@ public final class RoomTest {
         // EITHERS of such EITHERS: 1050064 TYPES in one of two with 1049696 and 1048132; 1748905 in one with 1244926
         due.is("meanDepth()", tower(0, 2, 4, 0, 0, 2, 3, 0).meanDepth(), 599 / 12.0);
         due.is("meanDepth()", tower(4, 0, 0, 1, 0, 2, 0, 2).meanDepth(), 607 / 12.0);
+    }
+
+    /**
+     * EITHERS far too large for all of their TYPES to be looked at: how deep they are is found in a second or two, as
+     * it was not, in more than a minute, when all that is in both of an EITHER was looked at for it. What is due is what
+     * was found then.
+     */
+    private static void deepTowers() {
+        due.part("promise 31, EITHERS that are too large for all of them to be looked at");
+        long begun = System.nanoTime();
+        String methods = " m10,0,32,-1,8 m1,2,24,-1,2 m2,2,2,2,51 m9,1,57,53,33 m2,0,50,-1,29 m9,1,14,-1,33 m1,2,2,-1,2"
+            + " m3,2,22,23,51 m11,0,30,2,19 m8,0,18,2,52 m9,1,2,-1,2 m8,2,2,55,2 m11,1,39,2,2 m3,2,2,-1,2 m3,1,37,45,29"
+            + " m9,1,50,2,29 m1,2,25,2,6 m2,2,38,26,1 m10,1,28,-1,2 m3,2,28,2,35 m1,0,2,2,2 m7,0,2,2,2 m9,0,2,2,33"
+            + " m0,1,2,-1,27 m5,0,36,2,2 m9,1,39,2,2 m8,2,54,22,46";
+        deep(TOWER.replace("t4,0,34 t3,13,11", "t4,0,26 t3,13,11") + methods, "v28 v30 v28 v19 v0 v18 v28 c6,2,0,4 e3,7 e7,3"
+            + " c2,2,0,6 a7,19 e7,1 e0,7 e7,0 e12,6 e6,12 e13,13 c10,0,13,9 e15,18 e1,3 e3,1 e18,9 e18,15", 894);
+        methods = " m4,2,26,2,2 m0,2,2,-1,25 m7,1,2,-1,2 m3,2,2,-1,12 m3,2,53,2,58 m0,2,52,-1,2 m10,1,2,-1,31 m1,2,31,-1,55"
+            + " m10,0,37,-1,2 m5,1,2,-1,33 m5,1,27,13,2 m6,2,2,2,2 m4,2,2,42,19 m5,0,36,-1,3 m5,1,2,26,2 m3,0,29,-1,2"
+            + " m0,1,2,-1,2 m6,0,16,2,8 m4,2,2,-1,58 m4,0,2,2,2 m9,2,37,2,49 m4,0,34,2,58 m0,0,6,-1,44 m6,2,2,-1,2"
+            + " m8,0,47,-1,2 m4,0,2,-1,2";
+        deep(TOWER + methods, "v28 v30 v13 e1,0 c0,1,2,-1 e0,3 e1,2 e2,0 e0,2 e5,8 e8,5 e4,9 e9,4 c11,1,8,8 e11,11 e12,11"
+            + " e1,15 e6,11 e11,6 c13,1,7,12 c19,0,5,-1 e10,2 e14,16 e0,14 e16,10 e10,16 e2,2 e2,2 e25,0 e0,25 e24,8"
+            + " c26,2,11,-1 e26,6", 2218);
+        due.is("it took longer than a minute", System.nanoTime() - begun > 60_000_000_000L, false);
+    }
+
+    private static void deep(String forest, String expressions, int sum) {
+        Hornbook x = new Hornbook();
+        tell(x, new PlainHornbook(), forest + " " + expressions);
+        due.is("meanDepth()", x.meanDepth(), (double) sum / x.many(3));
     }
 
     /** Four EITHERS of VALUES, two of these, one of both. */
