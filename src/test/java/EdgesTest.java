@@ -46,6 +46,7 @@ public final class EdgesTest {
         withoutAll();
         withEachParameter();
         meanOfAll();
+        meanOfDeepJoins();
         digestWraps();
         digestOfAll();
         due.end();
@@ -802,6 +803,44 @@ public final class EdgesTest {
             sum += i % 5;
             due.is("of " + (i + 1), x.meanDepth(), (double) sum / (i + 1));
         }
+    }
+
+    private static void meanOfDeepJoins() {
+        due.part("promise 31: JOINS deeper than both, along second PARENTS, in a SORT that was told last; deepest in the other part");
+        Hornbook x = new Hornbook();
+        x.sort(1, 1, 0);
+        x.sort(2, 1, 1);
+        for (int i = 2; i < 8; i++) x.sort(0, 0, 0);
+        int[][] types = {{x.type(2, -1, -1), x.type(3, -1, -1)}, {0, 0}, {0, 0}};
+        for (int i = 4; i < 8; i++) {
+            int top = types[0][i % 2];
+            int list = types[i / 2 - 2][i % 2];
+            for (int deep = 1; deep <= 4; deep++) list = x.type(0, list, -1);
+            due.is("parent", x.parent(i, top), 1);
+            due.is("parent", x.parent(i, list), 2);
+            types[i / 2 - 1][i % 2] = x.type(i, -1, -1);
+        }
+        x.sort(1, 1, 0);
+        int[] pairs = new int[2];
+        int[] last = new int[2];
+        for (int side = 0; side < 2; side++) {
+            int in = types[2][side];
+            int boxes = in;
+            for (int deep = 1; deep <= 3; deep++) boxes = x.type(8, boxes, -1);
+            pairs[side] = x.type(1, types[1][side], in);
+            last[side] = x.type(1, x.type(0, in, -1), boxes);
+        }
+        int[][] joined = {types[0], types[1], types[2], pairs, last};
+        int[] depths = {0, 4, 8, 9, 12};
+        int sum = 0;
+        for (int i = 0; i < 5; i++) {
+            int first = x.value(joined[i][0]);
+            due.is("either", x.either(first, x.value(joined[i][1])), first + 2);
+            sum += x.depth(joined[i][0]) + x.depth(joined[i][1]) + depths[i];
+            due.is("with a JOIN that is " + depths[i] + " deep", x.meanDepth(), (double) sum / (3 * i + 3));
+        }
+        due.is("the other way round", x.either(13, 12), 15);
+        due.is("the other way round", x.meanDepth(), (sum + 12) / 16.0);
     }
 
     /** d as it is without an end, wrapped around only at last. */
